@@ -1,0 +1,1817 @@
+import java.util.Arrays;
+import java.util.NoSuchElementException;
+
+/** A language of functions with many methods, one of which is chosen by all arguments. */
+public final class Worldage {
+    private static final int MOST_TYPES = 60;
+    private static final int MOST_NODES = 120;
+    private static final int MOST_METHODS = 40;
+    private static final int MOST_CODES = 60;
+    private static final int MOST_CALLS = 20;
+    private static final int MOST_STEPS = 1000;
+    private static final int FUNCTIONS = 6;
+    private static final int NONE_GIVEN = -1;
+    private static final int NO_SECOND_INT = Integer.MIN_VALUE;
+
+    private final Types types = new Types();
+    private final Nodes nodes = new Nodes();
+    private final Book book = new Book(types);
+    private final Inferring inferring = new Inferring(types, nodes, book);
+    private final Codes codes = new Codes(types, nodes, book);
+    private final Machine machine = new Machine(types, nodes, book, inferring, codes);
+    private final Trimmer trimmer = new Trimmer(nodes, book, inferring);
+
+    private int lastOutcome = Machine.GOING;
+    private int lastType;
+    private int lastInt;
+    private int lastLookups;
+    private int lastTaken;
+    private int lastSteps;
+    private long stepsOfAll;
+
+    public Worldage() {
+    }
+
+    public int named(int parent, boolean isConcrete)
+            throws NoSuchElementException, IllegalArgumentException, IllegalStateException {
+        needType(parent);
+        if (!types.canBeParent(types.ids[parent])) {
+            throw new IllegalArgumentException("The parent is neither 0 nor a named type that is not concrete.");
+        }
+        if (types.numbered >= MOST_TYPES) {
+            throw new IllegalStateException("There are 60 types.");
+        }
+        return types.addNamed(types.ids[parent], isConcrete);
+    }
+
+    public int ofInt(int n) throws IllegalStateException {
+        return numberOrRefuse(types.put(Types.ONE, n, 0));
+    }
+
+    public int box(int type) throws NoSuchElementException, IllegalArgumentException, IllegalStateException {
+        needType(type);
+        needRoomAbove(types.ids[type]);
+        return numberOrRefuse(types.put(Types.JUST, types.ids[type], 0));
+    }
+
+    public int boxBelow(int type) throws NoSuchElementException, IllegalArgumentException, IllegalStateException {
+        needType(type);
+        needRoomAbove(types.ids[type]);
+        return numberOrRefuse(types.put(Types.BELOW, types.ids[type], 0));
+    }
+
+    public int union(int first, int second)
+            throws NoSuchElementException, IllegalArgumentException, IllegalStateException {
+        needType(first);
+        needType(second);
+        needRoomAbove(types.ids[first]);
+        needRoomAbove(types.ids[second]);
+        return numberOrRefuse(types.put(Types.UNION, types.ids[first], types.ids[second]));
+    }
+
+    public int types() {
+        return types.numbered;
+    }
+
+    public boolean isBelow(int type, int other) throws NoSuchElementException {
+        needType(type);
+        needType(other);
+        return types.below(types.ids[type], types.ids[other]);
+    }
+
+    public boolean meet(int type, int other) throws NoSuchElementException {
+        needType(type);
+        needType(other);
+        return types.meeting(types.ids[type], types.ids[other]);
+    }
+
+    public int node(char kind, int a, int b, int c)
+            throws IllegalArgumentException, NoSuchElementException, IllegalStateException {
+        int first = kind == 'o' ? types.concreteNamed(a) : a;
+        if (!nodes.isKind(kind) || !nodes.isInRange(kind, first)) {
+            throw new IllegalArgumentException("There is no such kind, or an operand is out of range.");
+        }
+        if (!nodes.hasOperands(kind, a, b, c)) {
+            throw new NoSuchElementException("There is no such node.");
+        }
+        int depth = nodes.depthOver(kind, a, b, c);
+        if (nodes.size >= MOST_NODES || depth > Nodes.DEEPEST) {
+            throw new IllegalStateException("There are 120 nodes, or it would be too deep.");
+        }
+        return nodes.add(kind, first, b, c, depth);
+    }
+
+    public int prepare(int function, int first, int second, int body)
+            throws IllegalArgumentException, NoSuchElementException, IllegalStateException {
+        needFunction(function);
+        needArguments(first, second);
+        if (body < 0 || body >= nodes.size) {
+            throw new NoSuchElementException("There is no such node.");
+        }
+        if (book.size >= MOST_METHODS) {
+            throw new IllegalStateException("There are 40 methods.");
+        }
+        return book.add(function, types.ids[first], idOrNone(second), body);
+    }
+
+    public int define(int method) throws NoSuchElementException, IllegalStateException {
+        needMethod(method);
+        if (book.isPresent(method, book.now)) {
+            throw new IllegalStateException("It is there.");
+        }
+        book.bring(method);
+        codes.spoil(method);
+        return book.now;
+    }
+
+    public int takeAway(int method) throws NoSuchElementException, IllegalStateException {
+        needMethod(method);
+        if (!book.isPresent(method, book.now)) {
+            throw new IllegalStateException("It is not there.");
+        }
+        book.drop(method);
+        codes.spoil(method);
+        return book.now;
+    }
+
+    public int age() {
+        return book.now;
+    }
+
+    public boolean isThere(int method, int age) throws NoSuchElementException, IllegalArgumentException {
+        needMethod(method);
+        if (age < 0 || age > book.now) {
+            throw new IllegalArgumentException("There is no such age.");
+        }
+        return book.isPresent(method, age);
+    }
+
+    public int chosen(int function, int first, int second, int age)
+            throws IllegalArgumentException, NoSuchElementException, UnsupportedOperationException {
+        needFunction(function);
+        if (age < 0 || age > book.now) {
+            throw new IllegalArgumentException("There is no such age.");
+        }
+        needArguments(first, second);
+        int firstId = types.ids[first];
+        int secondId = idOrNone(second);
+        if (!types.isOfValues(firstId) || (secondId >= 0 && !types.isOfValues(secondId))) {
+            throw new UnsupportedOperationException("A type is none of values.");
+        }
+        return book.bestOf(book.matchingTypes(function, firstId, secondId, age));
+    }
+
+    public int unclear(int function) throws IllegalArgumentException {
+        needFunction(function);
+        return book.unclearPairs(function);
+    }
+
+    public int infer(int function, int first, int second)
+            throws IllegalArgumentException, NoSuchElementException, UnsupportedOperationException {
+        needFunction(function);
+        needArguments(first, second);
+        int number = types.numberFor(inferring.settle(function, types.ids[first], idOrNone(second)));
+        if (number < 0) {
+            throw new UnsupportedOperationException("There would be more than 60 types.");
+        }
+        return number;
+    }
+
+    public char run(int function, int first, int second, int steps, boolean isByCode)
+            throws IllegalArgumentException {
+        needFunction(function);
+        needSteps(steps);
+        machine.go(function, first, second, steps, isByCode, false);
+        lastOutcome = machine.outcome;
+        lastType = machine.endType;
+        lastInt = machine.endInt;
+        lastLookups = machine.lookupCount;
+        lastTaken = machine.takenCount;
+        lastSteps = machine.stepCount;
+        stepsOfAll += machine.stepCount;
+        return (char) machine.outcome;
+    }
+
+    public int result() throws NoSuchElementException {
+        if (lastOutcome != 'v' && lastOutcome != 't') {
+            throw new NoSuchElementException("The last run ended otherwise, or there was none.");
+        }
+        return lastInt;
+    }
+
+    public int resultType() throws NoSuchElementException, IllegalStateException {
+        if (lastOutcome != 'v') {
+            throw new NoSuchElementException("The last run had no value, or there was none.");
+        }
+        return numberOrRefuse(lastType);
+    }
+
+    public int lookups() {
+        return lastLookups;
+    }
+
+    public int taken() {
+        return lastTaken;
+    }
+
+    public int steps() {
+        return lastSteps;
+    }
+
+    public long allSteps() {
+        return stepsOfAll;
+    }
+
+    public int codes() {
+        return codes.size;
+    }
+
+    public int stale() {
+        return codes.countStale();
+    }
+
+    public int edges(int code) throws IndexOutOfBoundsException {
+        needCode(code);
+        return codes.edgeCounts[code];
+    }
+
+    public int fixed(int code) throws IndexOutOfBoundsException {
+        needCode(code);
+        return codes.fixedCounts[code];
+    }
+
+    public int methodOf(int code) throws IndexOutOfBoundsException {
+        needCode(code);
+        return codes.methods[code];
+    }
+
+    public int trim(int function, int first, int second)
+            throws IllegalArgumentException, NoSuchElementException, UnsupportedOperationException {
+        needFunction(function);
+        needArguments(first, second);
+        int count = trimmer.countFrom(function, types.ids[first], idOrNone(second));
+        if (count < 0) {
+            throw new UnsupportedOperationException("A call has no fixed method, or a body has a node l or d.");
+        }
+        return count;
+    }
+
+    public boolean isSame(int function, int first, int second, int steps) throws IllegalArgumentException {
+        needFunction(function);
+        needSteps(steps);
+        machine.go(function, first, second, steps, true, true);
+        int outcome = machine.outcome;
+        int endType = machine.endType;
+        int endInt = machine.endInt;
+        machine.go(function, first, second, steps, false, true);
+        if (isCutShort(outcome) || isCutShort(machine.outcome)) {
+            return true;
+        }
+        return outcome == machine.outcome && endType == machine.endType && endInt == machine.endInt;
+    }
+
+    public float fixedShare() throws ArithmeticException {
+        int all = codes.sumOf(codes.callCounts);
+        if (all == 0) {
+            throw new ArithmeticException("There are no nodes c in codes.");
+        }
+        return (float) codes.sumOf(codes.fixedCounts) / (float) all;
+    }
+
+    public double meanEdges() throws ArithmeticException {
+        if (codes.size == 0) {
+            throw new ArithmeticException("There are no codes.");
+        }
+        return (double) codes.sumOf(codes.edgeCounts) / (double) codes.size;
+    }
+
+    private static boolean isCutShort(int outcome) {
+        return outcome == 's' || outcome == Machine.AT_DEFINE;
+    }
+
+    private int numberOrRefuse(int id) {
+        int number = types.numberFor(id);
+        if (number < 0) {
+            throw new IllegalStateException("There would be more than 60 types.");
+        }
+        return number;
+    }
+
+    private int idOrNone(int type) {
+        return type < 0 ? NONE_GIVEN : types.ids[type];
+    }
+
+    private void needType(int type) {
+        if (type < 0 || type >= types.numbered) {
+            throw new NoSuchElementException("There is no such type.");
+        }
+    }
+
+    private void needArguments(int first, int second) {
+        needType(first);
+        if (second != NONE_GIVEN) {
+            needType(second);
+        }
+    }
+
+    private void needRoomAbove(int id) {
+        if (types.depths[id] >= Types.DEEPEST) {
+            throw new IllegalArgumentException("It would be too deep.");
+        }
+    }
+
+    private void needFunction(int function) {
+        if (function < 0 || function >= FUNCTIONS) {
+            throw new IllegalArgumentException("There is no such function.");
+        }
+    }
+
+    private void needMethod(int method) {
+        if (method < 0 || method >= book.size) {
+            throw new NoSuchElementException("There is no such method.");
+        }
+    }
+
+    private void needSteps(int steps) {
+        if (steps < 1 || steps > MOST_STEPS) {
+            throw new IllegalArgumentException("The steps are out of range.");
+        }
+    }
+
+    private void needCode(int code) {
+        if (code < 0 || code >= codes.size) {
+            throw new IndexOutOfBoundsException("There is no such code.");
+        }
+    }
+
+    /**
+     * The types, each with an id of its own. Inferring and running make types that no call has returned yet: only
+     * those that were returned have numbers.
+     */
+    private static final class Types {
+        static final int ANY = 0;
+        static final int INT = 1;
+        static final int NONE = 2;
+        static final int DEEPEST = 4;
+
+        static final int PLAIN = 0;
+        static final int NAMED = 1;
+        static final int ONE = 2;
+        static final int JUST = 3;
+        static final int BELOW = 4;
+        static final int UNION = 5;
+
+        private static final int MOST_IDS = 65536;
+        private static final int BUCKETS = 1024;
+
+        private final int[] heads = new int[BUCKETS];
+        private int[] nexts = new int[128];
+        private int[] kinds = new int[128];
+        private int[] firsts = new int[128];
+        private int[] seconds = new int[128];
+        private int[] numbers = new int[128];
+        int[] depths = new int[128];
+        private int size;
+        final int[] ids = new int[MOST_TYPES];
+        int numbered;
+
+        Types() {
+            Arrays.fill(heads, -1);
+            Arrays.fill(numbers, -1);
+            for (int id = ANY; id <= NONE; id++) {
+                ids[id] = id;
+                numbers[id] = id;
+            }
+            size = NONE + 1;
+            numbered = NONE + 1;
+        }
+
+        /** Returns the type that is made so; ANY, which is above all, if there is no more room. */
+        int put(int kind, int first, int second) {
+            int mixed = kind * 31 + first * 40503 + second * 1000003;
+            int bucket = (mixed ^ mixed >>> 10 ^ mixed >>> 20) & (BUCKETS - 1);
+            for (int id = heads[bucket], left = size; id >= 0 && left > 0; id = nexts[id], left--) {
+                if (kinds[id] == kind && firsts[id] == first && seconds[id] == second) {
+                    return id;
+                }
+            }
+            if (size >= MOST_IDS) {
+                return ANY;
+            }
+            if (size >= kinds.length) {
+                int room = 2 * size;
+                nexts = Arrays.copyOf(nexts, room);
+                kinds = Arrays.copyOf(kinds, room);
+                firsts = Arrays.copyOf(firsts, room);
+                seconds = Arrays.copyOf(seconds, room);
+                numbers = Arrays.copyOf(numbers, room);
+                depths = Arrays.copyOf(depths, room);
+            }
+            int id = size;
+            size++;
+            kinds[id] = kind;
+            firsts[id] = first;
+            seconds[id] = second;
+            numbers[id] = -1;
+            depths[id] = kind == NAMED ? 0 : 1;
+            if (kind >= JUST) {
+                depths[id] = 1 + depths[first];
+            }
+            if (kind == UNION && depths[second] >= depths[first]) {
+                depths[id] = 1 + depths[second];
+            }
+            nexts[id] = heads[bucket];
+            heads[bucket] = id;
+            return id;
+        }
+
+        /** Named types with the same parent are not the same, so that each is kept by its own number. */
+        int addNamed(int parent, boolean isConcrete) {
+            int number = numbered;
+            int id = put(NAMED, parent, isConcrete ? -1 - number : number);
+            return numberFor(id);
+        }
+
+        boolean canBeParent(int id) {
+            return id == ANY || (kinds[id] == NAMED && seconds[id] >= 0);
+        }
+
+        private boolean isConcrete(int id) {
+            return kinds[id] == NAMED && seconds[id] < 0;
+        }
+
+        /** Returns the id of the type with this number, if it is a concrete named one, otherwise -1. */
+        int concreteNamed(int number) {
+            if (number < 0 || number >= numbered || !isConcrete(ids[number])) {
+                return -1;
+            }
+            return ids[number];
+        }
+
+        boolean isOfValues(int id) {
+            int inner = id;
+            for (int depth = 0; depth < DEEPEST && kinds[inner] == JUST; depth++) {
+                inner = firsts[inner];
+            }
+            return inner == INT || isConcrete(inner);
+        }
+
+        boolean isObject(int id) {
+            return kinds[id] == NAMED;
+        }
+
+        boolean isOneInt(int id) {
+            return kinds[id] == ONE;
+        }
+
+        int intOf(int id) {
+            return firsts[id];
+        }
+
+        boolean isBox(int id) {
+            return kinds[id] == JUST || kinds[id] == BELOW;
+        }
+
+        int innerOf(int id) {
+            return firsts[id];
+        }
+
+        /** Returns the number of a type; -1, with no number given, if there would be too many. */
+        int numberFor(int id) {
+            int before = numbered;
+            if (giveNumber(id)) {
+                return numbers[id];
+            }
+            for (int number = numbered - 1; number >= before; number--) {
+                numbers[ids[number]] = -1;
+            }
+            numbered = before;
+            return -1;
+        }
+
+        private boolean giveNumber(int id) {
+            if (numbers[id] >= 0) {
+                return true;
+            }
+            if (kinds[id] >= JUST && !giveNumber(firsts[id])) {
+                return false;
+            }
+            if (kinds[id] == UNION && !giveNumber(seconds[id])) {
+                return false;
+            }
+            if (numbered >= MOST_TYPES) {
+                return false;
+            }
+            numbers[id] = numbered;
+            ids[numbered] = id;
+            numbered++;
+            return true;
+        }
+
+        boolean below(int s, int t) {
+            return sub(s, t);
+        }
+
+        boolean meeting(int s, int t) {
+            return cross(s, t);
+        }
+
+        private boolean sub(int s, int t) {
+            if (s == t || s == NONE || t == ANY) {
+                return true;
+            }
+            if (kinds[s] == UNION) {
+                return sub(firsts[s], t) && sub(seconds[s], t);
+            }
+            if (kinds[t] == UNION) {
+                return sub(s, firsts[t]) || sub(s, seconds[t]);
+            }
+            if (kinds[s] == ONE) {
+                return t == INT;
+            }
+            if (kinds[s] == NAMED) {
+                int above = firsts[s];
+                for (int left = MOST_TYPES; left > 0 && above != ANY && above != t; left--) {
+                    above = firsts[above];
+                }
+                return above == t;
+            }
+            if (kinds[s] == JUST && kinds[t] == JUST) {
+                return sub(firsts[s], firsts[t]) && sub(firsts[t], firsts[s]);
+            }
+            return isBox(s) && kinds[t] == BELOW && sub(firsts[s], firsts[t]);
+        }
+
+        private boolean cross(int s, int t) {
+            if (s == NONE || t == NONE) {
+                return false;
+            }
+            if (sub(s, t) || sub(t, s)) {
+                return true;
+            }
+            if (kinds[s] == UNION) {
+                return cross(firsts[s], t) || cross(seconds[s], t);
+            }
+            if (kinds[t] == UNION) {
+                return cross(s, firsts[t]) || cross(s, seconds[t]);
+            }
+            if (kinds[s] == BELOW && kinds[t] == BELOW) {
+                return true;
+            }
+            if (kinds[s] == JUST && kinds[t] == BELOW) {
+                return sub(firsts[s], firsts[t]);
+            }
+            return kinds[s] == BELOW && kinds[t] == JUST && sub(firsts[t], firsts[s]);
+        }
+
+        int join(int s, int t) {
+            if (sub(s, t)) {
+                return t;
+            }
+            if (sub(t, s)) {
+                return s;
+            }
+            if (depths[s] >= DEEPEST || depths[t] >= DEEPEST) {
+                return ANY;
+            }
+            return put(UNION, s, t);
+        }
+
+        boolean isValueOf(int type, int n, int t) {
+            return fits(type, n, t);
+        }
+
+        private boolean fits(int type, int n, int t) {
+            if (kinds[t] == ONE && type == INT && n == firsts[t]) {
+                return true;
+            }
+            if (kinds[t] == UNION && (fits(type, n, firsts[t]) || fits(type, n, seconds[t]))) {
+                return true;
+            }
+            return sub(type, t);
+        }
+
+        int widened(int id) {
+            return widen(id);
+        }
+
+        private int widen(int id) {
+            if (kinds[id] == ONE) {
+                return INT;
+            }
+            if (kinds[id] == UNION) {
+                return join(widen(firsts[id]), widen(seconds[id]));
+            }
+            return id;
+        }
+
+        /** Returns the type of boxes with something of a type, given the same without the types of one int. */
+        int boxed(int id, int wide) {
+            if (id == NONE) {
+                return NONE;
+            }
+            if (sub(id, INT)) {
+                return put(JUST, INT, 0);
+            }
+            boolean isExact = isConcrete(id) || kinds[id] == JUST;
+            int inner = isExact ? id : wide;
+            if (depths[inner] >= DEEPEST) {
+                return ANY;
+            }
+            return put(isExact ? JUST : BELOW, inner, 0);
+        }
+
+        int unboxed(int id) {
+            if (id == NONE) {
+                return NONE;
+            }
+            return isBox(id) ? firsts[id] : ANY;
+        }
+
+        int worked(int kind, int s, int t) {
+            if (kinds[s] == ONE && kinds[t] == ONE) {
+                return put(ONE, Worldage.worked(kind, firsts[s], firsts[t]), 0);
+            }
+            return cross(s, INT) && cross(t, INT) ? INT : NONE;
+        }
+    }
+
+    private static int worked(int kind, int a, int b) {
+        switch (kind) {
+            case '+':
+                return a + b;
+            case '-':
+                return a - b;
+            case '*':
+                return a * b;
+            default:
+                return a < b ? 1 : 0;
+        }
+    }
+
+    /** The nodes: each has only such as were told before it, so that no body goes round in a circle. */
+    private static final class Nodes {
+        static final int DEEPEST = 9;
+
+        final int[] kinds = new int[MOST_NODES];
+        final int[] as = new int[MOST_NODES];
+        final int[] bs = new int[MOST_NODES];
+        final int[] cs = new int[MOST_NODES];
+        private final int[] depths = new int[MOST_NODES];
+        private final boolean[] isReached = new boolean[MOST_NODES];
+        int size;
+
+        boolean isKind(int kind) {
+            switch (kind) {
+                case 'n':
+                case 'a':
+                case '+':
+                case '-':
+                case '*':
+                case '<':
+                case '?':
+                case 'c':
+                case 'l':
+                case 'o':
+                case 'f':
+                case 'x':
+                case 'u':
+                case 'd':
+                case 't':
+                case 'y':
+                    return true;
+                default:
+                    return false;
+            }
+        }
+
+        /** Tells whether a is in range; for objects it is the id of a concrete named type, or -1. */
+        boolean isInRange(int kind, int a) {
+            switch (kind) {
+                case 'a':
+                    return a == 0 || a == 1;
+                case 'c':
+                case 'l':
+                    return a >= 0 && a < FUNCTIONS;
+                case 'o':
+                    return a >= 0;
+                case 'd':
+                    return a >= 0 && a < MOST_METHODS;
+                default:
+                    return true;
+            }
+        }
+
+        private boolean isNode(int node) {
+            return node >= 0 && node < size;
+        }
+
+        private static boolean isTwofold(int kind) {
+            return kind == '+' || kind == '-' || kind == '*' || kind == '<';
+        }
+
+        private static boolean hasNodeA(int kind) {
+            return isTwofold(kind) || kind == '?' || kind == 'y'
+                    || kind == 'f' || kind == 'x' || kind == 'u' || kind == 't';
+        }
+
+        private static boolean hasNodeB(int kind) {
+            return isTwofold(kind) || kind == '?' || kind == 'y' || kind == 'c' || kind == 'l' || kind == 'o';
+        }
+
+        private static boolean hasNodeC(int kind, int c) {
+            return kind == '?' || ((kind == 'c' || kind == 'l') && c != NONE_GIVEN);
+        }
+
+        boolean hasOperands(int kind, int a, int b, int c) {
+            return (!hasNodeA(kind) || isNode(a)) && (!hasNodeB(kind) || isNode(b))
+                    && (!hasNodeC(kind, c) || isNode(c));
+        }
+
+        int depthOver(int kind, int a, int b, int c) {
+            int depth = 0;
+            if (hasNodeA(kind)) {
+                depth = 1 + depths[a];
+            }
+            if (hasNodeB(kind)) {
+                depth = Math.max(depth, 1 + depths[b]);
+            }
+            if (hasNodeC(kind, c)) {
+                depth = Math.max(depth, 1 + depths[c]);
+            }
+            return depth;
+        }
+
+        int add(int kind, int a, int b, int c, int depth) {
+            int node = size;
+            size++;
+            kinds[node] = kind;
+            as[node] = a;
+            bs[node] = b;
+            cs[node] = c;
+            depths[node] = depth;
+            return node;
+        }
+
+        /** Returns the node that is to be done at a place before the node itself can be; -1 for none. */
+        int operandAt(int node, int place) {
+            int kind = kinds[node];
+            boolean isWithArguments = kind == 'c' || kind == 'l';
+            if (place == 0) {
+                return hasNodeA(kind) ? as[node] : hasNodeB(kind) ? bs[node] : -1;
+            }
+            if (place == 1 && isWithArguments) {
+                return cs[node];
+            }
+            return place == 1 && isTwofold(kind) ? bs[node] : -1;
+        }
+
+        /** Marks all nodes of a body; operands are always told ahead of the node that has them. */
+        void reach(int body) {
+            Arrays.fill(isReached, false);
+            isReached[body] = true;
+            for (int node = body; node >= 0; node--) {
+                if (isReached[node]) {
+                    if (hasNodeA(kinds[node])) {
+                        isReached[as[node]] = true;
+                    }
+                    if (hasNodeB(kinds[node])) {
+                        isReached[bs[node]] = true;
+                    }
+                    if (hasNodeC(kinds[node], cs[node])) {
+                        isReached[cs[node]] = true;
+                    }
+                }
+            }
+        }
+
+        boolean isReachedCall(int node) {
+            return isReached[node] && kinds[node] == 'c';
+        }
+
+        boolean isReachedLate(int node) {
+            return isReached[node] && (kinds[node] == 'l' || kinds[node] == 'd');
+        }
+    }
+
+    /** The methods, and which of them are there at each age. */
+    private static final class Book {
+        private static final int MOST_AGES = 1 << 20;
+
+        private final Types types;
+        private final int[] functions = new int[MOST_METHODS];
+        private final int[] firsts = new int[MOST_METHODS];
+        private final int[] seconds = new int[MOST_METHODS];
+        final int[] bodies = new int[MOST_METHODS];
+        private final long[] groups = new long[2 * FUNCTIONS];
+        private long[] present = new long[64];
+        int size;
+        int now;
+
+        Book(Types types) {
+            this.types = types;
+        }
+
+        int add(int function, int first, int second, int body) {
+            int method = size;
+            size++;
+            functions[method] = function;
+            firsts[method] = first;
+            seconds[method] = second;
+            bodies[method] = body;
+            groups[groupOf(function, second)] |= 1L << method;
+            return method;
+        }
+
+        private static int groupOf(int function, int second) {
+            return second < 0 ? function : function + FUNCTIONS;
+        }
+
+        private static boolean has(long set, int method) {
+            return (set >>> method & 1L) != 0;
+        }
+
+        boolean isPresent(int method, int age) {
+            return has(present[age], method);
+        }
+
+        void bring(int method) {
+            long left = present[now];
+            for (int other = 0; other < size; other++) {
+                if (hasSameTypes(method, other)) {
+                    left &= ~(1L << other);
+                }
+            }
+            turnAge(left | 1L << method);
+        }
+
+        void drop(int method) {
+            turnAge(present[now] & ~(1L << method));
+        }
+
+        private void turnAge(long set) {
+            if (now < MOST_AGES - 1) {
+                now++;
+            }
+            if (now >= present.length) {
+                present = Arrays.copyOf(present, 2 * present.length);
+            }
+            present[now] = set;
+        }
+
+        private boolean hasSameTypes(int method, int other) {
+            return functions[method] == functions[other] && firsts[method] == firsts[other]
+                    && seconds[method] == seconds[other];
+        }
+
+        private long groupAt(int function, int second, int age) {
+            return present[age] & groups[groupOf(function, second)];
+        }
+
+        long matchingTypes(int function, int first, int second, int age) {
+            long group = groupAt(function, second, age);
+            long matching = 0;
+            for (int method = 0; method < size; method++) {
+                if (has(group, method) && types.below(first, firsts[method])
+                        && (second < 0 || types.below(second, seconds[method]))) {
+                    matching |= 1L << method;
+                }
+            }
+            return matching;
+        }
+
+        long matchingValues(int function, int age, int first, int firstInt, int second, int secondInt) {
+            long group = groupAt(function, second, age);
+            long matching = 0;
+            for (int method = 0; method < size; method++) {
+                if (has(group, method) && types.isValueOf(first, firstInt, firsts[method])
+                        && (second < 0 || types.isValueOf(second, secondInt, seconds[method]))) {
+                    matching |= 1L << method;
+                }
+            }
+            return matching;
+        }
+
+        /** Returns the method that is below each other one; -1 if there are none, -2 if it is not clear. */
+        int bestOf(long set) {
+            int best = -1;
+            int count = 0;
+            for (int method = 0; method < size; method++) {
+                if (has(set, method) && isBelowAll(method, set)) {
+                    best = method;
+                    count++;
+                }
+            }
+            if (set == 0) {
+                return -1;
+            }
+            return count == 1 ? best : -2;
+        }
+
+        private boolean isBelowAll(int method, long set) {
+            for (int other = 0; other < size; other++) {
+                if (has(set, other) && !isUnder(method, other)) {
+                    return false;
+                }
+            }
+            return true;
+        }
+
+        private boolean isUnder(int method, int other) {
+            return types.below(firsts[method], firsts[other])
+                    && (seconds[method] < 0 || types.below(seconds[method], seconds[other]));
+        }
+
+        boolean isMetBy(int method, int first, int second) {
+            return types.meeting(first, firsts[method]) && (second < 0 || types.meeting(second, seconds[method]));
+        }
+
+        boolean isForCall(int method, int function, int second) {
+            return functions[method] == function && seconds[method] < 0 == second < 0;
+        }
+
+        int unclearPairs(int function) {
+            return unclearPairsOf(groupAt(function, NONE_GIVEN, now)) + unclearPairsOf(groupAt(function, 0, now));
+        }
+
+        private int unclearPairsOf(long group) {
+            int pairs = 0;
+            for (int method = 0; method < size; method++) {
+                for (int other = method + 1; other < size; other++) {
+                    if (has(group, method) && has(group, other) && isMetBy(method, firsts[other], seconds[other])
+                            && !isUnder(method, other) && !isUnder(other, method)) {
+                        pairs++;
+                    }
+                }
+            }
+            return pairs;
+        }
+
+        /** Returns those that a call with values of these types can choose at the latest age. */
+        long possible(int function, int first, int second) {
+            long group = groupAt(function, second, now);
+            long possible = 0;
+            for (int method = 0; method < size; method++) {
+                if (has(group, method) && isMetBy(method, first, second)) {
+                    possible |= 1L << method;
+                }
+            }
+            return possible;
+        }
+
+        /** Returns the method that all values of these types choose at the latest age, or -1. */
+        int surely(int function, int first, int second) {
+            long possible = possible(function, first, second);
+            if (Long.bitCount(possible) != 1) {
+                return -1;
+            }
+            int method = Long.numberOfTrailingZeros(possible);
+            boolean isAbove = types.below(first, firsts[method])
+                    && (second < 0 || types.below(second, seconds[method]));
+            return isAbove ? method : -1;
+        }
+
+        int narrowedFirst(int method, int first) {
+            return narrowed(first, firsts[method]);
+        }
+
+        int narrowedSecond(int method, int second) {
+            return second < 0 ? second : narrowed(second, seconds[method]);
+        }
+
+        private int narrowed(int argument, int parameter) {
+            return types.below(parameter, argument) && !types.below(argument, parameter) ? parameter : argument;
+        }
+    }
+
+    /** Calls, each with a function, the types of its arguments, and what it has as its result. */
+    private static final class CallTable {
+        static final int OPEN = -1;
+        private static final int BUCKETS = 256;
+
+        private final int[] heads = new int[BUCKETS];
+        private int[] nexts = new int[32];
+        int[] functions = new int[32];
+        int[] firsts = new int[32];
+        int[] seconds = new int[32];
+        int[] results = new int[32];
+        int size;
+
+        CallTable() {
+            Arrays.fill(heads, -1);
+        }
+
+        void clear() {
+            Arrays.fill(heads, -1);
+            size = 0;
+        }
+
+        private static int bucketOf(int function, int first, int second) {
+            int mixed = function + first * 31 + second * 40503;
+            return (mixed ^ mixed >>> 8 ^ mixed >>> 16) & (BUCKETS - 1);
+        }
+
+        int find(int function, int first, int second) {
+            int index = heads[bucketOf(function, first, second)];
+            for (int left = size; index >= 0 && left > 0; left--) {
+                if (functions[index] == function && firsts[index] == first && seconds[index] == second) {
+                    return index;
+                }
+                index = nexts[index];
+            }
+            return -1;
+        }
+
+        int add(int function, int first, int second) {
+            if (size >= functions.length) {
+                int room = 2 * size;
+                nexts = Arrays.copyOf(nexts, room);
+                functions = Arrays.copyOf(functions, room);
+                firsts = Arrays.copyOf(firsts, room);
+                seconds = Arrays.copyOf(seconds, room);
+                results = Arrays.copyOf(results, room);
+            }
+            int index = size;
+            size++;
+            int bucket = bucketOf(function, first, second);
+            functions[index] = function;
+            firsts[index] = first;
+            seconds[index] = second;
+            results[index] = OPEN;
+            nexts[index] = heads[bucket];
+            heads[bucket] = index;
+            return index;
+        }
+
+        boolean hasSameCalls(CallTable other) {
+            if (size != other.size) {
+                return false;
+            }
+            for (int index = 0; index < size; index++) {
+                int there = other.find(functions[index], firsts[index], seconds[index]);
+                if (there < 0 || other.results[there] != results[index]) {
+                    return false;
+                }
+            }
+            return true;
+        }
+    }
+
+    /** What calls can have as their results, found in rounds. */
+    private static final class Inferring {
+        private static final int MOST_ROUNDS = 4;
+        private static final int MOST_WITHIN = 6;
+        private static final int MOST_FOUND = 4096;
+
+        private static final int NOT_MET = 0;
+        private static final int MET = 1;
+        private static final int MET_WITH_OTHERS = 2;
+
+        private final Types types;
+        private final Nodes nodes;
+        private final Book book;
+        private CallTable found = new CallTable();
+        private CallTable foundBefore = new CallTable();
+        private int round;
+        private boolean isFull;
+        private boolean isEnded;
+        private boolean isEachCallAny;
+
+        private final int[] memoTypes = new int[MOST_WITHIN * MOST_NODES];
+        private final int[] memoStamps = new int[MOST_WITHIN * MOST_NODES];
+        private final int[] bodyStamps = new int[MOST_WITHIN];
+        private int lastStamp;
+
+        private final int[] metStates = new int[MOST_NODES];
+        private final int[] metFirsts = new int[MOST_NODES];
+        private final int[] metSeconds = new int[MOST_NODES];
+
+        Inferring(Types types, Nodes nodes, Book book) {
+            this.types = types;
+            this.nodes = nodes;
+            this.book = book;
+        }
+
+        /** Returns what the call can have; what was met and found then can be asked for until the next time. */
+        int settle(int function, int first, int second) {
+            int type = Types.ANY;
+            isFull = false;
+            isEnded = false;
+            found.clear();
+            for (round = 1; round <= MOST_ROUNDS && !isEnded && !isFull; round++) {
+                CallTable before = found;
+                found = foundBefore;
+                foundBefore = before;
+                found.clear();
+                Arrays.fill(metStates, NOT_MET);
+                type = callType(function, first, second, 0);
+                isEnded = round > 1 && !isFull && found.hasSameCalls(foundBefore);
+            }
+            if (isEnded) {
+                return type;
+            }
+            Arrays.fill(metStates, NOT_MET);
+            isEachCallAny = true;
+            bodiesType(function, first, second, 0);
+            isEachCallAny = false;
+            return Types.ANY;
+        }
+
+        boolean hasEnded() {
+            return isEnded;
+        }
+
+        CallTable lastRound() {
+            return found;
+        }
+
+        boolean isMet(int node) {
+            return metStates[node] != NOT_MET;
+        }
+
+        /** Tells whether the call of this node could be one whose method is the same each time. */
+        boolean isMetForSure(int node) {
+            return metStates[node] == MET && metFirsts[node] != Types.NONE && metSeconds[node] != Types.NONE;
+        }
+
+        int metFirst(int node) {
+            return metFirsts[node];
+        }
+
+        int metSecond(int node) {
+            return metSeconds[node];
+        }
+
+        private int callType(int function, int first, int second, int within) {
+            int index = found.find(function, first, second);
+            if (index >= 0 && found.results[index] != CallTable.OPEN) {
+                return found.results[index];
+            }
+            if (index >= 0) {
+                int before = foundBefore.find(function, first, second);
+                return before < 0 ? Types.NONE : foundBefore.results[before];
+            }
+            if (within >= MOST_WITHIN) {
+                return Types.ANY;
+            }
+            if (found.size >= MOST_FOUND) {
+                isFull = true;
+                return Types.ANY;
+            }
+            index = found.add(function, first, second);
+            int type = bodiesType(function, first, second, within);
+            if (round > 1 && types.isOneInt(type)) {
+                type = Types.INT;
+            }
+            found.results[index] = type;
+            return type;
+        }
+
+        private int bodiesType(int function, int first, int second, int within) {
+            long possible = book.possible(function, first, second);
+            int type = Types.NONE;
+            for (int method = 0; method < book.size; method++) {
+                if ((possible >>> method & 1L) != 0) {
+                    lastStamp++;
+                    bodyStamps[within] = lastStamp;
+                    type = types.join(type, nodeType(book.bodies[method], book.narrowedFirst(method, first),
+                            book.narrowedSecond(method, second), within));
+                }
+            }
+            return type;
+        }
+
+        /** A node that a body has in several places has the same type at each: the second time it is known. */
+        private int nodeType(int node, int first, int second, int within) {
+            int slot = within * MOST_NODES + node;
+            int stamp = bodyStamps[within];
+            if (memoStamps[slot] == stamp) {
+                return memoTypes[slot];
+            }
+            int type = kindType(node, first, second, within);
+            memoStamps[slot] = stamp;
+            memoTypes[slot] = type;
+            return type;
+        }
+
+        private int kindType(int node, int first, int second, int within) {
+            int kind = nodes.kinds[node];
+            int a = nodes.as[node];
+            int b = nodes.bs[node];
+            switch (kind) {
+                case 'n':
+                    return types.put(Types.ONE, a, 0);
+                case 'a':
+                    return a == 0 ? first : second < 0 ? Types.NONE : second;
+                case '?':
+                    return branchType(node, first, second, within);
+                case 'c':
+                    return calledType(node, first, second, within);
+                case 'l':
+                    nodeType(b, first, second, within);
+                    if (nodes.cs[node] >= 0) {
+                        nodeType(nodes.cs[node], first, second, within);
+                    }
+                    return Types.ANY;
+                case 'o':
+                    nodeType(b, first, second, within);
+                    return a;
+                case 'f':
+                    nodeType(a, first, second, within);
+                    return Types.INT;
+                case 'd':
+                    return Types.INT;
+                case 'x':
+                    int content = nodeType(a, first, second, within);
+                    return types.boxed(content, types.widened(content));
+                case 'u':
+                    return types.unboxed(nodeType(a, first, second, within));
+                case 't':
+                    nodeType(a, first, second, within);
+                    return Types.NONE;
+                case 'y':
+                    int tried = nodeType(a, first, second, within);
+                    return types.join(tried, nodeType(b, first, second, within));
+                default:
+                    int left = nodeType(a, first, second, within);
+                    return types.worked(kind, left, nodeType(b, first, second, within));
+            }
+        }
+
+        private int branchType(int node, int first, int second, int within) {
+            int condition = nodeType(nodes.as[node], first, second, within);
+            if (types.isOneInt(condition)) {
+                int part = types.intOf(condition) != 0 ? nodes.bs[node] : nodes.cs[node];
+                return nodeType(part, first, second, within);
+            }
+            if (!types.meeting(condition, Types.INT)) {
+                return Types.NONE;
+            }
+            int type = nodeType(nodes.bs[node], first, second, within);
+            return types.join(type, nodeType(nodes.cs[node], first, second, within));
+        }
+
+        private int calledType(int node, int first, int second, int within) {
+            int c = nodes.cs[node];
+            int callFirst = nodeType(nodes.bs[node], first, second, within);
+            int callSecond = c < 0 ? NONE_GIVEN : nodeType(c, first, second, within);
+            if (within == 0) {
+                note(node, callFirst, callSecond);
+            }
+            if (callFirst == Types.NONE || callSecond == Types.NONE) {
+                return Types.NONE;
+            }
+            if (isEachCallAny) {
+                return Types.ANY;
+            }
+            return callType(nodes.as[node], callFirst, callSecond, within + 1);
+        }
+
+        private void note(int node, int first, int second) {
+            boolean isOther = metStates[node] == MET && (metFirsts[node] != first || metSeconds[node] != second);
+            metStates[node] = isOther || metStates[node] == MET_WITH_OTHERS ? MET_WITH_OTHERS : MET;
+            metFirsts[node] = first;
+            metSeconds[node] = second;
+        }
+    }
+
+    /** Code made for kinds of arguments, with the calls fixed in it and the edges by which it becomes stale. */
+    private static final class Codes {
+        private static final int NEVER = Integer.MAX_VALUE;
+
+        private final Types types;
+        private final Nodes nodes;
+        private final Book book;
+        private final int[] functions = new int[MOST_CODES];
+        private final int[] firsts = new int[MOST_CODES];
+        private final int[] seconds = new int[MOST_CODES];
+        private final int[] madeAges = new int[MOST_CODES];
+        private final int[] staleAges = new int[MOST_CODES];
+        final int[] methods = new int[MOST_CODES];
+        final int[] fixedRows = new int[MOST_CODES * MOST_NODES];
+        final int[] fixedCounts = new int[MOST_CODES];
+        final int[] callCounts = new int[MOST_CODES];
+        final int[] edgeCounts = new int[MOST_CODES];
+        private final int[] edgeStarts = new int[MOST_CODES];
+        private final CallTable edgeTable = new CallTable();
+        int size;
+
+        Codes(Types types, Nodes nodes, Book book) {
+            this.types = types;
+            this.nodes = nodes;
+            this.book = book;
+        }
+
+        /** Returns the last code for a call that can be taken at an age, or -1. */
+        int find(int function, int first, int second, int age) {
+            for (int code = size - 1; code >= 0; code--) {
+                if (functions[code] == function && firsts[code] == first && seconds[code] == second
+                        && madeAges[code] <= age && age < staleAges[code]) {
+                    return code;
+                }
+            }
+            return -1;
+        }
+
+        /** Keeps code for the call that has just been settled. */
+        int keep(int function, int first, int second, Inferring inferring) {
+            if (size >= MOST_CODES) {
+                size = 0;
+                edgeTable.clear();
+            }
+            int code = size;
+            size++;
+            functions[code] = function;
+            firsts[code] = first;
+            seconds[code] = second;
+            madeAges[code] = book.now;
+            staleAges[code] = NEVER;
+            methods[code] = book.surely(function, first, second);
+            edgeStarts[code] = edgeTable.size;
+            edgeTable.add(function, first, second);
+            fixCalls(code, inferring);
+            if (inferring.hasEnded()) {
+                addFound(code, inferring.lastRound());
+            }
+            edgeCounts[code] = edgeTable.size - edgeStarts[code];
+            return code;
+        }
+
+        private void fixCalls(int code, Inferring inferring) {
+            int row = code * MOST_NODES;
+            Arrays.fill(fixedRows, row, row + MOST_NODES, -1);
+            fixedCounts[code] = 0;
+            callCounts[code] = 0;
+            if (methods[code] < 0) {
+                return;
+            }
+            int body = book.bodies[methods[code]];
+            nodes.reach(body);
+            for (int node = 0; node <= body; node++) {
+                if (nodes.isReachedCall(node)) {
+                    callCounts[code]++;
+                    fixCall(code, node, inferring);
+                }
+            }
+        }
+
+        private void fixCall(int code, int node, Inferring inferring) {
+            int function = nodes.as[node];
+            int first = inferring.metFirst(node);
+            int second = inferring.metSecond(node);
+            if (inferring.isMetForSure(node)) {
+                int method = book.surely(function, first, second);
+                fixedRows[code * MOST_NODES + node] = method;
+                fixedCounts[code] += method < 0 ? 0 : 1;
+            }
+            if (inferring.isMet(node) && !inferring.hasEnded()) {
+                addEdgeOnce(code, function, first, second);
+            }
+        }
+
+        private void addFound(int code, CallTable found) {
+            for (int index = 0; index < found.size; index++) {
+                addEdgeOnce(code, found.functions[index], found.firsts[index], found.seconds[index]);
+            }
+        }
+
+        private void addEdgeOnce(int code, int function, int first, int second) {
+            if (edgeTable.find(function, first, second) < edgeStarts[code]) {
+                edgeTable.add(function, first, second);
+            }
+        }
+
+        /** Makes code stale that a method touches which has just come or gone. */
+        void spoil(int method) {
+            for (int code = 0; code < size; code++) {
+                if (staleAges[code] == NEVER && hasEdgeTo(code, method)) {
+                    staleAges[code] = book.now;
+                }
+            }
+        }
+
+        private boolean hasEdgeTo(int code, int method) {
+            int end = edgeStarts[code] + edgeCounts[code];
+            for (int edge = edgeStarts[code]; edge < end; edge++) {
+                int second = edgeTable.seconds[edge];
+                if (book.isForCall(method, edgeTable.functions[edge], second)
+                        && book.isMetBy(method, edgeTable.firsts[edge], second)) {
+                    return true;
+                }
+            }
+            return false;
+        }
+
+        int countStale() {
+            int count = 0;
+            for (int code = 0; code < size; code++) {
+                count += staleAges[code] == NEVER ? 0 : 1;
+            }
+            return count;
+        }
+
+        int sumOf(int[] counts) {
+            int sum = 0;
+            for (int code = 0; code < size; code++) {
+                sum += counts[code];
+            }
+            return sum;
+        }
+    }
+
+    /** Values that are done and not used yet, each with its type and its int. */
+    private static final class Values {
+        static final int MOST = 512;
+
+        final int[] types = new int[MOST];
+        final int[] ints = new int[MOST];
+        int size;
+
+        void push(int type, int n) {
+            if (size < MOST) {
+                types[size] = type;
+                ints[size] = n;
+                size++;
+            }
+        }
+    }
+
+    /** Nodes that are begun and not over, each with how many of its operands are begun. */
+    private static final class Work {
+        static final int MOST = 512;
+
+        final int[] nodes = new int[MOST];
+        final int[] places = new int[MOST];
+        final int[] callDepths = new int[MOST];
+        final int[] valueDepths = new int[MOST];
+        int size;
+
+        void push(int node, int callDepth, int valueDepth) {
+            if (size < MOST) {
+                nodes[size] = node;
+                places[size] = 0;
+                callDepths[size] = callDepth;
+                valueDepths[size] = valueDepth;
+                size++;
+            }
+        }
+    }
+
+    /** Calls that are under way. Each has its own row of fixed methods, as its code can go while it lasts. */
+    private static final class Calls {
+        final int[] firsts = new int[MOST_CALLS];
+        final int[] firstInts = new int[MOST_CALLS];
+        final int[] seconds = new int[MOST_CALLS];
+        final int[] secondInts = new int[MOST_CALLS];
+        final int[] ages = new int[MOST_CALLS];
+        final int[] workStarts = new int[MOST_CALLS];
+        private final int[] fixedRows = new int[MOST_CALLS * MOST_NODES];
+        int depth;
+
+        /** Opens a call whose arguments are told from a place among the values on. */
+        void open(Values values, int at, int count, int age, int workStart) {
+            firsts[depth] = values.types[at];
+            firstInts[depth] = values.ints[at];
+            seconds[depth] = count > 1 ? values.types[at + 1] : NONE_GIVEN;
+            secondInts[depth] = count > 1 ? values.ints[at + 1] : 0;
+            ages[depth] = age;
+            workStarts[depth] = workStart;
+            Arrays.fill(fixedRows, depth * MOST_NODES, (depth + 1) * MOST_NODES, -1);
+            depth++;
+        }
+
+        void takeRow(int[] rows, int code) {
+            System.arraycopy(rows, code * MOST_NODES, fixedRows, (depth - 1) * MOST_NODES, MOST_NODES);
+        }
+
+        int fixedAt(int node) {
+            return fixedRows[(depth - 1) * MOST_NODES + node];
+        }
+    }
+
+    /** Runs a call step by step; no Java call stands open for a call or node of the language. */
+    private static final class Machine {
+        static final int GOING = 0;
+        static final int AT_DEFINE = 1;
+        private static final int MOST_TURNS = 1000000;
+
+        private final Types types;
+        private final Nodes nodes;
+        private final Book book;
+        private final Inferring inferring;
+        private final Codes codes;
+        private final Values values = new Values();
+        private final Work work = new Work();
+        private final Calls calls = new Calls();
+        private int stepLimit;
+        private boolean isByCode;
+        private boolean stopsAtDefine;
+        int outcome;
+        int endType;
+        int endInt;
+        int stepCount;
+        int lookupCount;
+        int takenCount;
+
+        Machine(Types types, Nodes nodes, Book book, Inferring inferring, Codes codes) {
+            this.types = types;
+            this.nodes = nodes;
+            this.book = book;
+            this.inferring = inferring;
+            this.codes = codes;
+        }
+
+        void go(int function, int first, int second, int limit, boolean byCode, boolean stops) {
+            stepLimit = limit;
+            isByCode = byCode;
+            stopsAtDefine = stops;
+            clear();
+            values.push(Types.INT, first);
+            if (second != NO_SECOND_INT) {
+                values.push(Types.INT, second);
+            }
+            call(function, values.size, book.now, -1);
+            for (int turn = 0; turn < MOST_TURNS && outcome == GOING; turn++) {
+                int node = advance();
+                if (node >= 0 && nodes.kinds[node] == 'c') {
+                    call(nodes.as[node], countOf(node), calls.ages[calls.depth - 1], calls.fixedAt(node));
+                } else if (node >= 0 && nodes.kinds[node] == 'l') {
+                    call(nodes.as[node], countOf(node), book.now, -1);
+                } else if (node >= 0) {
+                    apply(node);
+                }
+                leaveCalls();
+            }
+        }
+
+        private void clear() {
+            values.size = 0;
+            work.size = 0;
+            calls.depth = 0;
+            outcome = GOING;
+            endType = Types.ANY;
+            endInt = 0;
+            stepCount = 0;
+            lookupCount = 0;
+            takenCount = 0;
+        }
+
+        private int countOf(int node) {
+            return nodes.cs[node] < 0 ? 1 : 2;
+        }
+
+        /** Begins the next operand of the node that was begun last; returns this one if it has no more, or -1. */
+        private int advance() {
+            int top = work.size - 1;
+            int node = work.nodes[top];
+            int operand = nodes.operandAt(node, work.places[top]);
+            if (operand < 0) {
+                work.size = top;
+                return node;
+            }
+            work.places[top]++;
+            begin(operand);
+            return -1;
+        }
+
+        private void begin(int node) {
+            if (stepCount >= stepLimit) {
+                outcome = 's';
+            } else if (stopsAtDefine && nodes.kinds[node] == 'd') {
+                outcome = AT_DEFINE;
+            } else {
+                stepCount++;
+                work.push(node, calls.depth, values.size);
+            }
+        }
+
+        private void call(int function, int count, int age, int fixedMethod) {
+            int at = values.size - count;
+            if (calls.depth >= MOST_CALLS) {
+                outcome = 's';
+                return;
+            }
+            int first = values.types[at];
+            int second = count > 1 ? values.types[at + 1] : NONE_GIVEN;
+            int code = isByCode ? codes.find(function, first, second, age) : -1;
+            if (isByCode && code < 0 && age == book.now) {
+                inferring.settle(function, first, second);
+                code = codes.keep(function, first, second, inferring);
+            }
+            takenCount += code < 0 ? 0 : 1;
+            int method = code < 0 ? -1 : fixedMethod >= 0 ? fixedMethod : codes.methods[code];
+            if (method < 0) {
+                method = choose(function, age, at, count);
+            }
+            if (method < 0) {
+                outcome = method == -1 ? 'n' : 'a';
+                return;
+            }
+            calls.open(values, at, count, age, work.size);
+            if (code >= 0 && method == codes.methods[code]) {
+                calls.takeRow(codes.fixedRows, code);
+            }
+            values.size = at;
+            begin(book.bodies[method]);
+        }
+
+        private int choose(int function, int age, int at, int count) {
+            lookupCount++;
+            int second = count > 1 ? values.types[at + 1] : NONE_GIVEN;
+            int secondInt = count > 1 ? values.ints[at + 1] : 0;
+            return book.bestOf(book.matchingValues(function, age, values.types[at], values.ints[at],
+                    second, secondInt));
+        }
+
+        /** A call is over when none of its nodes is under way; its value is then that of the node that called. */
+        private void leaveCalls() {
+            if (outcome != GOING) {
+                return;
+            }
+            for (int left = MOST_CALLS; left > 0 && calls.depth > 0; left--) {
+                if (work.size != calls.workStarts[calls.depth - 1]) {
+                    return;
+                }
+                calls.depth--;
+            }
+            outcome = 'v';
+            endType = values.types[0];
+            endInt = values.ints[0];
+        }
+
+        private void apply(int node) {
+            int kind = nodes.kinds[node];
+            int a = nodes.as[node];
+            switch (kind) {
+                case 'n':
+                    values.push(Types.INT, a);
+                    break;
+                case 'a':
+                    pushArgument(a);
+                    break;
+                case '?':
+                    branch(node);
+                    break;
+                case 'o':
+                    change(values.types[values.size - 1] == Types.INT, a);
+                    break;
+                case 'f':
+                    change(types.isObject(values.types[values.size - 1]), Types.INT);
+                    break;
+                case 'x':
+                    fillBox();
+                    break;
+                case 'u':
+                    int boxType = values.types[values.size - 1];
+                    change(types.isBox(boxType), types.innerOf(boxType));
+                    break;
+                case 'd':
+                    bring(a);
+                    break;
+                case 't':
+                    raise();
+                    break;
+                case 'y':
+                    break;
+                default:
+                    work(kind);
+                    break;
+            }
+        }
+
+        private void pushArgument(int argument) {
+            int top = calls.depth - 1;
+            if (argument == 0) {
+                values.push(calls.firsts[top], calls.firstInts[top]);
+            } else if (calls.seconds[top] >= 0) {
+                values.push(calls.seconds[top], calls.secondInts[top]);
+            } else {
+                outcome = 'e';
+            }
+        }
+
+        /** Gives the last value another type, as objects and boxes carry the int of what they are made of. */
+        private void change(boolean isFit, int type) {
+            if (isFit) {
+                values.types[values.size - 1] = type;
+            } else {
+                outcome = 'e';
+            }
+        }
+
+        private void fillBox() {
+            int content = values.types[values.size - 1];
+            boolean isFit = types.depths[content] < Types.DEEPEST;
+            change(isFit, isFit ? types.put(Types.JUST, content, 0) : content);
+        }
+
+        private void branch(int node) {
+            int top = values.size - 1;
+            if (values.types[top] != Types.INT) {
+                outcome = 'e';
+                return;
+            }
+            values.size = top;
+            begin(values.ints[top] != 0 ? nodes.bs[node] : nodes.cs[node]);
+        }
+
+        private void work(int kind) {
+            int left = values.size - 2;
+            if (values.types[left] != Types.INT || values.types[left + 1] != Types.INT) {
+                outcome = 'e';
+                return;
+            }
+            values.ints[left] = worked(kind, values.ints[left], values.ints[left + 1]);
+            values.size = left + 1;
+        }
+
+        private void bring(int method) {
+            if (method >= book.size || book.isPresent(method, book.now)) {
+                outcome = 'e';
+                return;
+            }
+            book.bring(method);
+            codes.spoil(method);
+            values.push(Types.INT, book.now);
+        }
+
+        /** Throws the last value to the innermost node y; such a node stays under way only for its first node. */
+        private void raise() {
+            int top = values.size - 1;
+            if (values.types[top] != Types.INT) {
+                outcome = 'e';
+                return;
+            }
+            for (int index = work.size - 1; index >= 0; index--) {
+                int node = work.nodes[index];
+                if (nodes.kinds[node] == 'y') {
+                    calls.depth = work.callDepths[index];
+                    values.size = work.valueDepths[index];
+                    work.size = index;
+                    begin(nodes.bs[node]);
+                    return;
+                }
+            }
+            outcome = 't';
+            endInt = values.ints[top];
+        }
+    }
+
+    /** Counts the methods that can be reached from a call. */
+    private static final class Trimmer {
+        private static final int MOST_REACHED = 1000;
+
+        private final Nodes nodes;
+        private final Book book;
+        private final Inferring inferring;
+        private final CallTable reached = new CallTable();
+
+        Trimmer(Nodes nodes, Book book, Inferring inferring) {
+            this.nodes = nodes;
+            this.book = book;
+            this.inferring = inferring;
+        }
+
+        /** Returns the number of methods, -1 if it cannot be told. */
+        int countFrom(int function, int first, int second) {
+            long methods = 0;
+            reached.clear();
+            if (first != Types.NONE && second != Types.NONE) {
+                reached.add(function, first, second);
+            }
+            // Types of one int can make a chain of calls that has no end: the bound ends it.
+            for (int index = 0; index < reached.size && index < MOST_REACHED; index++) {
+                int method = book.surely(reached.functions[index], reached.firsts[index], reached.seconds[index]);
+                if (method < 0) {
+                    return -1;
+                }
+                methods |= 1L << method;
+                inferring.settle(reached.functions[index], reached.firsts[index], reached.seconds[index]);
+                if (!addCalls(book.bodies[method])) {
+                    return -1;
+                }
+            }
+            return Long.bitCount(methods);
+        }
+
+        /** Adds the calls of a body that has just been settled; tells whether it has neither l nor d. */
+        private boolean addCalls(int body) {
+            nodes.reach(body);
+            for (int node = 0; node <= body; node++) {
+                if (nodes.isReachedLate(node)) {
+                    return false;
+                }
+                if (nodes.isReachedCall(node) && inferring.isMetForSure(node)) {
+                    addOnce(nodes.as[node], inferring.metFirst(node), inferring.metSecond(node));
+                }
+            }
+            return true;
+        }
+
+        private void addOnce(int function, int first, int second) {
+            if (reached.find(function, first, second) < 0) {
+                reached.add(function, first, second);
+            }
+        }
+    }
+}
