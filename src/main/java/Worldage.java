@@ -1064,8 +1064,8 @@ public final class Worldage {
         private static final int MOST_FOUND = 4096;
 
         private static final int NOT_MET = 0;
-        private static final int MET = 1;
-        private static final int MET_WITH_OTHERS = 2;
+        private static final int MET_ALIKE = 1;
+        private static final int MET_OTHERWISE = 2;
 
         private final Types types;
         private final Nodes nodes;
@@ -1129,9 +1129,12 @@ public final class Worldage {
             return metStates[node] != NOT_MET;
         }
 
-        /** Tells whether the call of this node could be one whose method is the same each time. */
-        boolean isMetForSure(int node) {
-            return metStates[node] == MET && metFirsts[node] != Types.NONE && metSeconds[node] != Types.NONE;
+        boolean isMetWithValues(int node) {
+            return isMet(node) && metFirsts[node] != Types.NONE && metSeconds[node] != Types.NONE;
+        }
+
+        boolean isMetAlike(int node) {
+            return metStates[node] == MET_ALIKE;
         }
 
         int metFirst(int node) {
@@ -1255,9 +1258,7 @@ public final class Worldage {
             int c = nodes.cs[node];
             int callFirst = nodeType(nodes.bs[node], first, second, within);
             int callSecond = c < 0 ? NONE_GIVEN : nodeType(c, first, second, within);
-            if (within == 0) {
-                note(node, callFirst, callSecond);
-            }
+            note(node, callFirst, callSecond);
             if (callFirst == Types.NONE || callSecond == Types.NONE) {
                 return Types.NONE;
             }
@@ -1268,8 +1269,8 @@ public final class Worldage {
         }
 
         private void note(int node, int first, int second) {
-            boolean isOther = metStates[node] == MET && (metFirsts[node] != first || metSeconds[node] != second);
-            metStates[node] = isOther || metStates[node] == MET_WITH_OTHERS ? MET_WITH_OTHERS : MET;
+            boolean isOther = metStates[node] == MET_ALIKE && (metFirsts[node] != first || metSeconds[node] != second);
+            metStates[node] = isOther || metStates[node] == MET_OTHERWISE ? MET_OTHERWISE : MET_ALIKE;
             metFirsts[node] = first;
             metSeconds[node] = second;
         }
@@ -1359,7 +1360,7 @@ public final class Worldage {
             int function = nodes.as[node];
             int first = inferring.metFirst(node);
             int second = inferring.metSecond(node);
-            if (inferring.isMetForSure(node)) {
+            if (inferring.isMetWithValues(node) && inferring.isMetAlike(node)) {
                 int method = book.surely(function, first, second);
                 fixedRows[code * MOST_NODES + node] = method;
                 fixedCounts[code] += method < 0 ? 0 : 1;
@@ -1794,14 +1795,17 @@ public final class Worldage {
             return Long.bitCount(methods);
         }
 
-        /** Adds the calls of a body that has just been settled; tells whether it has neither l nor d. */
+        /** Adds the calls of a body that has just been settled; tells whether each of its nodes lets it be told. */
         private boolean addCalls(int body) {
             nodes.reach(body);
             for (int node = 0; node <= body; node++) {
                 if (nodes.isReachedLate(node)) {
                     return false;
                 }
-                if (nodes.isReachedCall(node) && inferring.isMetForSure(node)) {
+                if (nodes.isReachedCall(node) && inferring.isMetWithValues(node)) {
+                    if (!inferring.isMetAlike(node)) {
+                        return false;
+                    }
                     addOnce(nodes.as[node], inferring.metFirst(node), inferring.metSecond(node));
                 }
             }
