@@ -17,7 +17,7 @@ public final class Worldage {
     private final Nodes nodes = new Nodes();
     private final Book book = new Book(types);
     private final Inferring inferring = new Inferring(types, nodes, book);
-    private final Codes codes = new Codes(types, nodes, book);
+    private final Codes codes = new Codes(nodes, book);
     private final Machine machine = new Machine(types, nodes, book, inferring, codes);
     private final Trimmer trimmer = new Trimmer(nodes, book, inferring);
 
@@ -658,7 +658,7 @@ public final class Worldage {
         final int[] bs = new int[MOST_NODES];
         final int[] cs = new int[MOST_NODES];
         private final int[] depths = new int[MOST_NODES];
-        private final boolean[] isReached = new boolean[MOST_NODES];
+        private final int[] reached = new int[MOST_NODES];
         int size;
 
         boolean isKind(int kind) {
@@ -768,29 +768,29 @@ public final class Worldage {
 
         /** Marks all nodes of a body; operands are always told ahead of the node that has them. */
         void reach(int body) {
-            Arrays.fill(isReached, false);
-            isReached[body] = true;
+            Arrays.fill(reached, 0);
+            reached[body] = 1;
             for (int node = body; node >= 0; node--) {
-                if (isReached[node]) {
+                if (reached[node] != 0) {
                     if (hasNodeA(kinds[node])) {
-                        isReached[as[node]] = true;
+                        reached[as[node]] = 1;
                     }
                     if (hasNodeB(kinds[node])) {
-                        isReached[bs[node]] = true;
+                        reached[bs[node]] = 1;
                     }
                     if (hasNodeC(kinds[node], cs[node])) {
-                        isReached[cs[node]] = true;
+                        reached[cs[node]] = 1;
                     }
                 }
             }
         }
 
         boolean isReachedCall(int node) {
-            return isReached[node] && kinds[node] == 'c';
+            return reached[node] != 0 && kinds[node] == 'c';
         }
 
         boolean isReachedLate(int node) {
-            return isReached[node] && (kinds[node] == 'l' || kinds[node] == 'd');
+            return reached[node] != 0 && (kinds[node] == 'l' || kinds[node] == 'd');
         }
     }
 
@@ -961,14 +961,17 @@ public final class Worldage {
 
         /** Returns the method that all values of these types choose at the latest age, or -1. */
         int surely(int function, int first, int second) {
-            long possible = possible(function, first, second);
-            if (Long.bitCount(possible) != 1) {
+            long above = matchingTypes(function, first, second, now);
+            if (above == 0) {
                 return -1;
             }
-            int method = Long.numberOfTrailingZeros(possible);
-            boolean isAbove = types.below(first, firsts[method])
-                    && (second < 0 || types.below(second, seconds[method]));
-            return isAbove ? method : -1;
+            long possible = possible(function, first, second);
+            for (int method = 0; method < size; method++) {
+                if (has(above, method) && (possible & ~(1L << method)) == 0) {
+                    return method;
+                }
+            }
+            return -1;
         }
 
         int narrowedFirst(int method, int first) {
@@ -1077,11 +1080,6 @@ public final class Worldage {
         private boolean isEnded;
         private boolean isEachCallAny;
 
-        private final int[] memoTypes = new int[MOST_WITHIN * MOST_NODES];
-        private final int[] memoStamps = new int[MOST_WITHIN * MOST_NODES];
-        private final int[] bodyStamps = new int[MOST_WITHIN];
-        private int lastStamp;
-
         private final int[] metStates = new int[MOST_NODES];
         private final int[] metFirsts = new int[MOST_NODES];
         private final int[] metSeconds = new int[MOST_NODES];
@@ -1098,7 +1096,8 @@ public final class Worldage {
             isFull = false;
             isEnded = false;
             found.clear();
-            for (round = 1; round <= MOST_ROUNDS && !isEnded && !isFull; round++) {
+            for (int rounds = 1; rounds <= MOST_ROUNDS && !isEnded && !isFull; rounds++) {
+                round = rounds;
                 CallTable before = found;
                 found = foundBefore;
                 foundBefore = before;
@@ -1175,8 +1174,6 @@ public final class Worldage {
             int type = Types.NONE;
             for (int method = 0; method < book.size; method++) {
                 if ((possible >>> method & 1L) != 0) {
-                    lastStamp++;
-                    bodyStamps[within] = lastStamp;
                     type = types.join(type, nodeType(book.bodies[method], book.narrowedFirst(method, first),
                             book.narrowedSecond(method, second), within));
                 }
@@ -1184,20 +1181,7 @@ public final class Worldage {
             return type;
         }
 
-        /** A node that a body has in several places has the same type at each: the second time it is known. */
         private int nodeType(int node, int first, int second, int within) {
-            int slot = within * MOST_NODES + node;
-            int stamp = bodyStamps[within];
-            if (memoStamps[slot] == stamp) {
-                return memoTypes[slot];
-            }
-            int type = kindType(node, first, second, within);
-            memoStamps[slot] = stamp;
-            memoTypes[slot] = type;
-            return type;
-        }
-
-        private int kindType(int node, int first, int second, int within) {
             int kind = nodes.kinds[node];
             int a = nodes.as[node];
             int b = nodes.bs[node];
@@ -1280,7 +1264,6 @@ public final class Worldage {
     private static final class Codes {
         private static final int NEVER = Integer.MAX_VALUE;
 
-        private final Types types;
         private final Nodes nodes;
         private final Book book;
         private final int[] functions = new int[MOST_CODES];
@@ -1297,8 +1280,7 @@ public final class Worldage {
         private final CallTable edgeTable = new CallTable();
         int size;
 
-        Codes(Types types, Nodes nodes, Book book) {
-            this.types = types;
+        Codes(Nodes nodes, Book book) {
             this.nodes = nodes;
             this.book = book;
         }

@@ -1,0 +1,357 @@
+import java.util.Random;
+
+/** All promises: calls by chance, the same in each run of this test, answered by Worldage as by the model. */
+public final class ModelTest {
+    private static final int NO = Integer.MIN_VALUE;
+    private static final String KINDS = "na+-*<?clofxudty";
+
+    interface Answer {
+        long give();
+    }
+
+    private final Random random;
+    private final Check check;
+    private final long seed;
+    private final Worldage x = new Worldage();
+    private final Model y = new Model();
+    private int calls;
+    private boolean isWrong;
+    private final StringBuilder told = new StringBuilder();
+    static long answers;
+    static long[] ends = new long[128];
+
+    ModelTest(long seed, Check check) {
+        this.seed = seed;
+        this.random = new Random(seed);
+        this.check = check;
+    }
+
+    public static void main(String[] args) {
+        Check check = new Check();
+        long from = args.length > 0 ? Long.parseLong(args[0]) : 1;
+        long to = args.length > 1 ? Long.parseLong(args[1]) : 1500;
+        int wrong = 0;
+        for (long seed = from; seed <= to && wrong < 3; seed++) {
+            ModelTest test = new ModelTest(seed, check);
+            test.go();
+            wrong += test.isWrong ? 1 : 0;
+        }
+        System.out.println(answers + " answers; ends of runs: v " + ends['v'] + " n " + ends['n'] + " a " + ends['a']
+                + " t " + ends['t'] + " e " + ends['e'] + " s " + ends['s']);
+        check.end();
+    }
+
+    private static String told(Answer answer) {
+        try {
+            return Long.toString(answer.give());
+        } catch (RuntimeException e) {
+            return "throws." + e.getClass().getSimpleName();
+        }
+    }
+
+    private String same(String what, Answer mine, Answer due) {
+        if (isWrong || calls >= 512) {
+            return "";
+        }
+        calls++;
+        answers++;
+        String a = told(mine);
+        String b = told(due);
+        told.append(what).append(" -> ").append(b).append('\n');
+        if (!a.equals(b)) {
+            isWrong = true;
+            check.tell("seed " + seed + ", call " + calls + ": " + what + " due " + b + ", answered " + a);
+            if (System.getProperty("tell") != null) {
+                System.out.println(told);
+            }
+        }
+        return b;
+    }
+
+    private int upTo(int n) {
+        return random.nextInt(n);
+    }
+
+    private boolean isChance(int percent) {
+        return random.nextInt(100) < percent;
+    }
+
+    private void go() {
+        int style = upTo(4);
+        int typeCalls = 4 + upTo(style == 0 ? 60 : 14);
+        for (int i = 0; i < typeCalls; i++) {
+            makeType();
+        }
+        leaves();
+        int nodeCalls = 10 + upTo(style == 1 ? 110 : 40);
+        for (int i = 0; i < nodeCalls; i++) {
+            makeNode();
+        }
+        int methodCalls = 6 + upTo(style == 2 ? 40 : 16);
+        for (int i = 0; i < methodCalls; i++) {
+            makeMethod();
+            if (isChance(75)) {
+                define();
+            }
+        }
+        int rest = 60 + upTo(300);
+        for (int i = 0; i < rest && !isWrong; i++) {
+            callByChance();
+        }
+    }
+
+    private int aType() {
+        int n = y.types.size();
+        return isChance(3) ? upTo(70) - 5 : isChance(35) ? 1 : isChance(20) ? 0 : upTo(n);
+    }
+
+    private int aSecondType() {
+        return isChance(60) ? -1 : aType();
+    }
+
+    private int aFunction() {
+        return isChance(2) ? upTo(10) - 2 : isChance(70) ? upTo(2) : upTo(6);
+    }
+
+    private int aNode() {
+        int n = Math.max(1, y.nodes.size());
+        return isChance(2) ? upTo(130) - 5 : isChance(60) ? n - 1 - upTo(Math.min(n, 12)) : upTo(n);
+    }
+
+    private int aMethod() {
+        int n = Math.max(1, y.methods.size());
+        return isChance(3) ? upTo(45) - 2 : upTo(n);
+    }
+
+    private int anInt() {
+        return isChance(3) ? random.nextInt() : upTo(7) - 2;
+    }
+
+    private int anAge() {
+        return isChance(4) ? upTo(8) - 4 : isChance(40) ? y.now() : upTo(y.now() + 2);
+    }
+
+    private void makeType() {
+        int a = aType();
+        int b = aType();
+        int n = anInt();
+        boolean isConcrete = isChance(60);
+        switch (upTo(8)) {
+            case 0: case 1: {
+                int parent = isChance(50) ? 0 : a;
+                same("named(" + parent + "," + isConcrete + ")", () -> x.named(parent, isConcrete),
+                        () -> y.named(parent, isConcrete));
+                break;
+            }
+            case 2: case 3:
+                same("ofInt(" + n + ")", () -> x.ofInt(n), () -> y.ofInt(n));
+                break;
+            case 4:
+                same("box(" + a + ")", () -> x.box(a), () -> y.box(a));
+                break;
+            case 5:
+                same("boxBelow(" + a + ")", () -> x.boxBelow(a), () -> y.boxBelow(a));
+                break;
+            default:
+                same("union(" + a + "," + b + ")", () -> x.union(a, b), () -> y.union(a, b));
+        }
+    }
+
+    private void node(char kind, int a, int b, int c) {
+        same("node('" + kind + "'," + a + "," + b + "," + c + ")", () -> x.node(kind, a, b, c),
+                () -> y.node(kind, a, b, c));
+    }
+
+    private void leaves() {
+        node('a', 0, 0, 0);
+        node('a', 1, 0, 0);
+        node('n', 1, 0, 0);
+        node('n', 2, 0, 0);
+        node('-', 0, 2, 0);
+        node('<', 0, 3, 0);
+    }
+
+    private void makeNode() {
+        int a = aNode();
+        int b = aNode();
+        int c = aNode();
+        if (isChance(3)) {
+            node(isChance(30) ? (char) upTo(300) : KINDS.charAt(upTo(KINDS.length())), upTo(60) - 5, b, c);
+            return;
+        }
+        char kind = isChance(35) ? 'c' : KINDS.charAt(upTo(KINDS.length()));
+        switch (kind) {
+            case 'n':
+                node(kind, anInt(), 0, 0);
+                break;
+            case 'a':
+                node(kind, upTo(2), 0, 0);
+                break;
+            case 'd':
+                node(kind, upTo(isChance(10) ? 42 : 14), 0, 0);
+                break;
+            case 'c': case 'l':
+                node(kind, aFunction(), b, isChance(60) ? -1 : c);
+                break;
+            case 'o':
+                node(kind, aType(), b, 0);
+                break;
+            default:
+                node(kind, a, b, c);
+        }
+    }
+
+    private void makeMethod() {
+        int function = aFunction();
+        int first = aType();
+        int second = aSecondType();
+        int body = isChance(70) ? Math.max(0, y.nodes.size() - 1 - upTo(40)) : aNode();
+        same("prepare(" + function + "," + first + "," + second + "," + body + ")",
+                () -> x.prepare(function, first, second, body), () -> y.prepare(function, first, second, body));
+    }
+
+    private void define() {
+        int m = isChance(50) ? y.methods.size() - 1 : aMethod();
+        same("define(" + m + ")", () -> x.define(m), () -> y.define(m));
+    }
+
+    private void callByChance() {
+        int m = aMethod();
+        int age = anAge();
+        int function = aFunction();
+        int first = aType();
+        int second = aSecondType();
+        switch (upTo(24)) {
+            case 0:
+                if (isChance(20)) {
+                    makeType();
+                } else {
+                    makeMethod();
+                }
+                break;
+            case 1: case 2:
+                define();
+                break;
+            case 3:
+                same("takeAway(" + m + ")", () -> x.takeAway(m), () -> y.takeAway(m));
+                break;
+            case 4:
+                same("isThere(" + m + "," + age + ")", () -> x.isThere(m, age) ? 1 : 0,
+                        () -> y.isThere(m, age) ? 1 : 0);
+                break;
+            case 5: case 6:
+                same("chosen(" + function + "," + first + "," + second + "," + age + ")",
+                        () -> x.chosen(function, first, second, age), () -> y.chosen(function, first, second, age));
+                break;
+            case 7:
+                same("unclear(" + function + ")", () -> x.unclear(function), () -> y.unclear(function));
+                break;
+            case 8: case 9: case 10:
+                same("infer(" + function + "," + first + "," + second + ")",
+                        () -> x.infer(function, first, second), () -> y.infer(function, first, second));
+                break;
+            case 11: case 12:
+                same("trim(" + function + "," + first + "," + second + ")",
+                        () -> x.trim(function, first, second), () -> y.trim(function, first, second));
+                break;
+            case 13:
+                askTypes();
+                break;
+            case 14: case 15:
+                isSame();
+                break;
+            default:
+                run();
+        }
+        if (isChance(30)) {
+            askCodes();
+        }
+    }
+
+    private void askTypes() {
+        int a = aType();
+        int b = aType();
+        same("isBelow(" + a + "," + b + ")", () -> x.isBelow(a, b) ? 1 : 0, () -> y.isBelow(a, b) ? 1 : 0);
+        same("meet(" + a + "," + b + ")", () -> x.meet(a, b) ? 1 : 0, () -> y.meet(a, b) ? 1 : 0);
+        same("meet(" + b + "," + a + ")", () -> x.meet(b, a) ? 1 : 0, () -> y.meet(b, a) ? 1 : 0);
+        same("types()", x::types, y.types::size);
+    }
+
+    private int aLimit() {
+        return isChance(5) ? upTo(3) * 500 + upTo(3) - 1 : isChance(50) ? 1000 : 1 + upTo(100);
+    }
+
+    private void isSame() {
+        int function = aFunction();
+        int first = anInt();
+        int second = isChance(50) ? NO : anInt();
+        int limit = aLimit();
+        String is = same("isSame(" + function + "," + first + "," + second + "," + limit + ")",
+                () -> x.isSame(function, first, second, limit) ? 1 : 0,
+                () -> y.isSame(function, first, second, limit) ? 1 : 0);
+        if (is.equals("0")) {
+            isWrong = true;
+            check.tell("seed " + seed + ": with code and without is not the same");
+        }
+    }
+
+    private void run() {
+        int function = aFunction();
+        int first = anInt();
+        int second = isChance(50) ? NO : anInt();
+        int limit = aLimit();
+        boolean isByCode = isChance(65);
+        String end = same("run(" + function + "," + first + "," + second + "," + limit + "," + isByCode + ")",
+                () -> x.run(function, first, second, limit, isByCode),
+                () -> y.run(function, first, second, limit, isByCode));
+        if (!end.isEmpty() && !end.startsWith("throws")) {
+            ends[Integer.parseInt(end)]++;
+        }
+        same("lookups()", x::lookups, () -> y.lookups);
+        if (isByCode) {
+            same("taken()", x::taken, () -> y.taken);
+        }
+        same("steps()", x::steps, () -> y.steps);
+        if (isChance(50)) {
+            same("result()", x::result, y::result);
+        }
+        if (isChance(40)) {
+            same("resultType()", x::resultType, y::resultType);
+        }
+        if (isChance(10)) {
+            same("allSteps()", x::allSteps, () -> y.allSteps);
+        }
+        if (isChance(30)) {
+            same("age()", x::age, y::age);
+        }
+    }
+
+    private void askCodes() {
+        int n = Math.max(1, y.codes.size());
+        int code = isChance(4) ? upTo(70) - 4 : n - 1 - upTo(Math.min(n, 8));
+        switch (upTo(7)) {
+            case 0:
+                same("codes()", x::codes, y.codes::size);
+                break;
+            case 1:
+                same("stale()", x::stale, y::stale);
+                break;
+            case 2:
+                same("edges(" + code + ")", () -> x.edges(code), () -> y.edges(code));
+                break;
+            case 3:
+                same("fixed(" + code + ")", () -> x.fixed(code), () -> y.fixed(code));
+                break;
+            case 4:
+                same("methodOf(" + code + ")", () -> x.methodOf(code), () -> y.methodOf(code));
+                break;
+            case 5:
+                same("fixedShare()", () -> Float.floatToIntBits(x.fixedShare()),
+                        () -> Float.floatToIntBits(y.fixedShare()));
+                break;
+            default:
+                same("meanEdges()", () -> Double.doubleToLongBits(x.meanEdges()),
+                        () -> Double.doubleToLongBits(y.meanEdges()));
+        }
+    }
+}
