@@ -508,23 +508,15 @@ public final class Worldage {
             return true;
         }
 
-        boolean below(int s, int t) {
-            return sub(s, t);
-        }
-
-        boolean meeting(int s, int t) {
-            return cross(s, t);
-        }
-
-        private boolean sub(int s, int t) {
+        private boolean below(int s, int t) {
             if (s == t || s == NONE || t == ANY) {
                 return true;
             }
             if (kinds[s] == UNION) {
-                return sub(firsts[s], t) && sub(seconds[s], t);
+                return below(firsts[s], t) && below(seconds[s], t);
             }
             if (kinds[t] == UNION) {
-                return sub(s, firsts[t]) || sub(s, seconds[t]);
+                return below(s, firsts[t]) || below(s, seconds[t]);
             }
             if (kinds[s] == ONE) {
                 return t == INT;
@@ -537,38 +529,38 @@ public final class Worldage {
                 return above == t;
             }
             if (kinds[s] == JUST && kinds[t] == JUST) {
-                return sub(firsts[s], firsts[t]) && sub(firsts[t], firsts[s]);
+                return below(firsts[s], firsts[t]) && below(firsts[t], firsts[s]);
             }
-            return isBox(s) && kinds[t] == BELOW && sub(firsts[s], firsts[t]);
+            return (kinds[s] == JUST || kinds[s] == BELOW) && kinds[t] == BELOW && below(firsts[s], firsts[t]);
         }
 
-        private boolean cross(int s, int t) {
+        private boolean meeting(int s, int t) {
             if (s == NONE || t == NONE) {
                 return false;
             }
-            if (sub(s, t) || sub(t, s)) {
+            if (below(s, t) || below(t, s)) {
                 return true;
             }
             if (kinds[s] == UNION) {
-                return cross(firsts[s], t) || cross(seconds[s], t);
+                return meeting(firsts[s], t) || meeting(seconds[s], t);
             }
             if (kinds[t] == UNION) {
-                return cross(s, firsts[t]) || cross(s, seconds[t]);
+                return meeting(s, firsts[t]) || meeting(s, seconds[t]);
             }
             if (kinds[s] == BELOW && kinds[t] == BELOW) {
                 return true;
             }
             if (kinds[s] == JUST && kinds[t] == BELOW) {
-                return sub(firsts[s], firsts[t]);
+                return below(firsts[s], firsts[t]);
             }
-            return kinds[s] == BELOW && kinds[t] == JUST && sub(firsts[t], firsts[s]);
+            return kinds[s] == BELOW && kinds[t] == JUST && below(firsts[t], firsts[s]);
         }
 
         int join(int s, int t) {
-            if (sub(s, t)) {
+            if (below(s, t)) {
                 return t;
             }
-            if (sub(t, s)) {
+            if (below(t, s)) {
                 return s;
             }
             if (depths[s] >= DEEPEST || depths[t] >= DEEPEST) {
@@ -577,30 +569,22 @@ public final class Worldage {
             return put(UNION, s, t);
         }
 
-        boolean isValueOf(int type, int n, int t) {
-            return fits(type, n, t);
-        }
-
-        private boolean fits(int type, int n, int t) {
+        private boolean isValueOf(int type, int n, int t) {
             if (kinds[t] == ONE && type == INT && n == firsts[t]) {
                 return true;
             }
-            if (kinds[t] == UNION && (fits(type, n, firsts[t]) || fits(type, n, seconds[t]))) {
+            if (kinds[t] == UNION && (isValueOf(type, n, firsts[t]) || isValueOf(type, n, seconds[t]))) {
                 return true;
             }
-            return sub(type, t);
+            return below(type, t);
         }
 
-        int widened(int id) {
-            return widen(id);
-        }
-
-        private int widen(int id) {
+        private int widened(int id) {
             if (kinds[id] == ONE) {
                 return INT;
             }
             if (kinds[id] == UNION) {
-                return join(widen(firsts[id]), widen(seconds[id]));
+                return join(widened(firsts[id]), widened(seconds[id]));
             }
             return id;
         }
@@ -610,7 +594,7 @@ public final class Worldage {
             if (id == NONE) {
                 return NONE;
             }
-            if (sub(id, INT)) {
+            if (below(id, INT)) {
                 return put(JUST, INT, 0);
             }
             boolean isExact = isConcrete(id) || kinds[id] == JUST;
@@ -632,7 +616,7 @@ public final class Worldage {
             if (kinds[s] == ONE && kinds[t] == ONE) {
                 return put(ONE, Worldage.worked(kind, firsts[s], firsts[t]), 0);
             }
-            return cross(s, INT) && cross(t, INT) ? INT : NONE;
+            return meeting(s, INT) && meeting(t, INT) ? INT : NONE;
         }
     }
 
@@ -952,7 +936,8 @@ public final class Worldage {
             long group = groupAt(function, second, now);
             long possible = 0;
             for (int method = 0; method < size; method++) {
-                if (has(group, method) && isMetBy(method, first, second)) {
+                if (has(group, method) && types.meeting(first, firsts[method])
+                        && (second < 0 || types.meeting(second, seconds[method]))) {
                     possible |= 1L << method;
                 }
             }
@@ -1296,8 +1281,8 @@ public final class Worldage {
             return -1;
         }
 
-        /** Keeps code for the call that has just been settled. */
-        int keep(int function, int first, int second, Inferring inferring) {
+        /** Keeps code that has no call fixed and no edge but its own yet. */
+        int keep(int function, int first, int second) {
             if (size >= MOST_CODES) {
                 size = 0;
                 edgeTable.clear();
@@ -1310,21 +1295,17 @@ public final class Worldage {
             madeAges[code] = book.now;
             staleAges[code] = NEVER;
             methods[code] = book.surely(function, first, second);
+            fixedCounts[code] = 0;
+            callCounts[code] = 0;
             edgeStarts[code] = edgeTable.size;
+            edgeCounts[code] = 1;
             edgeTable.add(function, first, second);
-            fixCalls(code, inferring);
-            if (inferring.hasEnded()) {
-                addFound(code, inferring.lastRound());
-            }
-            edgeCounts[code] = edgeTable.size - edgeStarts[code];
+            Arrays.fill(fixedRows, code * MOST_NODES, (code + 1) * MOST_NODES, -1);
             return code;
         }
 
-        private void fixCalls(int code, Inferring inferring) {
-            int row = code * MOST_NODES;
-            Arrays.fill(fixedRows, row, row + MOST_NODES, -1);
-            fixedCounts[code] = 0;
-            callCounts[code] = 0;
+        /** Fixes the calls of the code that was kept last, for which its call has just been settled. */
+        void fixCalls(int code, Inferring inferring) {
             if (methods[code] < 0) {
                 return;
             }
@@ -1333,22 +1314,33 @@ public final class Worldage {
             for (int node = 0; node <= body; node++) {
                 if (nodes.isReachedCall(node)) {
                     callCounts[code]++;
-                    fixCall(code, node, inferring);
+                    if (inferring.isMetWithValues(node) && inferring.isMetAlike(node)) {
+                        int method = book.surely(nodes.as[node], inferring.metFirst(node), inferring.metSecond(node));
+                        fixedRows[code * MOST_NODES + node] = method;
+                        fixedCounts[code] += method < 0 ? 0 : 1;
+                    }
                 }
             }
         }
 
-        private void fixCall(int code, int node, Inferring inferring) {
-            int function = nodes.as[node];
-            int first = inferring.metFirst(node);
-            int second = inferring.metSecond(node);
-            if (inferring.isMetWithValues(node) && inferring.isMetAlike(node)) {
-                int method = book.surely(function, first, second);
-                fixedRows[code * MOST_NODES + node] = method;
-                fixedCounts[code] += method < 0 ? 0 : 1;
+        /** Draws the edges of the code that was kept last, for which its call has just been settled. */
+        void drawEdges(int code, Inferring inferring) {
+            if (inferring.hasEnded()) {
+                addFound(code, inferring.lastRound());
+            } else if (methods[code] >= 0) {
+                addMet(code, inferring);
             }
-            if (inferring.isMet(node) && !inferring.hasEnded()) {
-                addEdgeOnce(code, function, first, second);
+            edgeCounts[code] = edgeTable.size - edgeStarts[code];
+        }
+
+        /** As each call counts as having all values, code depends on nothing but the choices of its own calls. */
+        private void addMet(int code, Inferring inferring) {
+            int body = book.bodies[methods[code]];
+            nodes.reach(body);
+            for (int node = 0; node <= body; node++) {
+                if (nodes.isReachedCall(node) && inferring.isMet(node)) {
+                    addEdgeOnce(code, nodes.as[node], inferring.metFirst(node), inferring.metSecond(node));
+                }
             }
         }
 
@@ -1520,6 +1512,8 @@ public final class Worldage {
                     call(nodes.as[node], countOf(node), calls.ages[calls.depth - 1], calls.fixedAt(node));
                 } else if (node >= 0 && nodes.kinds[node] == 'l') {
                     call(nodes.as[node], countOf(node), book.now, -1);
+                } else if (node >= 0 && nodes.kinds[node] == 'd') {
+                    bring(nodes.as[node]);
                 } else if (node >= 0) {
                     apply(node);
                 }
@@ -1579,7 +1573,9 @@ public final class Worldage {
             int code = isByCode ? codes.find(function, first, second, age) : -1;
             if (isByCode && code < 0 && age == book.now) {
                 inferring.settle(function, first, second);
-                code = codes.keep(function, first, second, inferring);
+                code = codes.keep(function, first, second);
+                codes.fixCalls(code, inferring);
+                codes.drawEdges(code, inferring);
             }
             takenCount += code < 0 ? 0 : 1;
             int method = code < 0 ? -1 : fixedMethod >= 0 ? fixedMethod : codes.methods[code];
@@ -1647,9 +1643,6 @@ public final class Worldage {
                 case 'u':
                     int boxType = values.types[values.size - 1];
                     change(types.isBox(boxType), types.innerOf(boxType));
-                    break;
-                case 'd':
-                    bring(a);
                     break;
                 case 't':
                     raise();

@@ -87,6 +87,9 @@ public final class ModelTest {
         for (int i = 0; i < nodeCalls; i++) {
             makeNode();
         }
+        for (int i = upTo(6); i > 0; i--) {
+            makePattern();
+        }
         int methodCalls = 6 + upTo(style == 2 ? 40 : 16);
         for (int i = 0; i < methodCalls; i++) {
             makeMethod();
@@ -95,9 +98,79 @@ public final class ModelTest {
             }
         }
         int rest = 60 + upTo(300);
+        boolean isRestless = isChance(15);
         for (int i = 0; i < rest && !isWrong; i++) {
-            callByChance();
+            if (isRestless && isChance(80)) {
+                turnOne();
+            } else {
+                callByChance();
+            }
         }
+    }
+
+    /** Lets a method come or go, and needs code after that. */
+    private void turnOne() {
+        int m = upTo(Math.max(1, y.methods.size()));
+        if (m < y.methods.size() && y.isNow(m)) {
+            same("takeAway(" + m + ")", () -> x.takeAway(m), () -> y.takeAway(m));
+        } else {
+            same("define(" + m + ")", () -> x.define(m), () -> y.define(m));
+        }
+        int function = upTo(2);
+        int n = anInt();
+        same("run(" + function + "," + n + ",none,60,true)", () -> x.run(function, n, NO, 60, true),
+                () -> y.run(function, n, NO, 60, true));
+        same("codes()", x::codes, y.codes::size);
+    }
+
+    private int last() {
+        return y.nodes.size() - 1;
+    }
+
+    /** Bodies as programs have them: calls of oneself with less, boxes that grow, definitions ahead of calls. */
+    private void makePattern() {
+        int function = upTo(3);
+        if (y.nodes.size() < 6 || y.nodes.size() > 100) {
+            return;
+        }
+        node('c', upTo(3), isChance(50) ? 4 : upTo(y.nodes.size()), -1);
+        int call = last();
+        switch (upTo(6)) {
+            case 0:
+                node('+', call, aNode(), 0);
+                break;
+            case 1:
+                node('x', call, 0, 0);
+                break;
+            case 2:
+                node('d', upTo(10), 0, 0);
+                node('+', last(), call, 0);
+                break;
+            case 3:
+                node('d', upTo(10), 0, 0);
+                node('y', last(), 2, 0);
+                node('+', last(), call, 0);
+                node('c', function, last(), -1);
+                break;
+            case 4:
+                node('o', aType(), 0, 0);
+                node('c', function, last(), -1);
+                node('y', last(), call, 0);
+                break;
+            default:
+                node('u', call, 0, 0);
+        }
+        int done = last();
+        node('?', isChance(50) ? 0 : 5, done, aNode());
+        if (isChance(50)) {
+            node('?', 5, aNode(), done);
+        }
+        int body = last();
+        int first = isChance(50) ? 1 : isChance(50) ? 0 : aType();
+        same("prepare(" + function + "," + first + ",-1," + body + ")", () -> x.prepare(function, first, -1, body),
+                () -> y.prepare(function, first, -1, body));
+        int m = y.methods.size() - 1;
+        same("define(" + m + ")", () -> x.define(m), () -> y.define(m));
     }
 
     private int aType() {
@@ -301,11 +374,17 @@ public final class ModelTest {
         int second = isChance(50) ? NO : anInt();
         int limit = aLimit();
         boolean isByCode = isChance(65);
+        Model.T type = y.inferred(new Model.Call(function, y.ints, second == NO ? null : y.ints));
+        Model.T narrow = y.inferred(new Model.Call(function, one(first), second == NO ? null : one(second)));
         String end = same("run(" + function + "," + first + "," + second + "," + limit + "," + isByCode + ")",
                 () -> x.run(function, first, second, limit, isByCode),
                 () -> y.run(function, first, second, limit, isByCode));
         if (!end.isEmpty() && !end.startsWith("throws")) {
             ends[Integer.parseInt(end)]++;
+            if (y.runEnd == 'v' && !(y.isOf(y.runValue, type) && y.isOf(y.runValue, narrow))) {
+                isWrong = true;
+                check.tell("seed " + seed + ": the value is not of the type that was inferred");
+            }
         }
         same("lookups()", x::lookups, () -> y.lookups);
         if (isByCode) {
@@ -324,6 +403,10 @@ public final class ModelTest {
         if (isChance(30)) {
             same("age()", x::age, y::age);
         }
+    }
+
+    private static Model.T one(int n) {
+        return new Model.T('s', n, null, null);
     }
 
     private void askCodes() {
