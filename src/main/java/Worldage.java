@@ -1396,7 +1396,7 @@ public final class Worldage {
 
     /** Values that are done and not used yet, each with its type and its int. */
     private static final class Values {
-        static final int MOST = 512;
+        static final int MOST = 256;
 
         final int[] types = new int[MOST];
         final int[] ints = new int[MOST];
@@ -1413,7 +1413,7 @@ public final class Worldage {
 
     /** Nodes that are begun and not over, each with how many of its operands are begun. */
     private static final class Work {
-        static final int MOST = 512;
+        static final int MOST = 256;
 
         final int[] nodes = new int[MOST];
         final int[] places = new int[MOST];
