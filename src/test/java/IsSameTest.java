@@ -1,0 +1,54 @@
+import java.util.NoSuchElementException;
+
+/** Promise 32: isSame. */
+public final class IsSameTest {
+    private static final Check CHECK = new Check();
+    private static final int NO = Integer.MIN_VALUE;
+
+    public static void main(String[] args) {
+        Worldage x = new Worldage();
+        int dog = x.named(0, true);
+        int a = x.node('a', 0, 0, 0);
+        int one = x.node('n', 1, 0, 0);
+        int object = x.node('o', dog, a, 0);
+        int thrown = x.node('t', a, 0, 0);
+        int self = x.node('c', 3, a, -1);
+        x.define(x.prepare(0, 1, -1, x.node('+', a, one, 0)));
+        x.define(x.prepare(0, 1, 1, object));
+        x.define(x.prepare(1, 1, -1, thrown));
+        x.define(x.prepare(2, 1, -1, x.node('d', 0, 0, 0)));
+        x.define(x.prepare(3, 1, -1, self));
+        int late = x.prepare(5, 1, -1, one);
+        x.define(x.prepare(4, 1, -1, x.node('+', x.node('d', late, 0, 0), a, 0)));
+        CHECK.due("isSame", true, x.isSame(0, 5, NO, 99));
+        CHECK.throwing("no run yet", NoSuchElementException.class, x::result);
+        CHECK.due("no steps", 0, x.allSteps());
+        CHECK.due("code stays", 1, x.codes());
+        x.run(0, 5, NO, 99, false);
+        CHECK.due("run", 6, x.result());
+        CHECK.due("an object", true, x.isSame(0, 5, 6, 99));
+        CHECK.due("thrown", true, x.isSame(1, 5, NO, 99));
+        CHECK.due("no method", true, x.isSame(5, 5, NO, 99));
+        CHECK.due("no end", true, x.isSame(3, 5, NO, 99));
+        CHECK.due("too few steps", true, x.isSame(0, 5, NO, 1));
+        CHECK.due("an error d", true, x.isSame(2, 5, NO, 99));
+        int age = x.age();
+        CHECK.due("a node d", true, x.isSame(4, 5, NO, 99));
+        CHECK.due("is not done", age, x.age());
+        CHECK.due("what it would define is not there", false, x.isThere(late, age));
+        CHECK.due("the last run stays", 6, x.result());
+        CHECK.due("its type", 1, x.resultType());
+        CHECK.due("its steps", 3, x.steps());
+        CHECK.due("its lookups", 1, x.lookups());
+        CHECK.due("what it took", 0, x.taken());
+        CHECK.due("all steps", 3, x.allSteps());
+        CHECK.due("codes", 7, x.codes());
+        CHECK.due("a run does it", 'v', x.run(4, 5, NO, 99, true));
+        CHECK.due("the age is greater", age + 1, x.age());
+        CHECK.throwing("function 6", IllegalArgumentException.class, () -> x.isSame(6, 1, NO, 9));
+        CHECK.throwing("function -1", IllegalArgumentException.class, () -> x.isSame(-1, 1, NO, 9));
+        CHECK.throwing("0 steps", IllegalArgumentException.class, () -> x.isSame(0, 1, NO, 0));
+        CHECK.throwing("1001 steps", IllegalArgumentException.class, () -> x.isSame(0, 1, NO, 1001));
+        CHECK.end();
+    }
+}

@@ -1,0 +1,109 @@
+import java.util.NoSuchElementException;
+
+/** Promise 31: trim. */
+public final class TrimTest {
+    private static final Check CHECK = new Check();
+
+    public static void main(String[] args) {
+        chains();
+        refusedCalls();
+        lateNodes();
+        endless();
+        refused();
+        CHECK.end();
+    }
+
+    private static void chains() {
+        Worldage x = new Worldage();
+        int dog = x.named(0, true);
+        int three = x.ofInt(3);
+        int a = x.node('a', 0, 0, 0);
+        int one = x.node('n', 1, 0, 0);
+        int zero = x.node('n', 0, 0, 0);
+        int thrown = x.node('t', one, 0, 0);
+        int object = x.node('o', dog, a, 0);
+        int calls = x.node('+', x.node('c', 1, a, -1), x.node('c', 1, object, -1), 0);
+        x.define(x.prepare(0, 1, -1, calls));
+        x.define(x.prepare(1, 1, -1, one));
+        x.define(x.prepare(1, dog, -1, x.node('c', 2, a, a)));
+        x.define(x.prepare(2, dog, dog, one));
+        x.define(x.prepare(2, 1, 1, one));
+        CHECK.due("all four", 4, x.trim(0, 1, -1));
+        CHECK.due("of one int", 4, x.trim(0, three, -1));
+        CHECK.due("two", 2, x.trim(1, dog, -1));
+        CHECK.due("one", 1, x.trim(1, 1, -1));
+        CHECK.due("two arguments", 1, x.trim(2, 1, three));
+        CHECK.due("nothing as an argument", 0, x.trim(0, 2, -1));
+        CHECK.due("nothing as the second one", 0, x.trim(2, 1, 2));
+        CHECK.due("even of a function that is not there", 0, x.trim(5, 2, -1));
+        x.define(x.prepare(3, 1, -1, x.node('y', x.node('c', 5, thrown, -1), x.node('c', 1, a, -1), 0)));
+        CHECK.due("a call with nothing", 2, x.trim(3, 1, -1));
+        x.define(x.prepare(4, 1, -1, x.node('?', zero, x.node('c', 5, a, -1), one)));
+        CHECK.due("a call that is not met", 1, x.trim(4, 1, -1));
+        x.define(x.prepare(5, 1, -1, x.node('?', a, x.node('c', 5, a, -1), x.node('c', 4, a, -1))));
+        CHECK.due("itself, once; and the other one", 2, x.trim(5, 1, -1));
+        CHECK.due("by that what was not met is fixed", 1, x.trim(4, 1, -1));
+    }
+
+    private static void refusedCalls() {
+        Worldage x = new Worldage();
+        int animal = x.named(0, false);
+        int dog = x.named(animal, true);
+        int a = x.node('a', 0, 0, 0);
+        int one = x.node('n', 1, 0, 0);
+        x.define(x.prepare(0, dog, -1, one));
+        x.define(x.prepare(1, 0, -1, x.node('c', 0, a, -1)));
+        CHECK.throwing("not all animals", UnsupportedOperationException.class, () -> x.trim(0, animal, -1));
+        CHECK.throwing("none at all", UnsupportedOperationException.class, () -> x.trim(0, 1, -1));
+        CHECK.throwing("none with two", UnsupportedOperationException.class, () -> x.trim(0, dog, dog));
+        CHECK.throwing("in a body", UnsupportedOperationException.class, () -> x.trim(1, animal, -1));
+        CHECK.due("in a body with dogs", 2, x.trim(1, dog, -1));
+        x.define(x.prepare(0, animal, -1, one));
+        CHECK.throwing("two that meet", UnsupportedOperationException.class, () -> x.trim(0, dog, -1));
+        x.takeAway(0);
+        CHECK.due("one for all animals", 2, x.trim(1, animal, -1));
+    }
+
+    private static void lateNodes() {
+        Worldage x = new Worldage();
+        int a = x.node('a', 0, 0, 0);
+        int zero = x.node('n', 0, 0, 0);
+        int late = x.node('l', 1, a, -1);
+        int defined = x.node('d', 0, 0, 0);
+        x.define(x.prepare(0, 1, -1, x.node('?', zero, late, zero)));
+        x.define(x.prepare(1, 1, -1, x.node('y', zero, defined, 0)));
+        x.define(x.prepare(2, 1, -1, x.node('c', 1, a, -1)));
+        x.define(x.prepare(3, 1, -1, x.node('?', zero, x.node('c', 1, a, -1), zero)));
+        CHECK.throwing("l, even if it is not met", UnsupportedOperationException.class, () -> x.trim(0, 1, -1));
+        CHECK.throwing("d", UnsupportedOperationException.class, () -> x.trim(1, 1, -1));
+        CHECK.throwing("d in what is called", UnsupportedOperationException.class, () -> x.trim(2, 1, -1));
+        CHECK.due("d in what is not called", 1, x.trim(3, 1, -1));
+    }
+
+    /** Calls with one int after the other have no end; the answer has. */
+    private static void endless() {
+        Worldage x = new Worldage();
+        int a = x.node('a', 0, 0, 0);
+        int one = x.node('n', 1, 0, 0);
+        int more = x.node('+', a, one, 0);
+        x.define(x.prepare(0, 1, -1, x.node('c', 0, more, -1)));
+        CHECK.due("ints", 1, x.trim(0, 1, -1));
+        int zero = x.ofInt(0);
+        CHECK.throwing("met with several", UnsupportedOperationException.class, () -> x.trim(0, zero, -1));
+        x.takeAway(0);
+        for (int i = 0; i < 5; i++) {
+            x.define(x.prepare(i, 1, -1, x.node('c', i + 1, a, -1)));
+        }
+        x.define(x.prepare(5, 1, -1, x.node('c', 0, more, -1)));
+        CHECK.due("one int after the other", 6, x.trim(0, zero, -1));
+    }
+
+    private static void refused() {
+        Worldage x = new Worldage();
+        CHECK.throwing("function 6", IllegalArgumentException.class, () -> x.trim(6, 99, -1));
+        CHECK.throwing("function -1", IllegalArgumentException.class, () -> x.trim(-1, 1, -1));
+        CHECK.throwing("no type", NoSuchElementException.class, () -> x.trim(0, 3, -1));
+        CHECK.throwing("first -1", NoSuchElementException.class, () -> x.trim(0, -1, -1));
+        CHECK.throwing("second -2", NoSuchElementException.class, () -> x.trim(0, 1, -2));
+    }
+}
