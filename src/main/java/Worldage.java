@@ -354,14 +354,15 @@ public final class Worldage {
         static final int NONE = 2;
         static final int DEEPEST = 4;
 
-        static final int PLAIN = 0;
+        /** The kinds of types; 0 is that of ANY, INT and NONE. */
         static final int NAMED = 1;
         static final int ONE = 2;
         static final int JUST = 3;
         static final int BELOW = 4;
         static final int UNION = 5;
 
-        private static final int MOST_IDS = 65536;
+        private static final int MOST_IDS = 131072;
+        private static final int MOST_INFERRED_IDS = MOST_IDS - 2048;
         private static final int BUCKETS = 1024;
 
         private final int[] heads = new int[BUCKETS];
@@ -374,6 +375,8 @@ public final class Worldage {
         private int size;
         final int[] ids = new int[MOST_TYPES];
         int numbered;
+        /** Inferring leaves room for the types that calls and runs make. */
+        boolean isInferring;
 
         Types() {
             Arrays.fill(heads, -1);
@@ -395,7 +398,7 @@ public final class Worldage {
                     return id;
                 }
             }
-            if (size >= MOST_IDS) {
+            if (size >= (isInferring ? MOST_INFERRED_IDS : MOST_IDS)) {
                 return ANY;
             }
             if (size >= kinds.length) {
@@ -1049,7 +1052,7 @@ public final class Worldage {
     private static final class Inferring {
         private static final int MOST_ROUNDS = 4;
         private static final int MOST_WITHIN = 6;
-        private static final int MOST_FOUND = 4096;
+        private static final int MOST_FOUND = 20000;
 
         private static final int NOT_MET = 0;
         private static final int MET_ALIKE = 1;
@@ -1078,6 +1081,7 @@ public final class Worldage {
         /** Returns what the call can have; what was met and found then can be asked for until the next time. */
         int settle(int function, int first, int second) {
             int type = Types.ANY;
+            types.isInferring = true;
             isFull = false;
             isEnded = false;
             found.clear();
@@ -1091,14 +1095,15 @@ public final class Worldage {
                 type = callType(function, first, second, 0);
                 isEnded = round > 1 && !isFull && found.hasSameCalls(foundBefore);
             }
-            if (isEnded) {
-                return type;
+            if (!isEnded) {
+                type = Types.ANY;
+                Arrays.fill(metStates, NOT_MET);
+                isEachCallAny = true;
+                bodiesType(function, first, second, 0);
+                isEachCallAny = false;
             }
-            Arrays.fill(metStates, NOT_MET);
-            isEachCallAny = true;
-            bodiesType(function, first, second, 0);
-            isEachCallAny = false;
-            return Types.ANY;
+            types.isInferring = false;
+            return type;
         }
 
         boolean hasEnded() {
