@@ -11,7 +11,7 @@ public final class Worldage {
     private static final int MOST_STEPS = 1000;
     private static final int FUNCTIONS = 6;
     private static final int NONE_GIVEN = -1;
-    private static final int NO_SECOND_INT = Integer.MIN_VALUE;
+    private static final int NO_SECOND_INT = -2147483648;
 
     private final Types types = new Types();
     private final Nodes nodes = new Nodes();
@@ -1252,7 +1252,7 @@ public final class Worldage {
 
     /** Code made for kinds of arguments, with the calls fixed in it and the edges by which it becomes stale. */
     private static final class Codes {
-        private static final int NEVER = Integer.MAX_VALUE;
+        private static final int NEVER = 2147483647;
 
         private final Nodes nodes;
         private final Book book;

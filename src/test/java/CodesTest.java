@@ -132,6 +132,29 @@ public final class CodesTest {
         CHECK.due("one that calls it is stale", 1, x.stale());
         x.run(4, 1, NO, 99, true);
         CHECK.due("made again with those behind", 4, x.edges(5));
+        operandsOfAll();
+    }
+
+    /** Calls in operands are met, whatever the node with the operand has. */
+    private static void operandsOfAll() {
+        Worldage x = new Worldage();
+        int dog = x.named(0, true);
+        int a = x.node('a', 0, 0, 0);
+        int[] calls = new int[6];
+        for (int i = 1; i < 6; i++) {
+            calls[i] = x.node('c', i, a, -1);
+        }
+        int[] nodes = {x.node('l', 0, calls[1], calls[2]), x.node('o', dog, calls[3], 0), x.node('f', calls[4], 0, 0),
+            x.node('t', calls[5], 0, 0), x.node('+', x.node('t', calls[1], 0, 0), calls[2], 0),
+            x.node('?', calls[3], calls[4], calls[5])};
+        int[] edges = {3, 2, 2, 2, 3, 2};
+        for (int i = 0; i < nodes.length; i++) {
+            int method = x.prepare(0, 1, -1, nodes[i]);
+            x.define(method);
+            x.run(0, 1, NO, 1, true);
+            CHECK.due("edges of node " + i, edges[i], x.edges(x.codes() - 1));
+            x.takeAway(method);
+        }
     }
 
     private static void stale() {
@@ -266,6 +289,8 @@ public final class CodesTest {
         x.define(x.prepare(0, 1, -1, x.node('?', x.node('<', a, one, 0), growing, x.node('y', growing, shown, 0))));
         x.define(x.prepare(1, 0, -1, x.node('c', 2, a, -1)));
         x.define(x.prepare(2, 0, -1, a));
+        int other = x.node('c', 1, a, -1);
+        x.define(x.prepare(5, 0, -1, other));
         CHECK.due("infer", 0, x.infer(0, 1, -1));
         CHECK.due("run", 'v', x.run(0, 0, NO, 99, true));
         CHECK.due("itself, and 1 with anything", 2, x.edges(0));

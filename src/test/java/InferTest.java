@@ -14,6 +14,8 @@ public final class InferTest {
         narrowed();
         rounds();
         growing();
+        fourRounds();
+        joinsTooDeep();
         withinSix();
         refused();
         CHECK.end();
@@ -218,6 +220,39 @@ public final class InferTest {
         CHECK.due("growing", 0, x.infer(0, 1, -1));
         x.define(x.prepare(1, 1, -1, x.node('?', a, x.node('c', 1, one, -1), object)));
         CHECK.due("not growing", dog, x.infer(1, 1, -1));
+    }
+
+    /** The fourth round is as the third one was; with one step more on the way, it is not. */
+    private static void fourRounds() {
+        Worldage x = new Worldage();
+        int dog = x.named(0, true);
+        int cat = x.named(0, true);
+        int bird = x.named(0, true);
+        int a = x.node('a', 0, 0, 0);
+        int one = x.node('n', 1, 0, 0);
+        int self = x.node('c', 0, x.node('-', a, one, 0), -1);
+        int turned = x.node('c', 1, self, -1);
+        x.define(x.prepare(0, 1, -1, x.node('?', a, turned, x.node('o', dog, one, 0))));
+        x.define(x.prepare(1, dog, -1, x.node('o', cat, one, 0)));
+        x.define(x.prepare(1, cat, -1, x.node('o', cat, one, 0)));
+        CHECK.due("cats and dogs", x.union(cat, dog), x.infer(0, 1, -1));
+        x.define(x.prepare(1, cat, -1, x.node('o', bird, one, 0)));
+        x.define(x.prepare(1, bird, -1, x.node('o', bird, one, 0)));
+        CHECK.due("one step more", 0, x.infer(0, 1, -1));
+    }
+
+    private static void joinsTooDeep() {
+        Worldage x = new Worldage();
+        int dog = x.named(0, true);
+        int a = x.node('a', 0, 0, 0);
+        int one = x.node('n', 1, 0, 0);
+        int object = x.node('o', dog, one, 0);
+        int deep = x.box(x.box(x.box(x.box(dog))));
+        CHECK.due("first too deep", 0, of(x, x.node('y', a, object, 0), deep));
+        CHECK.due("second too deep", 0, of(x, x.node('y', object, a, 0), deep));
+        int three = x.box(x.box(x.box(dog)));
+        CHECK.due("just not too deep", x.union(three, dog), of(x, x.node('y', a, object, 0), three));
+        CHECK.due("nothing beside it", deep, of(x, x.node('y', a, a, 0), deep));
     }
 
     private static void withinSix() {

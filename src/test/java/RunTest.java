@@ -19,6 +19,8 @@ public final class RunTest {
             order(isByCode);
         }
         lookupsAndTaken();
+        fixedCalls();
+        codeOfLaterAges();
         refused();
         types();
         CHECK.end();
@@ -304,6 +306,53 @@ public final class RunTest {
         x.takeAway(fresh);
         CHECK.due("code that was made ahead is taken", 'v', x.run(3, 4, NO, 99, true));
         CHECK.due("lookups", 0, x.lookups());
+        CHECK.due("taken", 2, x.taken());
+    }
+
+    /** A call with 3 is fixed though calls with ints are not; what is called so goes on without fixed methods. */
+    private static void fixedCalls() {
+        Worldage x = new Worldage();
+        int a = x.node('a', 0, 0, 0);
+        int three = x.node('n', 3, 0, 0);
+        int inner = x.node('c', 2, three, -1);
+        x.define(x.prepare(0, 1, -1, x.node('c', 1, three, -1)));
+        x.define(x.prepare(1, x.ofInt(3), -1, x.node('+', a, inner, 0)));
+        x.define(x.prepare(1, x.ofInt(4), -1, a));
+        x.define(x.prepare(2, x.ofInt(3), -1, a));
+        x.define(x.prepare(2, x.ofInt(4), -1, a));
+        CHECK.due("run", 'v', x.run(0, 9, NO, 99, true));
+        CHECK.due("result", 6, x.result());
+        CHECK.due("first fixed, second looked up", 1, x.lookups());
+        CHECK.due("all took code", 3, x.taken());
+        CHECK.due("fixed", 1, x.fixed(0));
+        CHECK.due("code of the first one", 1 - 1, x.methodOf(0));
+        CHECK.due("none of the second one", -1, x.methodOf(1));
+        int dog = x.named(0, true);
+        int object = x.node('o', dog, a, 0);
+        x.define(x.prepare(3, 1, dog, a));
+        x.define(x.prepare(3, dog, 1, three));
+        x.define(x.prepare(4, 1, -1, x.node('+', x.node('c', 3, a, object), x.node('c', 3, object, a), 0)));
+        CHECK.due("two arguments", 'v', x.run(4, 9, NO, 99, true));
+        CHECK.due("each its own", 12, x.result());
+        CHECK.due("no lookups", 0, x.lookups());
+        CHECK.due("three codes", 3, x.taken());
+        CHECK.due("the second one", 5, x.methodOf(x.codes() - 2));
+        CHECK.due("the third one", 6, x.methodOf(x.codes() - 1));
+    }
+
+    private static void codeOfLaterAges() {
+        Worldage x = new Worldage();
+        int a = x.node('a', 0, 0, 0);
+        int five = x.node('n', 5, 0, 0);
+        int fresh = x.prepare(1, 0, -1, five);
+        x.define(x.prepare(1, 0, -1, a));
+        int defined = x.node('d', fresh, 0, 0);
+        int late = x.node('l', 1, a, -1);
+        int early = x.node('c', 1, a, -1);
+        x.define(x.prepare(0, 1, -1, x.node('+', x.node('*', defined, late, 0), early, 0)));
+        CHECK.due("run", 'v', x.run(0, 2, NO, 99, true));
+        CHECK.due("3 times the new one, and the old one", 3 * 5 + 2, x.result());
+        CHECK.due("the code of l is too young for c", 1, x.lookups());
         CHECK.due("taken", 2, x.taken());
     }
 

@@ -62,6 +62,9 @@ public final class TrimTest {
         CHECK.throwing("two that meet", UnsupportedOperationException.class, () -> x.trim(0, dog, -1));
         x.takeAway(0);
         CHECK.due("one for all animals", 2, x.trim(1, animal, -1));
+        x.define(x.prepare(2, 1, 1, one));
+        CHECK.throwing("not all as the second one", UnsupportedOperationException.class, () -> x.trim(2, 1, 0));
+        CHECK.throwing("not all as the first one", UnsupportedOperationException.class, () -> x.trim(2, 0, 1));
     }
 
     private static void lateNodes() {
