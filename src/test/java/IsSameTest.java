@@ -36,6 +36,7 @@ public final class IsSameTest {
         CHECK.due("a node d", true, x.isSame(4, 5, NO, 99));
         CHECK.due("is not done", age, x.age());
         CHECK.due("what it would define is not there", false, x.isThere(late, age));
+        CHECK.due("nor is the age another one", age, x.age());
         CHECK.due("the last run stays", 6, x.result());
         CHECK.due("its type", 1, x.resultType());
         CHECK.due("its steps", 3, x.steps());
@@ -43,6 +44,14 @@ public final class IsSameTest {
         CHECK.due("what it took", 0, x.taken());
         CHECK.due("all steps", 3, x.allSteps());
         CHECK.due("codes", 7, x.codes());
+        x.define(x.prepare(5, 1, 1, x.node('c', 0, a, one)));
+        CHECK.due("a call in a call", true, x.isSame(5, 5, 6, 99));
+        CHECK.due("one code more, as the other is there", 8, x.codes());
+        x.takeAway(1);
+        CHECK.due("no method within", true, x.isSame(5, 5, 6, 99));
+        CHECK.due("two more", 10, x.codes());
+        CHECK.due("done again", age + 3, x.define(1));
+        age = age + 2 + 1;
         CHECK.due("a run does it", 'v', x.run(4, 5, NO, 99, true));
         CHECK.due("the age is greater", age + 1, x.age());
         CHECK.throwing("function 6", IllegalArgumentException.class, () -> x.isSame(6, 1, NO, 9));

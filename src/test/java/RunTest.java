@@ -159,6 +159,17 @@ public final class RunTest {
         CHECK.due("a box is of ints, not of 3", 'n', ends(x, x.node('c', 0, x.node('x', a, 0, 0), -1), 3, NO, by));
         CHECK.due("with two", 'n', x.run(0, 3, 3, 9, by));
         CHECK.due("no such function there", 'n', x.run(1, 3, NO, 9, by));
+        x.define(x.prepare(2, 1, three, results[1]));
+        x.define(x.prepare(2, 1, four, results[2]));
+        CHECK.due("by the second one", 'v', x.run(2, 4, 3, 9, by));
+        CHECK.due("3", 1, x.result());
+        CHECK.due("by the second one", 'v', x.run(2, 3, 4, 9, by));
+        CHECK.due("4", 2, x.result());
+        CHECK.due("5", 'n', x.run(2, 3, 5, 9, by));
+        x.define(x.prepare(2, three, 1, results[3]));
+        CHECK.due("neither is below the other", 'a', x.run(2, 3, 4, 9, by));
+        CHECK.due("one matches", 'v', x.run(2, 3, 5, 9, by));
+        CHECK.due("the first is 3", 3, x.result());
     }
 
     private static void stepsAndCalls(boolean by) {
