@@ -10,19 +10,18 @@ public final class Worldage {
     private static final int MOST_CALLS = 20;
     private static final int MOST_STEPS = 1000;
     private static final int FUNCTIONS = 6;
-    private static final int NONE_GIVEN = -1;
+    private static final long NONE_GIVEN = -1;
     private static final int NO_SECOND_INT = -2147483648;
 
     private final Types types = new Types();
     private final Nodes nodes = new Nodes();
     private final Book book = new Book(types);
     private final Inferring inferring = new Inferring(types, nodes, book);
-    private final Codes codes = new Codes(nodes, book);
+    private final Codes codes = new Codes(types, nodes, book);
     private final Machine machine = new Machine(types, nodes, book, inferring, codes);
-    private final Trimmer trimmer = new Trimmer(nodes, book, inferring);
+    private final Trimmer trimmer = new Trimmer(types, nodes, book, inferring, codes);
 
     private int lastOutcome = Machine.GOING;
-    private int lastType;
     private int lastInt;
     private int lastLookups;
     private int lastTaken;
@@ -45,7 +44,7 @@ public final class Worldage {
     }
 
     public int ofInt(int n) throws IllegalStateException {
-        return numberOrRefuse(types.put(Types.ONE, n, 0));
+        return numberOrRefuse(Types.one(n));
     }
 
     public int box(int type) throws NoSuchElementException, IllegalArgumentException, IllegalStateException {
@@ -153,8 +152,8 @@ public final class Worldage {
             throw new IllegalArgumentException("There is no such age.");
         }
         needArguments(first, second);
-        int firstId = types.ids[first];
-        int secondId = idOrNone(second);
+        long firstId = types.ids[first];
+        long secondId = idOrNone(second);
         if (!types.isOfValues(firstId) || (secondId >= 0 && !types.isOfValues(secondId))) {
             throw new UnsupportedOperationException("A type is none of values.");
         }
@@ -170,6 +169,7 @@ public final class Worldage {
             throws IllegalArgumentException, NoSuchElementException, UnsupportedOperationException {
         needFunction(function);
         needArguments(first, second);
+        sweepTypes();
         int number = types.numberFor(inferring.settle(function, types.ids[first], idOrNone(second)));
         if (number < 0) {
             throw new UnsupportedOperationException("There would be more than 60 types.");
@@ -181,9 +181,10 @@ public final class Worldage {
             throws IllegalArgumentException {
         needFunction(function);
         needSteps(steps);
+        sweepTypes();
         machine.go(function, first, second, steps, isByCode, false);
         lastOutcome = machine.outcome;
-        lastType = machine.endType;
+        types.ofLastRun = machine.endType;
         lastInt = machine.endInt;
         lastLookups = machine.lookupCount;
         lastTaken = machine.takenCount;
@@ -203,7 +204,7 @@ public final class Worldage {
         if (lastOutcome != 'v') {
             throw new NoSuchElementException("The last run had no value, or there was none.");
         }
-        return numberOrRefuse(lastType);
+        return numberOrRefuse(types.ofLastRun);
     }
 
     public int lookups() {
@@ -249,6 +250,7 @@ public final class Worldage {
             throws IllegalArgumentException, NoSuchElementException, UnsupportedOperationException {
         needFunction(function);
         needArguments(first, second);
+        sweepTypes();
         int count = trimmer.countFrom(function, types.ids[first], idOrNone(second));
         if (count < 0) {
             throw new UnsupportedOperationException("A call has no fixed method, or a body has a node l or d.");
@@ -259,9 +261,10 @@ public final class Worldage {
     public boolean isSame(int function, int first, int second, int steps) throws IllegalArgumentException {
         needFunction(function);
         needSteps(steps);
+        sweepTypes();
         machine.go(function, first, second, steps, true, true);
         int outcome = machine.outcome;
-        int endType = machine.endType;
+        long endType = machine.endType;
         int endInt = machine.endInt;
         machine.go(function, first, second, steps, false, true);
         if (isCutShort(outcome) || isCutShort(machine.outcome)) {
@@ -289,15 +292,15 @@ public final class Worldage {
         return outcome == 's' || outcome == Machine.AT_DEFINE;
     }
 
-    private int numberOrRefuse(int id) {
-        int number = types.numberFor(id);
+    private int numberOrRefuse(long type) {
+        int number = types.numberFor(type);
         if (number < 0) {
             throw new IllegalStateException("There would be more than 60 types.");
         }
         return number;
     }
 
-    private int idOrNone(int type) {
+    private long idOrNone(int type) {
         return type < 0 ? NONE_GIVEN : types.ids[type];
     }
 
@@ -314,8 +317,8 @@ public final class Worldage {
         }
     }
 
-    private void needRoomAbove(int id) {
-        if (types.depths[id] >= Types.DEEPEST) {
+    private void needRoomAbove(long type) {
+        if (types.depthOf(type) >= Types.DEEPEST) {
             throw new IllegalArgumentException("It would be too deep.");
         }
     }
@@ -338,6 +341,15 @@ public final class Worldage {
         }
     }
 
+    /** Lets go of the types that inferring has made and nothing needs any more. */
+    private void sweepTypes() {
+        if (types.isCrowded()) {
+            types.beginSweep();
+            codes.markTypes();
+            types.endSweep();
+        }
+    }
+
     private void needCode(int code) {
         if (code < 0 || code >= codes.size) {
             throw new IndexOutOfBoundsException("There is no such code.");
@@ -345,13 +357,13 @@ public final class Worldage {
     }
 
     /**
-     * The types, each with an id of its own. Inferring and running make types that no call has returned yet: only
-     * those that were returned have numbers.
+     * The types. One of one int is told by a bit of its own and the int; each other one has a place in a table.
+     * Inferring and running make types that no call has returned yet: only those that were returned have numbers.
      */
     private static final class Types {
-        static final int ANY = 0;
-        static final int INT = 1;
-        static final int NONE = 2;
+        static final long ANY = 0;
+        static final long INT = 1;
+        static final long NONE = 2;
         static final int DEEPEST = 4;
 
         /** The kinds of types; 0 is that of ANY, INT and NONE. */
@@ -361,263 +373,363 @@ public final class Worldage {
         static final int BELOW = 4;
         static final int UNION = 5;
 
-        private static final int MOST_IDS = 131072;
-        private static final int MOST_INFERRED_IDS = MOST_IDS - 2048;
-        private static final int BUCKETS = 1024;
+        private static final long ONES = 1L << 32;
+        /** What is added to the kind of a type while it is marked. */
+        private static final int MARK = 16;
+        private static final int BUILT_IN = 3;
+        private static final int MOST_PLACES = 1 << 20;
+        private static final int MOST_INFERRED = MOST_PLACES - 2048;
+        private static final int MANY_MORE = 4096;
+        private static final int TYPES_A_BUCKET = 4;
 
-        private final int[] heads = new int[BUCKETS];
+        private int[] heads = new int[256];
         private int[] nexts = new int[128];
+        private int[] hashes = new int[128];
         private int[] kinds = new int[128];
-        private int[] firsts = new int[128];
-        private int[] seconds = new int[128];
-        private int[] numbers = new int[128];
-        int[] depths = new int[128];
-        private int size;
-        final int[] ids = new int[MOST_TYPES];
-        int numbered;
+        private int[] depths = new int[128];
+        private long[] firsts = new long[128];
+        private long[] seconds = new long[128];
+        private int size = BUILT_IN;
+        private int firstFree = -1;
+        private int used = BUILT_IN;
+        private int usedBefore = BUILT_IN;
+        final long[] ids = new long[MOST_TYPES];
+        int numbered = BUILT_IN;
+        long ofLastRun = ANY;
         /** Inferring leaves room for the types that calls and runs make. */
         boolean isInferring;
 
         Types() {
             Arrays.fill(heads, -1);
-            Arrays.fill(numbers, -1);
-            for (int id = ANY; id <= NONE; id++) {
-                ids[id] = id;
-                numbers[id] = id;
-            }
-            size = NONE + 1;
-            numbered = NONE + 1;
+            ids[1] = INT;
+            ids[2] = NONE;
+        }
+
+        static long one(int n) {
+            return ONES | n & (ONES - 1);
         }
 
         /** Returns the type that is made so; ANY, which is above all, if there is no more room. */
-        int put(int kind, int first, int second) {
-            int mixed = kind * 31 + first * 40503 + second * 1000003;
-            int bucket = (mixed ^ mixed >>> 10 ^ mixed >>> 20) & (BUCKETS - 1);
+        long put(int kind, long first, long second) {
+            long mixed = (first * 31 + kind) * 0x9E3779B97F4A7C15L ^ second * 0xC2B2AE3D27D4EB4FL;
+            int hash = (int) (mixed >>> 40);
+            int bucket = hash & (heads.length - 1);
             for (int id = heads[bucket], left = size; id >= 0 && left > 0; id = nexts[id], left--) {
                 if (kinds[id] == kind && firsts[id] == first && seconds[id] == second) {
                     return id;
                 }
             }
-            if (size >= (isInferring ? MOST_INFERRED_IDS : MOST_IDS)) {
+            if (used >= (isInferring ? MOST_INFERRED : MOST_PLACES)) {
                 return ANY;
             }
-            if (size >= kinds.length) {
+            int id = firstFree;
+            if (id >= 0) {
+                firstFree = nexts[id];
+            } else {
+                id = size;
+                size++;
+            }
+            if (size > kinds.length) {
                 int room = 2 * size;
                 nexts = Arrays.copyOf(nexts, room);
+                hashes = Arrays.copyOf(hashes, room);
                 kinds = Arrays.copyOf(kinds, room);
+                depths = Arrays.copyOf(depths, room);
                 firsts = Arrays.copyOf(firsts, room);
                 seconds = Arrays.copyOf(seconds, room);
-                numbers = Arrays.copyOf(numbers, room);
-                depths = Arrays.copyOf(depths, room);
             }
-            int id = size;
-            size++;
+            used++;
             kinds[id] = kind;
             firsts[id] = first;
             seconds[id] = second;
-            numbers[id] = -1;
-            depths[id] = kind == NAMED ? 0 : 1;
-            if (kind >= JUST) {
-                depths[id] = 1 + depths[first];
+            depths[id] = kind == NAMED ? 0 : first >= ONES ? 2 : 1 + depths[(int) first];
+            int depthOfSecond = kind != UNION ? 0 : second >= ONES ? 1 : depths[(int) second];
+            if (depthOfSecond >= depths[id] && kind == UNION) {
+                depths[id] = 1 + depthOfSecond;
             }
-            if (kind == UNION && depths[second] >= depths[first]) {
-                depths[id] = 1 + depths[second];
-            }
+            hashes[id] = hash;
             nexts[id] = heads[bucket];
             heads[bucket] = id;
             return id;
         }
 
+        /** Keeps the search in put() short, if it is called now and then while many types are made. */
+        void spread() {
+            if (used <= TYPES_A_BUCKET * heads.length) {
+                return;
+            }
+            int[] fewer = heads;
+            heads = new int[TYPES_A_BUCKET * fewer.length];
+            Arrays.fill(heads, -1);
+            for (int index = 0; index < fewer.length; index++) {
+                int id = fewer[index];
+                for (int left = size; id >= 0 && left > 0; left--) {
+                    int next = nexts[id];
+                    int bucket = hashes[id] & (heads.length - 1);
+                    nexts[id] = heads[bucket];
+                    heads[bucket] = id;
+                    id = next;
+                }
+            }
+        }
+
+        private int kindOf(long type) {
+            return type >= ONES ? ONE : kinds[(int) type];
+        }
+
+        int depthOf(long type) {
+            return type >= ONES ? 1 : depths[(int) type];
+        }
+
+        /** Tells whether many types have been made since the last time that types were let go. */
+        boolean isCrowded() {
+            return used > 2 * usedBefore + MANY_MORE;
+        }
+
+        /** After this each type that is needed is to be marked; those with numbers are already. */
+        void beginSweep() {
+            for (int number = 0; number < numbered; number++) {
+                mark(ids[number]);
+            }
+            mark(ofLastRun);
+        }
+
+        void mark(long type) {
+            if (type < BUILT_IN || type >= ONES || kinds[(int) type] >= MARK) {
+                return;
+            }
+            int id = (int) type;
+            int kind = kinds[id];
+            kinds[id] = kind + MARK;
+            if (kind >= JUST) {
+                mark(firsts[id]);
+            }
+            if (kind == UNION) {
+                mark(seconds[id]);
+            }
+        }
+
+        /** Lets go of the types that are not marked: their places can be taken by others. */
+        void endSweep() {
+            used = BUILT_IN;
+            for (int bucket = 0; bucket < heads.length; bucket++) {
+                int id = heads[bucket];
+                heads[bucket] = -1;
+                for (int left = size; id >= 0 && left > 0; left--) {
+                    int next = nexts[id];
+                    if (kinds[id] >= MARK) {
+                        kinds[id] -= MARK;
+                        nexts[id] = heads[bucket];
+                        heads[bucket] = id;
+                        used++;
+                    } else {
+                        nexts[id] = firstFree;
+                        firstFree = id;
+                    }
+                    id = next;
+                }
+            }
+            usedBefore = used;
+        }
+
         /** Named types with the same parent are not the same, so that each is kept by its own number. */
-        int addNamed(int parent, boolean isConcrete) {
+        int addNamed(long parent, boolean isConcrete) {
             int number = numbered;
-            int id = put(NAMED, parent, isConcrete ? -1 - number : number);
-            return numberFor(id);
+            return numberFor(put(NAMED, parent, isConcrete ? -1 - number : number));
         }
 
-        boolean canBeParent(int id) {
-            return id == ANY || (kinds[id] == NAMED && seconds[id] >= 0);
+        boolean canBeParent(long type) {
+            return type == ANY || (kindOf(type) == NAMED && seconds[(int) type] >= 0);
         }
 
-        private boolean isConcrete(int id) {
-            return kinds[id] == NAMED && seconds[id] < 0;
+        private boolean isConcrete(long type) {
+            return kindOf(type) == NAMED && seconds[(int) type] < 0;
         }
 
-        /** Returns the id of the type with this number, if it is a concrete named one, otherwise -1. */
+        /** Returns the place of the type with this number, if it is a concrete named one, otherwise -1. */
         int concreteNamed(int number) {
             if (number < 0 || number >= numbered || !isConcrete(ids[number])) {
                 return -1;
             }
-            return ids[number];
+            return (int) ids[number];
         }
 
-        boolean isOfValues(int id) {
-            int inner = id;
-            for (int depth = 0; depth < DEEPEST && kinds[inner] == JUST; depth++) {
-                inner = firsts[inner];
+        boolean isOfValues(long type) {
+            long inner = type;
+            for (int depth = 0; depth < DEEPEST && kindOf(inner) == JUST; depth++) {
+                inner = firsts[(int) inner];
             }
             return inner == INT || isConcrete(inner);
         }
 
-        boolean isObject(int id) {
-            return kinds[id] == NAMED;
+        boolean isObject(long type) {
+            return kindOf(type) == NAMED;
         }
 
-        boolean isOneInt(int id) {
-            return kinds[id] == ONE;
+        boolean isOneInt(long type) {
+            return type >= ONES;
         }
 
-        int intOf(int id) {
-            return firsts[id];
+        int intOf(long oneInt) {
+            return (int) oneInt;
         }
 
-        boolean isBox(int id) {
-            return kinds[id] == JUST || kinds[id] == BELOW;
+        boolean isBox(long type) {
+            int kind = kindOf(type);
+            return kind == JUST || kind == BELOW;
         }
 
-        int innerOf(int id) {
-            return firsts[id];
+        long innerOf(long box) {
+            return isBox(box) ? firsts[(int) box] : ANY;
         }
 
-        /** Returns the number of a type; -1, with no number given, if there would be too many. */
-        int numberFor(int id) {
-            int before = numbered;
-            if (giveNumber(id)) {
-                return numbers[id];
+        private int numberOf(long type) {
+            for (int number = 0; number < numbered; number++) {
+                if (ids[number] == type) {
+                    return number;
+                }
             }
-            for (int number = numbered - 1; number >= before; number--) {
-                numbers[ids[number]] = -1;
-            }
-            numbered = before;
             return -1;
         }
 
-        private boolean giveNumber(int id) {
-            if (numbers[id] >= 0) {
+        /** Returns the number of a type; -1, with no number given, if there would be too many. */
+        int numberFor(long type) {
+            int before = numbered;
+            if (!giveNumber(type)) {
+                numbered = before;
+            }
+            return numberOf(type);
+        }
+
+        private boolean giveNumber(long type) {
+            if (numberOf(type) >= 0) {
                 return true;
             }
-            if (kinds[id] >= JUST && !giveNumber(firsts[id])) {
+            int kind = kindOf(type);
+            if (kind >= JUST && !giveNumber(firsts[(int) type])) {
                 return false;
             }
-            if (kinds[id] == UNION && !giveNumber(seconds[id])) {
+            if (kind == UNION && !giveNumber(seconds[(int) type])) {
                 return false;
             }
             if (numbered >= MOST_TYPES) {
                 return false;
             }
-            numbers[id] = numbered;
-            ids[numbered] = id;
+            ids[numbered] = type;
             numbered++;
             return true;
         }
 
-        private boolean below(int s, int t) {
+        private boolean below(long s, long t) {
             if (s == t || s == NONE || t == ANY) {
                 return true;
             }
-            if (kinds[s] == UNION) {
-                return below(firsts[s], t) && below(seconds[s], t);
+            int kind = s >= ONES ? ONE : kinds[(int) s];
+            int kindAbove = t >= ONES ? ONE : kinds[(int) t];
+            if (kind == UNION) {
+                return below(firsts[(int) s], t) && below(seconds[(int) s], t);
             }
-            if (kinds[t] == UNION) {
-                return below(s, firsts[t]) || below(s, seconds[t]);
+            if (kindAbove == UNION) {
+                return below(s, firsts[(int) t]) || below(s, seconds[(int) t]);
             }
-            if (kinds[s] == ONE) {
+            if (kind == ONE) {
                 return t == INT;
             }
-            if (kinds[s] == NAMED) {
-                int above = firsts[s];
+            if (kind == NAMED) {
+                long above = firsts[(int) s];
                 for (int left = MOST_TYPES; left > 0 && above != ANY && above != t; left--) {
-                    above = firsts[above];
+                    above = firsts[(int) above];
                 }
                 return above == t;
             }
-            if (kinds[s] == JUST && kinds[t] == JUST) {
-                return below(firsts[s], firsts[t]) && below(firsts[t], firsts[s]);
+            if (kind == JUST && kindAbove == JUST) {
+                return below(firsts[(int) s], firsts[(int) t]) && below(firsts[(int) t], firsts[(int) s]);
             }
-            return (kinds[s] == JUST || kinds[s] == BELOW) && kinds[t] == BELOW && below(firsts[s], firsts[t]);
+            return (kind == JUST || kind == BELOW) && kindAbove == BELOW && below(firsts[(int) s], firsts[(int) t]);
         }
 
-        private boolean meeting(int s, int t) {
+        private boolean meeting(long s, long t) {
             if (s == NONE || t == NONE) {
                 return false;
             }
             if (below(s, t) || below(t, s)) {
                 return true;
             }
-            if (kinds[s] == UNION) {
-                return meeting(firsts[s], t) || meeting(seconds[s], t);
+            int kind = s >= ONES ? ONE : kinds[(int) s];
+            int other = t >= ONES ? ONE : kinds[(int) t];
+            if (kind == UNION) {
+                return meeting(firsts[(int) s], t) || meeting(seconds[(int) s], t);
             }
-            if (kinds[t] == UNION) {
-                return meeting(s, firsts[t]) || meeting(s, seconds[t]);
+            if (other == UNION) {
+                return meeting(s, firsts[(int) t]) || meeting(s, seconds[(int) t]);
             }
-            if (kinds[s] == BELOW && kinds[t] == BELOW) {
+            if (kind == BELOW && other == BELOW) {
                 return true;
             }
-            if (kinds[s] == JUST && kinds[t] == BELOW) {
-                return below(firsts[s], firsts[t]);
+            if (kind == JUST && other == BELOW) {
+                return below(firsts[(int) s], firsts[(int) t]);
             }
-            return kinds[s] == BELOW && kinds[t] == JUST && below(firsts[t], firsts[s]);
+            return kind == BELOW && other == JUST && below(firsts[(int) t], firsts[(int) s]);
         }
 
-        int join(int s, int t) {
+        long join(long s, long t) {
             if (below(s, t)) {
                 return t;
             }
             if (below(t, s)) {
                 return s;
             }
-            if (depths[s] >= DEEPEST || depths[t] >= DEEPEST) {
+            if (depthOf(s) >= DEEPEST || depthOf(t) >= DEEPEST) {
                 return ANY;
             }
             return put(UNION, s, t);
         }
 
-        private boolean isValueOf(int type, int n, int t) {
-            if (kinds[t] == ONE && type == INT && n == firsts[t]) {
-                return true;
+        private boolean isValueOf(long type, int n, long t) {
+            if (t >= ONES) {
+                return type == INT && n == intOf(t);
             }
-            if (kinds[t] == UNION && (isValueOf(type, n, firsts[t]) || isValueOf(type, n, seconds[t]))) {
+            int id = (int) t;
+            if (kinds[id] == UNION && (isValueOf(type, n, firsts[id]) || isValueOf(type, n, seconds[id]))) {
                 return true;
             }
             return below(type, t);
         }
 
-        private int widened(int id) {
-            if (kinds[id] == ONE) {
+        private long widened(long type) {
+            int kind = kindOf(type);
+            if (kind == ONE) {
                 return INT;
             }
-            if (kinds[id] == UNION) {
-                return join(widened(firsts[id]), widened(seconds[id]));
+            if (kind == UNION) {
+                return join(widened(firsts[(int) type]), widened(seconds[(int) type]));
             }
-            return id;
+            return type;
         }
 
         /** Returns the type of boxes with something of a type, given the same without the types of one int. */
-        int boxed(int id, int wide) {
-            if (id == NONE) {
+        long boxed(long type, long wide) {
+            if (type == NONE) {
                 return NONE;
             }
-            if (below(id, INT)) {
+            if (below(type, INT)) {
                 return put(JUST, INT, 0);
             }
-            boolean isExact = isConcrete(id) || kinds[id] == JUST;
-            int inner = isExact ? id : wide;
-            if (depths[inner] >= DEEPEST) {
+            boolean isExact = isConcrete(type) || kindOf(type) == JUST;
+            long inner = isExact ? type : wide;
+            if (depthOf(inner) >= DEEPEST) {
                 return ANY;
             }
             return put(isExact ? JUST : BELOW, inner, 0);
         }
 
-        int unboxed(int id) {
-            if (id == NONE) {
-                return NONE;
-            }
-            return isBox(id) ? firsts[id] : ANY;
+        long unboxed(long type) {
+            return type == NONE ? NONE : isBox(type) ? firsts[(int) type] : ANY;
         }
 
-        int worked(int kind, int s, int t) {
-            if (kinds[s] == ONE && kinds[t] == ONE) {
-                return put(ONE, Worldage.worked(kind, firsts[s], firsts[t]), 0);
+        long worked(int kind, long s, long t) {
+            if (s >= ONES && t >= ONES) {
+                return one(Worldage.worked(kind, intOf(s), intOf(t)));
             }
             return meeting(s, INT) && meeting(t, INT) ? INT : NONE;
         }
@@ -756,7 +868,9 @@ public final class Worldage {
         /** Marks all nodes of a body; operands are always told ahead of the node that has them. */
         void reach(int body) {
             Arrays.fill(reached, 0);
-            reached[body] = 1;
+            if (body >= 0) {
+                reached[body] = 1;
+            }
             for (int node = body; node >= 0; node--) {
                 if (reached[node] != 0) {
                     if (hasNodeA(kinds[node])) {
@@ -787,8 +901,8 @@ public final class Worldage {
 
         private final Types types;
         private final int[] functions = new int[MOST_METHODS];
-        private final int[] firsts = new int[MOST_METHODS];
-        private final int[] seconds = new int[MOST_METHODS];
+        private final long[] firsts = new long[MOST_METHODS];
+        private final long[] seconds = new long[MOST_METHODS];
         final int[] bodies = new int[MOST_METHODS];
         private final long[] groups = new long[2 * FUNCTIONS];
         private long[] present = new long[64];
@@ -799,7 +913,7 @@ public final class Worldage {
             this.types = types;
         }
 
-        int add(int function, int first, int second, int body) {
+        int add(int function, long first, long second, int body) {
             int method = size;
             size++;
             functions[method] = function;
@@ -810,7 +924,7 @@ public final class Worldage {
             return method;
         }
 
-        private static int groupOf(int function, int second) {
+        private static int groupOf(int function, long second) {
             return second < 0 ? function : function + FUNCTIONS;
         }
 
@@ -851,11 +965,11 @@ public final class Worldage {
                     && seconds[method] == seconds[other];
         }
 
-        private long groupAt(int function, int second, int age) {
+        private long groupAt(int function, long second, int age) {
             return present[age] & groups[groupOf(function, second)];
         }
 
-        long matchingTypes(int function, int first, int second, int age) {
+        long matchingTypes(int function, long first, long second, int age) {
             long group = groupAt(function, second, age);
             long matching = 0;
             for (int method = 0; method < size; method++) {
@@ -867,7 +981,7 @@ public final class Worldage {
             return matching;
         }
 
-        long matchingValues(int function, int age, int first, int firstInt, int second, int secondInt) {
+        long matchingValues(int function, int age, long first, int firstInt, long second, int secondInt) {
             long group = groupAt(function, second, age);
             long matching = 0;
             for (int method = 0; method < size; method++) {
@@ -909,11 +1023,11 @@ public final class Worldage {
                     && (seconds[method] < 0 || types.below(seconds[method], seconds[other]));
         }
 
-        boolean isMetBy(int method, int first, int second) {
+        boolean isMetBy(int method, long first, long second) {
             return types.meeting(first, firsts[method]) && (second < 0 || types.meeting(second, seconds[method]));
         }
 
-        boolean isForCall(int method, int function, int second) {
+        boolean isForCall(int method, int function, long second) {
             return functions[method] == function && seconds[method] < 0 == second < 0;
         }
 
@@ -935,7 +1049,7 @@ public final class Worldage {
         }
 
         /** Returns those that a call with values of these types can choose at the latest age. */
-        long possible(int function, int first, int second) {
+        long possible(int function, long first, long second) {
             long group = groupAt(function, second, now);
             long possible = 0;
             for (int method = 0; method < size; method++) {
@@ -948,7 +1062,7 @@ public final class Worldage {
         }
 
         /** Returns the method that all values of these types choose at the latest age, or -1. */
-        int surely(int function, int first, int second) {
+        int surely(int function, long first, long second) {
             long above = matchingTypes(function, first, second, now);
             if (above == 0) {
                 return -1;
@@ -962,89 +1076,160 @@ public final class Worldage {
             return -1;
         }
 
-        int narrowedFirst(int method, int first) {
+        long firstOf(int method) {
+            return firsts[method];
+        }
+
+        /** Returns the type of the second parameter, or -1. */
+        long secondOf(int method) {
+            return seconds[method];
+        }
+
+        long narrowedFirst(int method, long first) {
             return narrowed(first, firsts[method]);
         }
 
-        int narrowedSecond(int method, int second) {
+        long narrowedSecond(int method, long second) {
             return second < 0 ? second : narrowed(second, seconds[method]);
         }
 
-        private int narrowed(int argument, int parameter) {
+        private long narrowed(long argument, long parameter) {
             return types.below(parameter, argument) && !types.below(argument, parameter) ? parameter : argument;
         }
     }
 
-    /** Calls, each with a function, the types of its arguments, and what it has as its result. */
+    /**
+     * Calls, each with a function and the types of its arguments, and with places for numbers of their own. They lie
+     * in pieces that are made when they are needed and kept, so that they are not copied as they become more.
+     */
     private static final class CallTable {
-        static final int OPEN = -1;
-        private static final int BUCKETS = 256;
+        private static final int FUNCTION_SHIFT = 40;
+        private static final int PIECE_SHIFT = 8;
+        private static final int PIECE = 1 << PIECE_SHIFT;
+        private static final int FEWEST_BUCKETS = 64;
+        private static final int CALLS_A_BUCKET = 4;
 
-        private final int[] heads = new int[BUCKETS];
-        private int[] nexts = new int[32];
-        int[] functions = new int[32];
-        int[] firsts = new int[32];
-        int[] seconds = new int[32];
-        int[] results = new int[32];
+        /** The places of a call: those behind NEXT are free for who has the table; NEXT is for find() alone. */
+        private static final int KEY = 0;
+        private static final int SECOND = 1;
+        private static final int NEXT = 2;
+        static final int PLACES_UNFOUND = 2;
+        static final int PLACES = 3;
+
+        private final int mostCalls;
+        private final int places;
+        private long[][] pieces = new long[16][];
+        private int[] heads = new int[FEWEST_BUCKETS];
+        private int buckets = FEWEST_BUCKETS;
         int size;
 
-        CallTable() {
+        CallTable(int mostCalls, int places) {
+            this.mostCalls = mostCalls;
+            this.places = places;
             Arrays.fill(heads, -1);
         }
 
         void clear() {
-            Arrays.fill(heads, -1);
+            buckets = FEWEST_BUCKETS;
+            Arrays.fill(heads, 0, buckets, -1);
             size = 0;
         }
 
-        private static int bucketOf(int function, int first, int second) {
-            int mixed = function + first * 31 + second * 40503;
-            return (mixed ^ mixed >>> 8 ^ mixed >>> 16) & (BUCKETS - 1);
+        boolean isFull() {
+            return size >= mostCalls;
         }
 
-        int find(int function, int first, int second) {
-            int index = heads[bucketOf(function, first, second)];
-            for (int left = size; index >= 0 && left > 0; left--) {
-                if (functions[index] == function && firsts[index] == first && seconds[index] == second) {
-                    return index;
+        long at(int call, int place) {
+            return pieces[call >> PIECE_SHIFT][(call & (PIECE - 1)) * places + place];
+        }
+
+        void set(int call, int place, long n) {
+            pieces[call >> PIECE_SHIFT][(call & (PIECE - 1)) * places + place] = n;
+        }
+
+        int functionOf(int call) {
+            return (int) (at(call, KEY) >>> FUNCTION_SHIFT);
+        }
+
+        long firstOf(int call) {
+            return at(call, KEY) & ((1L << FUNCTION_SHIFT) - 1);
+        }
+
+        long secondOf(int call) {
+            return at(call, SECOND);
+        }
+
+        void markTypes(Types types) {
+            for (int call = 0; call < size; call++) {
+                types.mark(firstOf(call));
+                types.mark(secondOf(call));
+            }
+        }
+
+        private static long keyOf(int function, long first) {
+            return (long) function << FUNCTION_SHIFT | first;
+        }
+
+        private int bucketOf(long key, long second) {
+            long mixed = key * 0x9E3779B97F4A7C15L ^ second * 0xC2B2AE3D27D4EB4FL;
+            return (int) (mixed >>> 40) & (buckets - 1);
+        }
+
+        /** Returns the place of a call that was added, or -1. */
+        int find(int function, long first, long second) {
+            long key = keyOf(function, first);
+            int call = heads[bucketOf(key, second)];
+            for (int left = size; call >= 0 && left > 0; left--) {
+                if (at(call, KEY) == key && at(call, SECOND) == second) {
+                    return call;
                 }
-                index = nexts[index];
+                call = (int) at(call, NEXT);
             }
             return -1;
         }
 
-        int add(int function, int first, int second) {
-            if (size >= functions.length) {
-                int room = 2 * size;
-                nexts = Arrays.copyOf(nexts, room);
-                functions = Arrays.copyOf(functions, room);
-                firsts = Arrays.copyOf(firsts, room);
-                seconds = Arrays.copyOf(seconds, room);
-                results = Arrays.copyOf(results, room);
+        /** Appends a call that is not to be found later. */
+        int append(int function, long first, long second) {
+            int call = size;
+            int piece = call >> PIECE_SHIFT;
+            if (piece >= pieces.length) {
+                long[][] more = new long[2 * pieces.length][];
+                for (int index = 0; index < pieces.length; index++) {
+                    more[index] = pieces[index];
+                }
+                pieces = more;
             }
-            int index = size;
+            if (pieces[piece] == null) {
+                pieces[piece] = new long[PIECE * places];
+            }
             size++;
-            int bucket = bucketOf(function, first, second);
-            functions[index] = function;
-            firsts[index] = first;
-            seconds[index] = second;
-            results[index] = OPEN;
-            nexts[index] = heads[bucket];
-            heads[bucket] = index;
-            return index;
+            set(call, KEY, keyOf(function, first));
+            set(call, SECOND, second);
+            return call;
         }
 
-        boolean hasSameCalls(CallTable other) {
-            if (size != other.size) {
-                return false;
+        int add(int function, long first, long second) {
+            int call = append(function, first, second);
+            int bucket = bucketOf(at(call, KEY), second);
+            set(call, NEXT, heads[bucket]);
+            heads[bucket] = call;
+            if (size > CALLS_A_BUCKET * buckets) {
+                spread();
             }
-            for (int index = 0; index < size; index++) {
-                int there = other.find(functions[index], firsts[index], seconds[index]);
-                if (there < 0 || other.results[there] != results[index]) {
-                    return false;
-                }
+            return call;
+        }
+
+        private void spread() {
+            buckets *= CALLS_A_BUCKET;
+            if (heads.length < buckets) {
+                heads = new int[buckets];
             }
-            return true;
+            Arrays.fill(heads, 0, buckets, -1);
+            for (int call = 0; call < size; call++) {
+                int bucket = bucketOf(at(call, KEY), at(call, SECOND));
+                set(call, NEXT, heads[bucket]);
+                heads[bucket] = call;
+            }
         }
     }
 
@@ -1052,7 +1237,15 @@ public final class Worldage {
     private static final class Inferring {
         private static final int MOST_ROUNDS = 4;
         private static final int MOST_WITHIN = 6;
-        private static final int MOST_FOUND = 20000;
+        private static final int MOST_CALLS_FOUND = 1000000;
+
+        /** The places of a call: the round that found it last, what that and the round before found for it. */
+        private static final int ROUND = CallTable.PLACES;
+        private static final int RESULT = ROUND + 1;
+        private static final int BEFORE = ROUND + 2;
+        private static final int PLACES = ROUND + 3;
+        private static final long OPEN = -1;
+        private static final long MISSING = -2;
 
         private static final int NOT_MET = 0;
         private static final int MET_ALIKE = 1;
@@ -1061,16 +1254,17 @@ public final class Worldage {
         private final Types types;
         private final Nodes nodes;
         private final Book book;
-        private CallTable found = new CallTable();
-        private CallTable foundBefore = new CallTable();
+        private final CallTable found = new CallTable(MOST_CALLS_FOUND, PLACES);
         private int round;
+        private int countOfRound;
+        private boolean isAsBefore;
         private boolean isFull;
         private boolean isEnded;
         private boolean isEachCallAny;
 
         private final int[] metStates = new int[MOST_NODES];
-        private final int[] metFirsts = new int[MOST_NODES];
-        private final int[] metSeconds = new int[MOST_NODES];
+        private final long[] metFirsts = new long[MOST_NODES];
+        private final long[] metSeconds = new long[MOST_NODES];
 
         Inferring(Types types, Nodes nodes, Book book) {
             this.types = types;
@@ -1079,21 +1273,21 @@ public final class Worldage {
         }
 
         /** Returns what the call can have; what was met and found then can be asked for until the next time. */
-        int settle(int function, int first, int second) {
-            int type = Types.ANY;
+        long settle(int function, long first, long second) {
+            long type = Types.ANY;
             types.isInferring = true;
             isFull = false;
             isEnded = false;
             found.clear();
+            countOfRound = 0;
             for (int rounds = 1; rounds <= MOST_ROUNDS && !isEnded && !isFull; rounds++) {
                 round = rounds;
-                CallTable before = found;
-                found = foundBefore;
-                foundBefore = before;
-                found.clear();
+                int countBefore = countOfRound;
+                countOfRound = 0;
+                isAsBefore = true;
                 Arrays.fill(metStates, NOT_MET);
                 type = callType(function, first, second, 0);
-                isEnded = round > 1 && !isFull && found.hasSameCalls(foundBefore);
+                isEnded = !isFull && isAsBefore && countOfRound == countBefore;
             }
             if (!isEnded) {
                 type = Types.ANY;
@@ -1110,8 +1304,13 @@ public final class Worldage {
             return isEnded;
         }
 
-        CallTable lastRound() {
-            return found;
+        /** Appends the calls that the last round found. */
+        void appendFound(CallTable others) {
+            for (int call = 0; call < found.size; call++) {
+                if (found.at(call, ROUND) == round && !others.isFull()) {
+                    others.append(found.functionOf(call), found.firstOf(call), found.secondOf(call));
+                }
+            }
         }
 
         boolean isMet(int node) {
@@ -1126,42 +1325,52 @@ public final class Worldage {
             return metStates[node] == MET_ALIKE;
         }
 
-        int metFirst(int node) {
+        long metFirst(int node) {
             return metFirsts[node];
         }
 
-        int metSecond(int node) {
+        long metSecond(int node) {
             return metSeconds[node];
         }
 
-        private int callType(int function, int first, int second, int within) {
-            int index = found.find(function, first, second);
-            if (index >= 0 && found.results[index] != CallTable.OPEN) {
-                return found.results[index];
-            }
-            if (index >= 0) {
-                int before = foundBefore.find(function, first, second);
-                return before < 0 ? Types.NONE : foundBefore.results[before];
+        private long callType(int function, long first, long second, int within) {
+            int call = found.find(function, first, second);
+            if (call >= 0 && found.at(call, ROUND) == round) {
+                long result = found.at(call, RESULT) != OPEN ? found.at(call, RESULT) : found.at(call, BEFORE);
+                return result == MISSING ? Types.NONE : result;
             }
             if (within >= MOST_WITHIN) {
                 return Types.ANY;
             }
-            if (found.size >= MOST_FOUND) {
+            if (isFull || (call < 0 && found.isFull())) {
                 isFull = true;
                 return Types.ANY;
             }
-            index = found.add(function, first, second);
-            int type = bodiesType(function, first, second, within);
+            long before = call >= 0 && found.at(call, ROUND) == round - 1 ? found.at(call, RESULT) : MISSING;
+            if (call < 0) {
+                call = found.add(function, first, second);
+            }
+            open(call, before);
+            types.spread();
+            long type = bodiesType(function, first, second, within);
             if (round > 1 && types.isOneInt(type)) {
                 type = Types.INT;
             }
-            found.results[index] = type;
+            found.set(call, RESULT, type);
+            isAsBefore &= before == type;
             return type;
         }
 
-        private int bodiesType(int function, int first, int second, int within) {
+        private void open(int call, long before) {
+            found.set(call, BEFORE, before);
+            found.set(call, ROUND, round);
+            found.set(call, RESULT, OPEN);
+            countOfRound++;
+        }
+
+        private long bodiesType(int function, long first, long second, int within) {
             long possible = book.possible(function, first, second);
-            int type = Types.NONE;
+            long type = Types.NONE;
             for (int method = 0; method < book.size; method++) {
                 if ((possible >>> method & 1L) != 0) {
                     type = types.join(type, nodeType(book.bodies[method], book.narrowedFirst(method, first),
@@ -1171,13 +1380,13 @@ public final class Worldage {
             return type;
         }
 
-        private int nodeType(int node, int first, int second, int within) {
+        private long nodeType(int node, long first, long second, int within) {
             int kind = nodes.kinds[node];
             int a = nodes.as[node];
             int b = nodes.bs[node];
             switch (kind) {
                 case 'n':
-                    return types.put(Types.ONE, a, 0);
+                    return Types.one(a);
                 case 'a':
                     return a == 0 ? first : second < 0 ? Types.NONE : second;
                 case '?':
@@ -1199,7 +1408,7 @@ public final class Worldage {
                 case 'd':
                     return Types.INT;
                 case 'x':
-                    int content = nodeType(a, first, second, within);
+                    long content = nodeType(a, first, second, within);
                     return types.boxed(content, types.widened(content));
                 case 'u':
                     return types.unboxed(nodeType(a, first, second, within));
@@ -1207,16 +1416,16 @@ public final class Worldage {
                     nodeType(a, first, second, within);
                     return Types.NONE;
                 case 'y':
-                    int tried = nodeType(a, first, second, within);
+                    long tried = nodeType(a, first, second, within);
                     return types.join(tried, nodeType(b, first, second, within));
                 default:
-                    int left = nodeType(a, first, second, within);
+                    long left = nodeType(a, first, second, within);
                     return types.worked(kind, left, nodeType(b, first, second, within));
             }
         }
 
-        private int branchType(int node, int first, int second, int within) {
-            int condition = nodeType(nodes.as[node], first, second, within);
+        private long branchType(int node, long first, long second, int within) {
+            long condition = nodeType(nodes.as[node], first, second, within);
             if (types.isOneInt(condition)) {
                 int part = types.intOf(condition) != 0 ? nodes.bs[node] : nodes.cs[node];
                 return nodeType(part, first, second, within);
@@ -1224,15 +1433,17 @@ public final class Worldage {
             if (!types.meeting(condition, Types.INT)) {
                 return Types.NONE;
             }
-            int type = nodeType(nodes.bs[node], first, second, within);
+            long type = nodeType(nodes.bs[node], first, second, within);
             return types.join(type, nodeType(nodes.cs[node], first, second, within));
         }
 
-        private int calledType(int node, int first, int second, int within) {
+        private long calledType(int node, long first, long second, int within) {
             int c = nodes.cs[node];
-            int callFirst = nodeType(nodes.bs[node], first, second, within);
-            int callSecond = c < 0 ? NONE_GIVEN : nodeType(c, first, second, within);
-            note(node, callFirst, callSecond);
+            long callFirst = nodeType(nodes.bs[node], first, second, within);
+            long callSecond = c < 0 ? NONE_GIVEN : nodeType(c, first, second, within);
+            if (within == 0) {
+                note(node, callFirst, callSecond);
+            }
             if (callFirst == Types.NONE || callSecond == Types.NONE) {
                 return Types.NONE;
             }
@@ -1242,7 +1453,8 @@ public final class Worldage {
             return callType(nodes.as[node], callFirst, callSecond, within + 1);
         }
 
-        private void note(int node, int first, int second) {
+        /** Notes how a node c is met in the body of the call that is asked for; those of other calls do not count. */
+        private void note(int node, long first, long second) {
             boolean isOther = metStates[node] == MET_ALIKE && (metFirsts[node] != first || metSeconds[node] != second);
             metStates[node] = isOther || metStates[node] == MET_OTHERWISE ? MET_OTHERWISE : MET_ALIKE;
             metFirsts[node] = first;
@@ -1253,12 +1465,14 @@ public final class Worldage {
     /** Code made for kinds of arguments, with the calls fixed in it and the edges by which it becomes stale. */
     private static final class Codes {
         private static final int NEVER = 2147483647;
+        private static final int MOST_EDGES = 1 << 22;
 
+        private final Types types;
         private final Nodes nodes;
         private final Book book;
         private final int[] functions = new int[MOST_CODES];
-        private final int[] firsts = new int[MOST_CODES];
-        private final int[] seconds = new int[MOST_CODES];
+        private final long[] firsts = new long[MOST_CODES];
+        private final long[] seconds = new long[MOST_CODES];
         private final int[] madeAges = new int[MOST_CODES];
         private final int[] staleAges = new int[MOST_CODES];
         final int[] methods = new int[MOST_CODES];
@@ -1267,16 +1481,17 @@ public final class Worldage {
         final int[] callCounts = new int[MOST_CODES];
         final int[] edgeCounts = new int[MOST_CODES];
         private final int[] edgeStarts = new int[MOST_CODES];
-        private final CallTable edgeTable = new CallTable();
+        private final CallTable edges = new CallTable(MOST_EDGES, CallTable.PLACES_UNFOUND);
         int size;
 
-        Codes(Nodes nodes, Book book) {
+        Codes(Types types, Nodes nodes, Book book) {
+            this.types = types;
             this.nodes = nodes;
             this.book = book;
         }
 
         /** Returns the last code for a call that can be taken at an age, or -1. */
-        int find(int function, int first, int second, int age) {
+        int find(int function, long first, long second, int age) {
             for (int code = size - 1; code >= 0; code--) {
                 if (functions[code] == function && firsts[code] == first && seconds[code] == second
                         && madeAges[code] <= age && age < staleAges[code]) {
@@ -1286,11 +1501,11 @@ public final class Worldage {
             return -1;
         }
 
-        /** Keeps code that has no call fixed and no edge but its own yet. */
-        int keep(int function, int first, int second) {
+        /** Keeps code that has no call fixed and no edge yet. */
+        int keep(int function, long first, long second) {
             if (size >= MOST_CODES) {
                 size = 0;
-                edgeTable.clear();
+                edges.clear();
             }
             int code = size;
             size++;
@@ -1302,9 +1517,8 @@ public final class Worldage {
             methods[code] = book.surely(function, first, second);
             fixedCounts[code] = 0;
             callCounts[code] = 0;
-            edgeStarts[code] = edgeTable.size;
-            edgeCounts[code] = 1;
-            edgeTable.add(function, first, second);
+            edgeStarts[code] = edges.size;
+            edgeCounts[code] = 0;
             Arrays.fill(fixedRows, code * MOST_NODES, (code + 1) * MOST_NODES, -1);
             return code;
         }
@@ -1331,16 +1545,18 @@ public final class Worldage {
         /** Draws the edges of the code that was kept last, for which its call has just been settled. */
         void drawEdges(int code, Inferring inferring) {
             if (inferring.hasEnded()) {
-                addFound(code, inferring.lastRound());
-            } else if (methods[code] >= 0) {
+                // The call that was asked for, the code's own, is one of those that were found.
+                inferring.appendFound(edges);
+            } else {
+                addEdgeOnce(code, functions[code], firsts[code], seconds[code]);
                 addMet(code, inferring);
             }
-            edgeCounts[code] = edgeTable.size - edgeStarts[code];
+            edgeCounts[code] = edges.size - edgeStarts[code];
         }
 
         /** As each call counts as having all values, code depends on nothing but the choices of its own calls. */
         private void addMet(int code, Inferring inferring) {
-            int body = book.bodies[methods[code]];
+            int body = methods[code] < 0 ? -1 : book.bodies[methods[code]];
             nodes.reach(body);
             for (int node = 0; node <= body; node++) {
                 if (nodes.isReachedCall(node) && inferring.isMet(node)) {
@@ -1349,15 +1565,15 @@ public final class Worldage {
             }
         }
 
-        private void addFound(int code, CallTable found) {
-            for (int index = 0; index < found.size; index++) {
-                addEdgeOnce(code, found.functions[index], found.firsts[index], found.seconds[index]);
+        private void addEdgeOnce(int code, int function, long first, long second) {
+            for (int edge = edgeStarts[code]; edge < edges.size; edge++) {
+                if (edges.functionOf(edge) == function && edges.firstOf(edge) == first
+                        && edges.secondOf(edge) == second) {
+                    return;
+                }
             }
-        }
-
-        private void addEdgeOnce(int code, int function, int first, int second) {
-            if (edgeTable.find(function, first, second) < edgeStarts[code]) {
-                edgeTable.add(function, first, second);
+            if (!edges.isFull()) {
+                edges.append(function, first, second);
             }
         }
 
@@ -1373,13 +1589,22 @@ public final class Worldage {
         private boolean hasEdgeTo(int code, int method) {
             int end = edgeStarts[code] + edgeCounts[code];
             for (int edge = edgeStarts[code]; edge < end; edge++) {
-                int second = edgeTable.seconds[edge];
-                if (book.isForCall(method, edgeTable.functions[edge], second)
-                        && book.isMetBy(method, edgeTable.firsts[edge], second)) {
+                long second = edges.secondOf(edge);
+                if (book.isForCall(method, edges.functionOf(edge), second)
+                        && book.isMetBy(method, edges.firstOf(edge), second)) {
                     return true;
                 }
             }
             return false;
+        }
+
+        /** Marks the types that the codes and their edges have. */
+        void markTypes() {
+            for (int code = 0; code < size; code++) {
+                types.mark(firsts[code]);
+                types.mark(seconds[code]);
+            }
+            edges.markTypes(types);
         }
 
         int countStale() {
@@ -1403,11 +1628,11 @@ public final class Worldage {
     private static final class Values {
         static final int MOST = 256;
 
-        final int[] types = new int[MOST];
+        final long[] types = new long[MOST];
         final int[] ints = new int[MOST];
         int size;
 
-        void push(int type, int n) {
+        void push(long type, int n) {
             if (size < MOST) {
                 types[size] = type;
                 ints[size] = n;
@@ -1439,9 +1664,9 @@ public final class Worldage {
 
     /** Calls that are under way. Each has its own row of fixed methods, as its code can go while it lasts. */
     private static final class Calls {
-        final int[] firsts = new int[MOST_CALLS];
+        final long[] firsts = new long[MOST_CALLS];
         final int[] firstInts = new int[MOST_CALLS];
-        final int[] seconds = new int[MOST_CALLS];
+        final long[] seconds = new long[MOST_CALLS];
         final int[] secondInts = new int[MOST_CALLS];
         final int[] ages = new int[MOST_CALLS];
         final int[] workStarts = new int[MOST_CALLS];
@@ -1487,7 +1712,7 @@ public final class Worldage {
         private boolean isByCode;
         private boolean stopsAtDefine;
         int outcome;
-        int endType;
+        long endType;
         int endInt;
         int stepCount;
         int lookupCount;
@@ -1573,8 +1798,8 @@ public final class Worldage {
                 outcome = 's';
                 return;
             }
-            int first = values.types[at];
-            int second = count > 1 ? values.types[at + 1] : NONE_GIVEN;
+            long first = values.types[at];
+            long second = count > 1 ? values.types[at + 1] : NONE_GIVEN;
             int code = isByCode ? codes.find(function, first, second, age) : -1;
             if (isByCode && code < 0 && age == book.now) {
                 inferring.settle(function, first, second);
@@ -1601,7 +1826,7 @@ public final class Worldage {
 
         private int choose(int function, int age, int at, int count) {
             lookupCount++;
-            int second = count > 1 ? values.types[at + 1] : NONE_GIVEN;
+            long second = count > 1 ? values.types[at + 1] : NONE_GIVEN;
             int secondInt = count > 1 ? values.ints[at + 1] : 0;
             return book.bestOf(book.matchingValues(function, age, values.types[at], values.ints[at],
                     second, secondInt));
@@ -1646,7 +1871,7 @@ public final class Worldage {
                     fillBox();
                     break;
                 case 'u':
-                    int boxType = values.types[values.size - 1];
+                    long boxType = values.types[values.size - 1];
                     change(types.isBox(boxType), types.innerOf(boxType));
                     break;
                 case 't':
@@ -1672,7 +1897,7 @@ public final class Worldage {
         }
 
         /** Gives the last value another type, as objects and boxes carry the int of what they are made of. */
-        private void change(boolean isFit, int type) {
+        private void change(boolean isFit, long type) {
             if (isFit) {
                 values.types[values.size - 1] = type;
             } else {
@@ -1681,8 +1906,8 @@ public final class Worldage {
         }
 
         private void fillBox() {
-            int content = values.types[values.size - 1];
-            boolean isFit = types.depths[content] < Types.DEEPEST;
+            long content = values.types[values.size - 1];
+            boolean isFit = types.depthOf(content) < Types.DEEPEST;
             change(isFit, isFit ? types.put(Types.JUST, content, 0) : content);
         }
 
@@ -1740,36 +1965,45 @@ public final class Worldage {
 
     /** Counts the methods that can be reached from a call. */
     private static final class Trimmer {
-        private static final int MOST_REACHED = 1000;
+        private static final int MOST_REACHED = 1000000;
+        private static final int MANY = 256;
 
+        private final Types types;
         private final Nodes nodes;
         private final Book book;
         private final Inferring inferring;
-        private final CallTable reached = new CallTable();
+        private final Codes codes;
+        private final CallTable reached = new CallTable(MOST_REACHED, CallTable.PLACES);
 
-        Trimmer(Nodes nodes, Book book, Inferring inferring) {
+        Trimmer(Types types, Nodes nodes, Book book, Inferring inferring, Codes codes) {
+            this.types = types;
             this.nodes = nodes;
             this.book = book;
             this.inferring = inferring;
+            this.codes = codes;
         }
 
         /** Returns the number of methods, -1 if it cannot be told. */
-        int countFrom(int function, int first, int second) {
+        int countFrom(int function, long first, long second) {
             long methods = 0;
             reached.clear();
             if (first != Types.NONE && second != Types.NONE) {
                 reached.add(function, first, second);
             }
-            // Types of one int can make a chain of calls that has no end: the bound ends it.
             for (int index = 0; index < reached.size && index < MOST_REACHED; index++) {
-                int method = book.surely(reached.functions[index], reached.firsts[index], reached.seconds[index]);
+                int method = book.surely(reached.functionOf(index), reached.firstOf(index), reached.secondOf(index));
                 if (method < 0) {
                     return -1;
                 }
                 methods |= 1L << method;
-                inferring.settle(reached.functions[index], reached.firsts[index], reached.seconds[index]);
+                inferring.settle(reached.functionOf(index), reached.firstOf(index), reached.secondOf(index));
                 if (!addCalls(book.bodies[method])) {
                     return -1;
+                }
+                sweepTypes();
+                // Types of one int can make a chain of calls that has no end.
+                if (index >= MANY && (index & (index - 1)) == 0 && isClosed(methods)) {
+                    break;
                 }
             }
             return Long.bitCount(methods);
@@ -1792,9 +2026,64 @@ public final class Worldage {
             return true;
         }
 
-        private void addOnce(int function, int first, int second) {
-            if (reached.find(function, first, second) < 0) {
+        private void addOnce(int function, long first, long second) {
+            if (reached.find(function, first, second) < 0 && !reached.isFull()) {
                 reached.add(function, first, second);
+            }
+        }
+
+        private void sweepTypes() {
+            if (types.isCrowded()) {
+                types.beginSweep();
+                codes.markTypes();
+                reached.markTypes(types);
+                types.endSweep();
+            }
+        }
+
+        /** Tells whether all calls of these methods' bodies choose one of them, whichever calls these were made for. */
+        private boolean isClosed(long methods) {
+            for (int method = 0; method < book.size; method++) {
+                if ((methods >>> method & 1L) != 0 && !isClosedBody(method, methods)) {
+                    return false;
+                }
+            }
+            return true;
+        }
+
+        private boolean isClosedBody(int method, long methods) {
+            int body = book.bodies[method];
+            nodes.reach(body);
+            for (int node = 0; node <= body; node++) {
+                if (nodes.isReachedCall(node)) {
+                    int c = nodes.cs[node];
+                    int called = book.surely(nodes.as[node], typeAbove(nodes.bs[node], method),
+                            c < 0 ? NONE_GIVEN : typeAbove(c, method));
+                    if (called < 0 || (methods >>> called & 1L) == 0) {
+                        return false;
+                    }
+                }
+            }
+            return true;
+        }
+
+        /** Returns a type that is above all that a node can have in the body of a method. */
+        private long typeAbove(int node, int method) {
+            switch (nodes.kinds[node]) {
+                case 'n':
+                case '+':
+                case '-':
+                case '*':
+                case '<':
+                case 'f':
+                    return Types.INT;
+                case 'o':
+                    return nodes.as[node];
+                case 'a':
+                    long second = book.secondOf(method);
+                    return nodes.as[node] == 0 ? book.firstOf(method) : second < 0 ? Types.ANY : second;
+                default:
+                    return Types.ANY;
             }
         }
     }

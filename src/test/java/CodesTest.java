@@ -301,7 +301,7 @@ public final class CodesTest {
         CHECK.due("what it calls is", 1, x.stale());
     }
 
-    /** A node c that is met with several types in the last round has no fixed method. */
+    /** A node c that is met with other types in the bodies of other calls, ahead of its own or behind it, is fixed. */
     private static void metWithOthers() {
         Worldage x = new Worldage();
         int a = x.node('a', 0, 0, 0);
@@ -311,8 +311,32 @@ public final class CodesTest {
         x.define(x.prepare(1, 1, -1, a));
         x.define(x.prepare(0, 1, -1, x.node('+', again, shown, 0)));
         x.run(0, 1, NO, 9, true);
-        CHECK.due("only the call with 5", 1, x.fixed(0));
+        CHECK.due("both calls", 2, x.fixed(0));
         CHECK.due("edges", 4, x.edges(0));
+        fixedInItsBody();
+    }
+
+    /** Behind the call that is asked for, the second argument takes the place of the first one in the same node. */
+    private static void fixedInItsBody() {
+        Worldage x = new Worldage();
+        int second = x.node('a', 1, 0, 0);
+        int seven = x.node('n', 7, 0, 0);
+        int dog = x.named(0, true);
+        int self = x.node('c', 3, second, seven);
+        x.define(x.prepare(3, 0, 0, self));
+        CHECK.due("ends by calls", 's', x.run(3, 1, 1, 100, true));
+        CHECK.due("fixed", 1, x.fixed(0));
+        CHECK.due("edges, of 1 and 7 in each place", 3, x.edges(0));
+        CHECK.dueDouble("share", 1.0f, x.fixedShare());
+        CHECK.due("none looked up", 0, x.lookups());
+        CHECK.due("trim", 1, x.trim(3, 1, 1));
+        x.define(x.prepare(3, x.ofInt(7), dog, second));
+        CHECK.due("7 and a dog meet none of them", 0, x.stale());
+        x.define(x.prepare(3, 1, x.ofInt(7), second));
+        CHECK.due("stale", 1, x.stale());
+        CHECK.due("sees both", 'v', x.run(3, 1, 1, 100, true));
+        CHECK.due("not fixed, as 7 has two", 0, x.fixed(1));
+        CHECK.throwing("trim", UnsupportedOperationException.class, () -> x.trim(3, 1, 1));
     }
 
     private static void refused() {

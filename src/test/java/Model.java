@@ -524,7 +524,9 @@ final class Model {
                 T x = has(node.b, f, s, within);
                 T y = node.c == -1 ? null : has(node.c, f, s, within);
                 Call call = new Call(node.a, x, y);
-                met.computeIfAbsent(n, k -> new ArrayList<>()).add(call);
+                if (within == 0) {
+                    met.computeIfAbsent(n, k -> new ArrayList<>()).add(call);
+                }
                 if (x == none || y == none) {
                     return none;
                 }

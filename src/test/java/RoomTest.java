@@ -5,6 +5,7 @@ public final class RoomTest {
 
     public static void main(String[] args) {
         wideCalls();
+        manyUnions();
         sharedNodes();
         manyAges();
         CHECK.end();
@@ -32,14 +33,69 @@ public final class RoomTest {
         CHECK.due("of ints", 2, x.infer(0, 1, -1));
         CHECK.due("run", 's', x.run(0, 1, NO, 1000, true));
         Worldage y = new Worldage();
-        y.define(y.prepare(0, 1, -1, bodyOfCalls(y, 16)));
-        for (int i = 0; i < 30; i++) {
-            int one = y.ofInt(i);
-            CHECK.due("more than there is room for", true, y.infer(0, one, -1) != 1);
+        y.define(y.prepare(0, 1, -1, bodyOfCalls(y, 11)));
+        for (int i = 0; i < 5; i++) {
+            CHECK.due("as many each time", 1, y.infer(0, y.ofInt(i), -1));
         }
-        CHECK.due("there is room for types", 33, y.named(0, true));
-        CHECK.due("one more", 34, y.box(33));
+        CHECK.due("types", 8, y.named(0, true));
+        CHECK.due("one more", 9, y.box(8));
         CHECK.due("run", 's', y.run(0, 1, NO, 1000, true));
+        Worldage z = new Worldage();
+        z.define(z.prepare(0, 1, -1, bodyOfCalls(z, 20)));
+        CHECK.due("more than there is room for", 0, z.infer(0, z.ofInt(1), -1));
+        CHECK.due("goes on", 2, z.infer(0, 1, -1));
+        CHECK.due("run", 's', z.run(0, 1, NO, 1000, true));
+    }
+
+    private static int sum(Worldage x, int[] nodes, int count) {
+        int left = count;
+        while (left > 1) {
+            int next = 0;
+            for (int i = 0; i < left; i += 2) {
+                nodes[next] = i + 1 < left ? x.node('+', nodes[i], nodes[i + 1], 0) : nodes[i];
+                next++;
+            }
+            left = next;
+        }
+        return nodes[0];
+    }
+
+    /** Some 66,000 unions in each of many calls: those that no code needs are let go. */
+    private static void manyUnions() {
+        Worldage x = new Worldage();
+        int a = x.node('a', 0, 0, 0);
+        int b = x.node('a', 1, 0, 0);
+        int nine = x.node('n', 9, 0, 0);
+        int times = x.node('*', a, nine, 0);
+        int[] calls = new int[9];
+        for (int i = 0; i < 9; i++) {
+            int more = x.node('+', times, x.node('n', i, 0, 0), 0);
+            calls[i] = x.node('c', 0, more, x.node('?', b, more, a));
+        }
+        x.define(x.prepare(0, 1, 1, sum(x, calls, 9)));
+        for (int function = 1; function < 6; function++) {
+            int first = x.node('n', 1000000 * function, 0, 0);
+            int either = x.node('?', a, first, nine);
+            x.define(x.prepare(function, 1, -1, x.node('c', 0, first, either)));
+        }
+        for (int i = 0; i < 10; i++) {
+            int function = 1 + i % 5;
+            x.run(function, 1, NO, 3, true);
+            CHECK.due("edges", 2 + 9 + 81 + 729 + 6561, x.edges(x.codes() - 1));
+            CHECK.due("fixed", 1, x.fixed(x.codes() - 1));
+            x.takeAway(function);
+            x.define(function);
+            CHECK.due("all are stale", x.codes(), x.stale());
+        }
+        CHECK.dueDouble("mean", 2 + 9 + 81 + 729 + 6561, x.meanEdges());
+        int seven = x.ofInt(7);
+        int pair = x.union(1, x.named(0, true));
+        for (int i = 0; i < 3; i++) {
+            CHECK.due("infer", 1, x.infer(0, seven, pair));
+        }
+        CHECK.due("the union", pair, x.union(1, pair - 1));
+        x.define(x.prepare(1, seven, -1, a));
+        CHECK.due("stale", 10, x.stale());
     }
 
     /** Nodes that are shared at each depth, so that the body is a great tree. */

@@ -9,6 +9,7 @@ public final class TrimTest {
         refusedCalls();
         lateNodes();
         endless();
+        longChains();
         refused();
         CHECK.end();
     }
@@ -92,13 +93,41 @@ public final class TrimTest {
         x.define(x.prepare(0, 1, -1, x.node('c', 0, more, -1)));
         CHECK.due("ints", 1, x.trim(0, 1, -1));
         int zero = x.ofInt(0);
-        CHECK.throwing("met with several", UnsupportedOperationException.class, () -> x.trim(0, zero, -1));
+        CHECK.due("one int after the other, in its own body", 1, x.trim(0, zero, -1));
         x.takeAway(0);
         for (int i = 0; i < 5; i++) {
             x.define(x.prepare(i, 1, -1, x.node('c', i + 1, a, -1)));
         }
         x.define(x.prepare(5, 1, -1, x.node('c', 0, more, -1)));
         CHECK.due("one int after the other", 6, x.trim(0, zero, -1));
+    }
+
+    /** Function 0 calls itself with the next int up to a limit, and then another one. */
+    private static Worldage chainTo(int limit, int function) {
+        Worldage x = new Worldage();
+        int a = x.node('a', 0, 0, 0);
+        int more = x.node('+', a, x.node('n', 1, 0, 0), 0);
+        int isLess = x.node('<', a, x.node('n', limit, 0, 0), 0);
+        int on = x.node('c', 0, more, -1);
+        x.define(x.prepare(0, 1, -1, x.node('?', isLess, on, x.node('c', function, a, -1))));
+        x.define(x.prepare(1, 0, -1, a));
+        x.define(x.prepare(2, 0, -1, x.node('c', 0, a, -1)));
+        x.define(x.prepare(3, 1, -1, x.node('d', 0, 0, 0)));
+        x.ofInt(0);
+        return x;
+    }
+
+    private static void longChains() {
+        CHECK.due("nothing but itself behind the limit", 1, chainTo(5000, 0).trim(0, 3, -1));
+        CHECK.due("another one behind the limit", 2, chainTo(5000, 1).trim(0, 3, -1));
+        CHECK.due("far behind", 2, chainTo(100000, 1).trim(0, 3, -1));
+        CHECK.due("another one that comes back", 2, chainTo(4999, 2).trim(2, 3, -1));
+        Worldage late = chainTo(5000, 3);
+        CHECK.throwing("one with d", UnsupportedOperationException.class, () -> late.trim(0, 3, -1));
+        Worldage none = chainTo(5000, 4);
+        CHECK.throwing("none", UnsupportedOperationException.class, () -> none.trim(0, 3, -1));
+        none.define(none.prepare(4, 0, -1, 0));
+        CHECK.due("one", 2, none.trim(0, 3, -1));
     }
 
     private static void refused() {
