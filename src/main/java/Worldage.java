@@ -672,6 +672,21 @@ public final class Worldage {
             return kind == BELOW && other == JUST && below(firsts[(int) t], firsts[(int) s]);
         }
 
+        /**
+         * Returns a part of a type that is below 2 and not 2 itself, or -1. Such a part is below all types, so that each
+         * one but 2 meets it, and the type that has it.
+         */
+        private long hollowPart(long type) {
+            if (type < 0 || kindOf(type) != UNION) {
+                return NONE_GIVEN;
+            }
+            if (below(type, NONE)) {
+                return type;
+            }
+            long part = hollowPart(firsts[(int) type]);
+            return part >= 0 ? part : hollowPart(seconds[(int) type]);
+        }
+
         long join(long s, long t) {
             if (below(s, t)) {
                 return t;
@@ -1974,6 +1989,8 @@ public final class Worldage {
         private final Inferring inferring;
         private final Codes codes;
         private final CallTable reached = new CallTable(MOST_REACHED, CallTable.PLACES);
+        /** A hollow part of a type of an argument, -1 as long as none was reached. */
+        private long hollow;
 
         Trimmer(Types types, Nodes nodes, Book book, Inferring inferring, Codes codes) {
             this.types = types;
@@ -1987,8 +2004,9 @@ public final class Worldage {
         int countFrom(int function, long first, long second) {
             long methods = 0;
             reached.clear();
+            hollow = NONE_GIVEN;
             if (first != Types.NONE && second != Types.NONE) {
-                reached.add(function, first, second);
+                addOnce(function, first, second);
             }
             for (int index = 0; index < reached.size && index < MOST_REACHED; index++) {
                 int method = book.surely(reached.functionOf(index), reached.firstOf(index), reached.secondOf(index));
@@ -2029,6 +2047,7 @@ public final class Worldage {
         private void addOnce(int function, long first, long second) {
             if (reached.find(function, first, second) < 0 && !reached.isFull()) {
                 reached.add(function, first, second);
+                hollow = Math.max(hollow, Math.max(types.hollowPart(first), types.hollowPart(second)));
             }
         }
 
@@ -2044,22 +2063,10 @@ public final class Worldage {
         /** Tells whether all calls of these methods' bodies choose one of them, whichever calls these were made for. */
         private boolean isClosed(long methods) {
             for (int method = 0; method < book.size; method++) {
-                if ((methods >>> method & 1L) != 0 && !isClosedBody(method, methods)) {
-                    return false;
-                }
-            }
-            return true;
-        }
-
-        private boolean isClosedBody(int method, long methods) {
-            int body = book.bodies[method];
-            nodes.reach(body);
-            for (int node = 0; node <= body; node++) {
-                if (nodes.isReachedCall(node)) {
-                    int c = nodes.cs[node];
-                    int called = book.surely(nodes.as[node], typeAbove(nodes.bs[node], method),
-                            c < 0 ? NONE_GIVEN : typeAbove(c, method));
-                    if (called < 0 || (methods >>> called & 1L) == 0) {
+                int body = (methods >>> method & 1L) != 0 ? book.bodies[method] : -1;
+                nodes.reach(body);
+                for (int node = 0; node <= body; node++) {
+                    if (nodes.isReachedCall(node) && !isClosedCall(node, method, methods)) {
                         return false;
                     }
                 }
@@ -2067,8 +2074,30 @@ public final class Worldage {
             return true;
         }
 
-        /** Returns a type that is above all that a node can have in the body of a method. */
-        private long typeAbove(int node, int method) {
+        /**
+         * What meets a type meets each one above it too, if it has no hollow part: with one it can be below a type and
+         * meet others than this. So each call is also looked at with hollow types as what its arguments can have.
+         */
+        private boolean isClosedCall(int node, int method, long methods) {
+            int function = nodes.as[node];
+            int c = nodes.cs[node];
+            for (int way = 0; way < 4; way++) {
+                long first = typeAbove(nodes.bs[node], method, (way & 1) != 0);
+                long second = c < 0 ? NONE_GIVEN : typeAbove(c, method, (way & 2) != 0);
+                int called = book.surely(function, first, second);
+                if (called < 0 || (methods >>> called & 1L) == 0
+                        || book.possible(function, first, second) != 1L << called) {
+                    return false;
+                }
+            }
+            return true;
+        }
+
+        /**
+         * Returns a type that is above all that a node can have in the body of a method, or a hollow one if that is
+         * asked for: only arguments hand it on, as other nodes have none or count as having all values.
+         */
+        private long typeAbove(int node, int method, boolean isAskedHollow) {
             switch (nodes.kinds[node]) {
                 case 'n':
                 case '+':
@@ -2080,6 +2109,9 @@ public final class Worldage {
                 case 'o':
                     return nodes.as[node];
                 case 'a':
+                    if (isAskedHollow && hollow >= 0) {
+                        return hollow;
+                    }
                     long second = book.secondOf(method);
                     return nodes.as[node] == 0 ? book.firstOf(method) : second < 0 ? Types.ANY : second;
                 default:

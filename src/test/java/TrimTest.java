@@ -10,6 +10,7 @@ public final class TrimTest {
         lateNodes();
         endless();
         longChains();
+        hollowParts();
         refused();
         CHECK.end();
     }
@@ -128,6 +129,44 @@ public final class TrimTest {
         CHECK.throwing("none", UnsupportedOperationException.class, () -> none.trim(0, 3, -1));
         none.define(none.prepare(4, 0, -1, 0));
         CHECK.due("one", 2, none.trim(0, 3, -1));
+    }
+
+    /** Function 0 hands its second argument on, and behind a limit to function 1, with methods for ints and for dogs. */
+    private static Worldage handOnTo(int limit) {
+        Worldage x = new Worldage();
+        int a = x.node('a', 0, 0, 0);
+        int b = x.node('a', 1, 0, 0);
+        int zero = x.node('n', 0, 0, 0);
+        int isLess = x.node('<', a, x.node('n', limit, 0, 0), 0);
+        int far = x.node('?', isLess, zero, x.node('c', 1, b, -1));
+        int on = x.node('c', 0, x.node('+', a, x.node('n', 1, 0, 0), 0), b);
+        int dog = x.named(0, true);
+        x.define(x.prepare(0, 1, 1, x.node('+', x.node('+', far, x.node('c', 1, zero, -1), 0), on, 0)));
+        x.define(x.prepare(1, 1, -1, zero));
+        x.define(x.prepare(1, dog, -1, zero));
+        x.ofInt(0);
+        return x;
+    }
+
+    /** A type with a part that is below 2 can be below 1 and be met by what does not meet 1. */
+    private static void hollowParts() {
+        for (int limit = 1; limit <= 4000; limit *= 2) {
+            Worldage x = handOnTo(limit);
+            int hollow = x.union(2, 2);
+            int left = x.union(hollow, 1);
+            int right = x.union(1, hollow);
+            int deep = x.union(2, right);
+            int full = x.union(2, 1);
+            CHECK.due("dogs meet it, limit " + limit, true, x.meet(left, 3) && x.meet(deep, 3) && !x.meet(full, 3));
+            CHECK.due("ints, limit " + limit, 2, x.trim(0, 4, 1));
+            for (int type : new int[] {hollow, left, right, deep}) {
+                CHECK.throwing("type " + type + ", limit " + limit, UnsupportedOperationException.class,
+                        () -> x.trim(0, 4, type));
+            }
+            CHECK.due("no part is hollow, limit " + limit, 2, x.trim(0, 4, full));
+            x.takeAway(2);
+            CHECK.due("no dogs any more, limit " + limit, 2, x.trim(0, 4, deep));
+        }
     }
 
     private static void refused() {
