@@ -673,8 +673,8 @@ public final class Worldage {
         }
 
         /**
-         * Returns a part of a type that is below 2 and not 2 itself, or -1. Such a part is below all types, so that each
-         * one but 2 meets it, and the type that has it.
+         * Returns a part of a type that is below 2 and not 2 itself, or -1. Such a part is below all types, so that
+         * each one but 2 meets it, and the type that has it.
          */
         private long hollowPart(long type) {
             if (type < 0 || kindOf(type) != UNION) {
