@@ -58,6 +58,54 @@ public final class IsSameTest {
         CHECK.throwing("function -1", IllegalArgumentException.class, () -> x.isSame(-1, 1, NO, 9));
         CHECK.throwing("0 steps", IllegalArgumentException.class, () -> x.isSame(0, 1, NO, 0));
         CHECK.throwing("1001 steps", IllegalArgumentException.class, () -> x.isSame(0, 1, NO, 1001));
+        beginningD();
+        stepsAllowed();
         CHECK.end();
+    }
+
+    /** "would begin a node d, at which it ends": one that is not begun is no end, what would follow is not done. */
+    private static void beginningD() {
+        Worldage x = new Worldage();
+        int a = x.node('a', 0, 0, 0);
+        int late = x.prepare(5, 1, -1, a);
+        int defined = x.node('d', late, 0, 0);
+        int call = x.node('c', 1, a, -1);
+        x.define(x.prepare(0, 1, -1, x.node('?', a, x.node('+', defined, call, 0), call)));
+        x.define(x.prepare(1, 1, -1, a));
+        CHECK.due("not begun", true, x.isSame(0, 0, NO, 99));
+        CHECK.due("what is called makes code", 2, x.codes());
+        x.takeAway(2);
+        x.define(2);
+        CHECK.due("begun", true, x.isSame(0, 1, NO, 99));
+        CHECK.due("what would follow is not called", 3, x.codes());
+        CHECK.due("age", 4, x.age());
+        CHECK.due("not there", false, x.isThere(late, 4));
+        CHECK.due("caught by none", true, x.isSame(0, -1, NO, 99));
+        CHECK.due("a run defines it", 'v', x.run(0, 1, NO, 99, true));
+        CHECK.due("age 5, and 1", 6, x.result());
+        CHECK.due("begun though it is there", true, x.isSame(0, 1, NO, 99));
+        CHECK.due("age", 5, x.age());
+        CHECK.due("the last run stays", 6, x.result());
+    }
+
+    /** "the number of steps allowed, 1 to 1000", for each of the two runs. */
+    private static void stepsAllowed() {
+        Worldage x = new Worldage();
+        int a = x.node('a', 0, 0, 0);
+        int sum = a;
+        for (int depth = 0; depth < 9; depth++) {
+            sum = x.node('+', sum, sum, 0);
+        }
+        x.define(x.prepare(0, 1, -1, sum));
+        x.define(x.prepare(1, 1, -1, a));
+        for (int steps : new int[] {1, 2, 999, 1000}) {
+            CHECK.due("too few of " + steps, true, x.isSame(0, 3, NO, steps));
+            CHECK.due("enough with " + steps, true, x.isSame(1, 3, NO, steps));
+            CHECK.due("the least int", true, x.isSame(1, NO, NO, steps));
+            CHECK.due("no method for two", true, x.isSame(1, NO, 0, steps));
+        }
+        CHECK.due("codes", 3, x.codes());
+        CHECK.due("no steps of these", 0, x.allSteps());
+        CHECK.due("nor of the last run", 0, x.steps());
     }
 }

@@ -11,6 +11,10 @@ public final class TrimTest {
         endless();
         longChains();
         hollowParts();
+        handedOn();
+        farInt();
+        twoHollowParts();
+        notEnded();
         refused();
         CHECK.end();
     }
@@ -131,7 +135,9 @@ public final class TrimTest {
         CHECK.due("one", 2, none.trim(0, 3, -1));
     }
 
-    /** Function 0 hands its second argument on, and behind a limit to function 1, with methods for ints and for dogs. */
+    /**
+     * Function 0 hands its second argument on, and behind a limit to function 1, with methods for ints and for dogs.
+     */
     private static Worldage handOnTo(int limit) {
         Worldage x = new Worldage();
         int a = x.node('a', 0, 0, 0);
@@ -167,6 +173,91 @@ public final class TrimTest {
             x.takeAway(2);
             CHECK.due("no dogs any more, limit " + limit, 2, x.trim(0, 4, deep));
         }
+    }
+
+    /** What is handed on to a call far behind is told by its own parameter, not by the other one. */
+    private static void handedOn() {
+        for (int limit = 1; limit <= 2000; limit *= 10) {
+            Worldage x = new Worldage();
+            int a = x.node('a', 0, 0, 0);
+            int b = x.node('a', 1, 0, 0);
+            int zero = x.node('n', 0, 0, 0);
+            int dog = x.named(0, true);
+            int isLess = x.node('<', a, x.node('n', limit, 0, 0), 0);
+            int far = x.node('?', isLess, zero, x.node('c', 1, b, -1));
+            int more = x.node('+', a, x.node('n', 1, 0, 0), 0);
+            int sum = x.node('y', x.node('y', far, x.node('c', 1, zero, -1), 0), x.node('c', 0, more, b), 0);
+            x.define(x.prepare(0, 1, dog, sum));
+            x.define(x.prepare(1, 1, -1, zero));
+            x.define(x.prepare(1, dog, -1, zero));
+            x.ofInt(0);
+            CHECK.due("that for dogs, too, limit " + limit, 3, x.trim(0, 4, dog));
+            int turned = x.node('?', isLess, zero, x.node('c', 1, x.node('f', b, 0, 0), -1));
+            int object = x.node('c', 1, x.node('o', dog, zero, 0), -1);
+            x.define(x.prepare(0, 1, dog, x.node('y', x.node('y', turned, object, 0), x.node('c', 0, more, b), 0)));
+            CHECK.due("that for ints, too, limit " + limit, 3, x.trim(0, 4, dog));
+        }
+    }
+
+    /** A body that is itself the call, and a method for one int alone, far on. */
+    private static void farInt() {
+        for (int far = 1; far <= 2000; far = 3 * far + 1) {
+            Worldage x = new Worldage();
+            int a = x.node('a', 0, 0, 0);
+            int more = x.node('+', a, x.node('n', 1, 0, 0), 0);
+            x.define(x.prepare(0, 1, -1, x.node('c', 1, more, -1)));
+            x.define(x.prepare(1, 1, -1, x.node('c', 0, a, -1)));
+            x.ofInt(0);
+            CHECK.due("two", 2, x.trim(0, 3, -1));
+            x.define(x.prepare(1, x.ofInt(far), -1, a));
+            CHECK.throwing("the int " + far, UnsupportedOperationException.class, () -> x.trim(0, 3, -1));
+        }
+    }
+
+    /** Two arguments that both have a part that is below 2 meet what neither of them would meet alone. */
+    private static void twoHollowParts() {
+        for (int limit = 1; limit <= 2000; limit *= 10) {
+            Worldage x = new Worldage();
+            int a = x.node('a', 0, 0, 0);
+            int b = x.node('a', 1, 0, 0);
+            int zero = x.node('n', 0, 0, 0);
+            int dog = x.named(0, true);
+            int isLess = x.node('<', a, x.node('n', limit, 0, 0), 0);
+            int far = x.node('?', isLess, zero, x.node('c', 1, b, b));
+            int more = x.node('+', a, x.node('n', 1, 0, 0), 0);
+            int sum = x.node('+', far, x.node('c', 1, zero, zero), 0);
+            x.define(x.prepare(0, 1, 1, x.node('+', sum, x.node('c', 0, more, b), 0)));
+            x.define(x.prepare(1, 1, 1, zero));
+            x.define(x.prepare(1, dog, dog, zero));
+            x.ofInt(0);
+            int hollow = x.union(2, 2);
+            CHECK.due("ints, limit " + limit, 2, x.trim(0, 4, 1));
+            CHECK.throwing("both, limit " + limit, UnsupportedOperationException.class, () -> x.trim(0, 4, hollow));
+        }
+    }
+
+    /**
+     * If the rounds do not end for a call, what its body's calls have is 0, and the next ones are reached with this.
+     */
+    private static void notEnded() {
+        Worldage x = new Worldage();
+        int dog = x.named(0, true);
+        int a = x.node('a', 0, 0, 0);
+        int self = x.node('c', 0, x.node('-', a, x.node('n', 1, 0, 0), 0), -1);
+        int object = x.node('o', dog, a, 0);
+        x.define(x.prepare(0, 1, -1, x.node('?', a, x.node('x', self, 0, 0), object)));
+        CHECK.due("itself", 1, x.trim(0, 1, -1));
+        x.define(x.prepare(1, 1, -1, x.node('c', 2, self, -1)));
+        x.define(x.prepare(2, dog, -1, a));
+        CHECK.throwing("no method for all", UnsupportedOperationException.class, () -> x.trim(1, 1, -1));
+        x.define(x.prepare(2, x.boxBelow(0), -1, a));
+        CHECK.throwing("boxes and dogs are not all", UnsupportedOperationException.class, () -> x.trim(1, 1, -1));
+        x.takeAway(2);
+        x.takeAway(3);
+        x.define(x.prepare(2, 0, -1, a));
+        CHECK.due("one for all", 3, x.trim(1, 1, -1));
+        x.define(x.prepare(3, 1, -1, x.node('y', self, x.node('c', 2, x.node('c', 4, a, -1), -1), 0)));
+        CHECK.throwing("a call that is not there", UnsupportedOperationException.class, () -> x.trim(3, 1, -1));
     }
 
     private static void refused() {
