@@ -16,6 +16,7 @@ public final class CodeTermsTest {
         edgesWithoutMethod();
         edgesOnce();
         edgesWithinSix();
+        edgesOfTheLastRound();
         notEndedFixed();
         notEndedEdges();
         notEndedWithoutMethod();
@@ -249,8 +250,9 @@ public final class CodeTermsTest {
         x.define(x.prepare(1, 0, -1, x.node('c', 2, a, a)));
         int[] bodies = {a, x.node('c', 0, a, -1), x.node('c', 1, a, -1), x.node('c', 0, thrown, -1),
             x.node('?', zero, x.node('c', 0, a, -1), a), x.node('l', 0, a, -1), x.node('c', 5, a, -1),
-            x.node('c', 5, one, -1), x.node('c', 0, x.node('c', 1, one, -1), -1)};
-        int[] due = {1, 2, 3, 1, 1, 1, 1, 2, 3};
+            x.node('c', 5, one, -1), x.node('c', 0, x.node('c', 1, one, -1), -1), x.node('c', 0, a, thrown),
+            x.node('c', 0, thrown, a), x.node('c', 0, a, one)};
+        int[] due = {1, 2, 3, 1, 1, 1, 1, 2, 3, 1, 1, 2};
         for (int i = 0; i < bodies.length; i++) {
             int method = x.prepare(5, 1, -1, bodies[i]);
             x.define(method);
@@ -304,6 +306,22 @@ public final class CodeTermsTest {
             x.define(x.prepare(5, 1, -1, x.node('c', 0, x.node('n', last == 0 ? 0 : 1, 0, 0), -1)));
             CHECK.due("from 1 to " + last, due[last], edgesOf(x));
         }
+    }
+
+    /** "each call that was found in the last round": what was found only in one before is no edge. */
+    private static void edgesOfTheLastRound() {
+        Worldage x = new Worldage();
+        int dog = x.named(0, true);
+        int cat = x.named(0, true);
+        int a = x.node('a', 0, 0, 0);
+        int self = x.node('c', 0, x.node('-', a, x.node('n', 1, 0, 0), 0), -1);
+        int object = x.node('o', cat, a, 0);
+        x.define(x.prepare(1, dog, -1, object));
+        x.define(x.prepare(1, cat, -1, object));
+        x.define(x.prepare(0, 1, -1, x.node('?', a, x.node('c', 1, self, -1), x.node('o', dog, a, 0))));
+        CHECK.due("run", 'v', x.run(0, 0, NO, 9, true));
+        CHECK.due("itself, and function 1 with cats or dogs, no more with dogs", 2, x.edges(0));
+        CHECK.due("the types of the last round", 1, x.fixed(0));
     }
 
     /** Function 0 has boxes in boxes, so that no round is as that before; function 1 has objects of the type 3. */
