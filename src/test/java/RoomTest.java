@@ -6,6 +6,9 @@ public final class RoomTest {
     public static void main(String[] args) {
         wideCalls();
         manyUnions();
+        typesOfCodes();
+        typesOfTrim(2);
+        typesOfTrim(4);
         sharedNodes();
         manyAges();
         CHECK.end();
@@ -96,6 +99,102 @@ public final class RoomTest {
         CHECK.due("the union", pair, x.union(1, pair - 1));
         x.define(x.prepare(1, seven, -1, a));
         CHECK.due("stale", 10, x.stale());
+    }
+
+    /** Function 5 makes some 20,000 types, half of them with dogs, that nothing needs any more when it is inferred. */
+    private static Worldage withManyTypes() {
+        Worldage x = new Worldage();
+        int dog = x.named(0, true);
+        int a = x.node('a', 0, 0, 0);
+        int b = x.node('a', 1, 0, 0);
+        int times = x.node('*', a, x.node('n', 5, 0, 0), 0);
+        int object = x.node('o', dog, a, 0);
+        int[] calls = new int[5];
+        for (int i = 0; i < 5; i++) {
+            int more = x.node('+', times, x.node('n', i, 0, 0), 0);
+            calls[i] = x.node('c', 5, more, x.node('?', b, more, x.node('?', b, object, a)));
+        }
+        x.define(x.prepare(5, 0, 0, sum(x, calls, 5)));
+        x.ofInt(1000);
+        return x;
+    }
+
+    /** The types of codes, of their edges and of the last value stay what they are while others are let go. */
+    private static void typesOfCodes() {
+        Worldage x = withManyTypes();
+        int dog = 3;
+        int cat = x.named(0, true);
+        int a = 0;
+        int object = x.node('o', dog, a, 0);
+        int other = x.node('o', cat, a, 0);
+        int box = x.node('x', x.node('x', object, 0, 0), 0, 0);
+        int either = x.node('?', a, other, x.node('x', box, 0, 0));
+        x.define(x.prepare(2, 0, 0, a));
+        x.define(x.prepare(1, 1, -1, x.node('y', x.node('c', 2, box, either), a, 0)));
+        x.define(x.prepare(3, 1, -1, x.node('x', x.node('x', x.node('x', a, 0, 0), 0, 0), 0, 0)));
+        int late = x.prepare(2, x.box(x.box(cat)), 0, a);
+        CHECK.due("run", 'v', x.run(1, 1, NO, 99, true));
+        CHECK.due("codes", 2, x.codes());
+        CHECK.due("edges", 2, x.edges(0));
+        CHECK.due("run without code", 'v', x.run(3, 7, NO, 99, false));
+        for (int i = 0; i < 4; i++) {
+            CHECK.due("many types", 1, x.infer(5, x.ofInt(1000 + i), 1));
+            CHECK.due("the int of the last value", 7, x.result());
+        }
+        CHECK.due("the type of the last value", x.box(x.box(x.box(1))), x.resultType());
+        CHECK.due("run", 'v', x.run(1, 1, NO, 99, true));
+        CHECK.due("both took code that was there", 2, x.codes());
+        x.define(late);
+        CHECK.due("boxes of boxes of cats meet no edge", 0, x.stale());
+        int two = x.box(x.box(dog));
+        x.define(x.prepare(2, two, x.box(two), a));
+        CHECK.due("three boxes meet cats or three boxes", 1, x.stale());
+        x.define(x.prepare(2, two, cat, a));
+        CHECK.due("cats meet both", 2, x.stale());
+    }
+
+    /** The types of the calls that trim has come to stay what they are while others are let go; so do those of codes. */
+    private static void typesOfTrim(int farFunction) {
+        Worldage x = new Worldage();
+        int dog = x.named(0, true);
+        int either = x.union(x.boxBelow(dog), 1);
+        int a = x.node('a', 0, 0, 0);
+        int object = x.node('o', dog, a, 0);
+        int unknown = x.node('f', a, 0, 0);
+        int on = x.node('c', 3, x.node('+', a, x.node('n', 1, 0, 0), 0), -1);
+        int[] parts = new int[25];
+        int[] far = new int[3];
+        for (int i = 0; i < 12; i++) {
+            int more = x.node('+', a, x.node('n', 10000 * i + 7, 0, 0), 0);
+            parts[i] = x.node('c', 2, x.node('?', unknown, more, a), -1);
+            parts[12 + i] = x.node('?', unknown, object, more);
+            if (i < 3) {
+                far[i] = x.node('c', farFunction, parts[12 + i], -1);
+            }
+        }
+        int isLess = x.node('<', a, x.node('n', 9000, 0, 0), 0);
+        parts[24] = x.node('?', isLess, on, sum(x, far, 3));
+        x.define(x.prepare(3, 1, -1, sum(x, parts, 25)));
+        x.define(x.prepare(2, 0, 0, a));
+        int box = x.node('c', 2, x.node('x', object, 0, 0), a);
+        x.define(x.prepare(1, 1, -1, x.node('f', x.node('u', box, 0, 0), 0, 0)));
+        int all = x.prepare(farFunction, 0, -1, a);
+        x.define(all);
+        if (farFunction != 2) {
+            x.define(x.prepare(2, 1, -1, a));
+            x.define(x.prepare(2, dog, -1, a));
+        }
+        CHECK.due("run", 'v', x.run(1, 5, NO, 99, true));
+        int zero = x.ofInt(0);
+        CHECK.due("itself, that for all, and that for ints", farFunction == 2 ? 2 : 3, x.trim(3, zero, -1));
+        x.takeAway(all);
+        x.define(x.prepare(farFunction, 1, -1, a));
+        CHECK.throwing("at the end some ints or dogs", UnsupportedOperationException.class, () -> x.trim(3, zero, -1));
+        CHECK.due("run", 'v', x.run(1, 5, NO, 99, true));
+        CHECK.due("by the codes that were there", 2, x.codes());
+        CHECK.due("of boxes of dogs", 5, x.result());
+        CHECK.due("a union", either, x.union(x.boxBelow(dog), 1));
+        CHECK.due("of boxes", true, x.isBelow(x.box(dog), either));
     }
 
     /** Nodes that are shared at each depth, so that the body is a great tree. */
