@@ -716,10 +716,15 @@ public final class Worldage {
             if (kind == ONE) {
                 return INT;
             }
-            if (kind == UNION) {
-                return join(widened(firsts[(int) type]), widened(seconds[(int) type]));
+            if (kind != UNION) {
+                return type;
             }
-            return type;
+            long first = firsts[(int) type];
+            long second = seconds[(int) type];
+            long wideFirst = widened(first);
+            long wideSecond = widened(second);
+            // Parts are joined only where one has become another: a join can let go of one of them.
+            return wideFirst == first && wideSecond == second ? type : join(wideFirst, wideSecond);
         }
 
         /** Returns the type of boxes with something of a type, given the same without the types of one int. */

@@ -14,6 +14,7 @@ public final class InferTermsTest {
         boxes();
         boxesTooDeep();
         boxesOfUnions();
+        boxesOfUnionsWithoutOneInt();
         opened();
         thrownAndJoined();
         foundAlready();
@@ -310,6 +311,27 @@ public final class InferTermsTest {
         CHECK.due("of a box and beside it", x.boxBelow(x.union(boxOfFive, 1)), x.infer(0, x.union(boxOfFive, six), -1));
         int deep = x.union(dog, x.union(five, x.union(six, five)));
         CHECK.due("4 deep at first", x.boxBelow(dogOrInt), x.infer(0, deep, -1));
+    }
+
+    /** "by joining both parts then": a union in which no type becomes 1 stays, one that is a part beside it too. */
+    private static void boxesOfUnionsWithoutOneInt() {
+        Worldage x = new Worldage();
+        int animal = x.named(0, false);
+        int dog = x.named(animal, true);
+        int five = x.ofInt(5);
+        x.define(x.prepare(0, 0, -1, x.node('x', x.node('a', 0, 0, 0), 0, 0)));
+        int stays = x.union(dog, animal);
+        int[] unions = {stays, x.union(animal, dog), x.union(dog, dog), x.union(2, dog), x.union(dog, 2),
+            x.union(animal, 0), x.union(dog, stays), x.union(1, x.union(1, dog)), x.union(x.box(five), x.boxBelow(0))};
+        for (int union : unions) {
+            CHECK.due("no one int in " + union, x.boxBelow(union), x.infer(0, union, -1));
+        }
+        CHECK.due("beside it", x.boxBelow(x.union(stays, 1)), x.infer(0, x.union(stays, five), -1));
+        CHECK.due("behind it", x.boxBelow(x.union(1, stays)), x.infer(0, x.union(five, stays), -1));
+        CHECK.due("that which it is a part of is joined", x.boxBelow(x.union(animal, 1)),
+                x.infer(0, x.union(x.union(animal, five), dog), -1));
+        CHECK.due("it is joined itself", x.boxBelow(0), x.infer(0, x.union(five, 0), -1));
+        CHECK.due("with nothing", x.boxBelow(x.union(1, dog)), x.infer(0, x.union(x.union(2, five), dog), -1));
     }
 
     /** "'u' 2 if a is 2, what a 'b' or 'o' is made of, otherwise 0". */

@@ -570,7 +570,11 @@ final class Model {
     }
 
     T wide(T t) {
-        return t.kind == 's' ? ints : t.kind == 'u' ? join(wide(t.a), wide(t.b)) : t;
+        return t.kind == 's' ? ints : t.kind == 'u' && hasOneInt(t) ? join(wide(t.a), wide(t.b)) : t;
+    }
+
+    boolean hasOneInt(T t) {
+        return t.kind == 's' || (t.kind == 'u' && (hasOneInt(t.a) || hasOneInt(t.b)));
     }
 
     static int work(char kind, int x, int y) {
