@@ -181,7 +181,6 @@ public final class Worldage {
             throws IllegalArgumentException {
         needFunction(function);
         needSteps(steps);
-        sweepTypes();
         machine.go(function, first, second, steps, isByCode, false);
         lastOutcome = machine.outcome;
         types.ofLastRun = machine.endType;
@@ -261,7 +260,6 @@ public final class Worldage {
     public boolean isSame(int function, int first, int second, int steps) throws IllegalArgumentException {
         needFunction(function);
         needSteps(steps);
-        sweepTypes();
         machine.go(function, first, second, steps, true, true);
         int outcome = machine.outcome;
         long endType = machine.endType;
@@ -1709,6 +1707,13 @@ public final class Worldage {
             System.arraycopy(rows, code * MOST_NODES, fixedRows, (depth - 1) * MOST_NODES, MOST_NODES);
         }
 
+        void markTypes(Types types) {
+            for (int call = 0; call < depth; call++) {
+                types.mark(firsts[call]);
+                types.mark(seconds[call]);
+            }
+        }
+
         int fixedAt(int node) {
             return fixedRows[(depth - 1) * MOST_NODES + node];
         }
@@ -1822,6 +1827,7 @@ public final class Worldage {
             long second = count > 1 ? values.types[at + 1] : NONE_GIVEN;
             int code = isByCode ? codes.find(function, first, second, age) : -1;
             if (isByCode && code < 0 && age == book.now) {
+                sweepTypes();
                 inferring.settle(function, first, second);
                 code = codes.keep(function, first, second);
                 codes.fixCalls(code, inferring);
@@ -1842,6 +1848,19 @@ public final class Worldage {
             }
             values.size = at;
             begin(book.bodies[method]);
+        }
+
+        /** One run can make code often, each time with many types that nothing needs after that. */
+        private void sweepTypes() {
+            if (types.isCrowded()) {
+                types.beginSweep();
+                codes.markTypes();
+                calls.markTypes(types);
+                for (int index = 0; index < values.size; index++) {
+                    types.mark(values.types[index]);
+                }
+                types.endSweep();
+            }
         }
 
         private int choose(int function, int age, int at, int count) {

@@ -9,6 +9,7 @@ public final class RoomTest {
         typesOfCodes();
         typesOfTrim(2);
         typesOfTrim(4);
+        manyTypesInOneRun();
         sharedNodes();
         manyAges();
         CHECK.end();
@@ -195,6 +196,45 @@ public final class RoomTest {
         CHECK.due("of boxes of dogs", 5, x.result());
         CHECK.due("a union", either, x.union(x.boxBelow(dog), 1));
         CHECK.due("of boxes", true, x.isBelow(x.box(dog), either));
+    }
+
+    /** One run that makes code for ten types, each time with some 160,000 unions: they all find room. */
+    private static void manyTypesInOneRun() {
+        Worldage x = new Worldage();
+        int dog = x.named(0, true);
+        int a = x.node('a', 0, 0, 0);
+        int b = x.node('a', 1, 0, 0);
+        int zero = x.node('n', 0, 0, 0);
+        int times = x.node('*', a, x.node('n', 11, 0, 0), 0);
+        int[] calls = new int[11];
+        for (int i = 0; i < 11; i++) {
+            int more = x.node('+', times, x.node('n', i, 0, 0), 0);
+            calls[i] = x.node('c', 0, more, x.node('?', b, more, a));
+        }
+        x.define(x.prepare(0, 1, 1, sum(x, calls, 11)));
+        x.define(x.prepare(5, 0, -1, zero));
+        int isNever = x.node('c', 5, a, -1);
+        int value = a;
+        int type = 1;
+        for (int i = 0; i < 10; i++) {
+            int many = x.node('n', 3000000 * i + 3000001, 0, 0);
+            x.define(x.prepare(1, type, -1, x.node('?', isNever, x.node('c', 0, many, isNever), zero)));
+            calls[i] = x.node('l', 1, value, -1);
+            value = i % 4 == 3 ? x.node('o', i < 5 ? dog : x.named(0, true), a, 0) : x.node('x', value, 0, 0);
+            type = i % 4 == 3 ? i < 5 ? dog : x.types() - 1 : x.box(type);
+        }
+        x.define(x.prepare(2, 1, -1, sum(x, calls, 10)));
+        CHECK.due("run", 'v', x.run(2, 1, NO, 1000, true));
+        CHECK.due("codes of 2, of 1 and of 5", 1 + 10 + 10, x.codes());
+        for (int code = 0; code < 21; code++) {
+            CHECK.due("edges of " + code, code % 2 == 1 ? 2 + 16105 : 1, x.edges(code));
+        }
+        x.define(x.prepare(0, 1, dog, a));
+        CHECK.due("the unions of ints meet no dogs", 0, x.stale());
+        x.define(x.prepare(0, x.ofInt(2147483647), 1, a));
+        CHECK.due("the int is none of those met", 0, x.stale());
+        x.define(x.prepare(0, x.ofInt(330000011), 1, a));
+        CHECK.due("that is met within the tenth call", 1, x.stale());
     }
 
     /** Nodes that are shared at each depth, so that the body is a great tree. */
