@@ -355,8 +355,9 @@ public final class Worldage {
     }
 
     /**
-     * The types. One of one int is told by a bit of its own and the int; each other one has a place in a table.
-     * Inferring and running make types that no call has returned yet: only those that were returned have numbers.
+     * The types. One of one int is told by a bit of its own and the int; each other one has a place in a table, which
+     * lies in pieces that are made when they are needed and never copied. Inferring and running make types that no
+     * call has returned yet: only those that were returned have numbers.
      */
     private static final class Types {
         static final long ANY = 0;
@@ -364,7 +365,8 @@ public final class Worldage {
         static final long NONE = 2;
         static final int DEEPEST = 4;
 
-        /** The kinds of types; 0 is that of ANY, INT and NONE. */
+        /** The kinds of types; ANY, INT and NONE are given. */
+        private static final int GIVEN = 0;
         static final int NAMED = 1;
         static final int ONE = 2;
         static final int JUST = 3;
@@ -375,22 +377,25 @@ public final class Worldage {
         /** What is added to the kind of a type while it is marked. */
         private static final int MARK = 16;
         private static final int BUILT_IN = 3;
-        private static final int MOST_PLACES = 1 << 20;
+        private static final int SHIFT = 10;
+        private static final int PIECE = 1 << SHIFT;
+        private static final int IN_PIECE = PIECE - 1;
+        private static final int MOST_PIECES = 1 << 10;
+        private static final int MOST_PLACES = MOST_PIECES * PIECE;
         private static final int MOST_INFERRED = MOST_PLACES - 2048;
         private static final int MANY_MORE = 4096;
         private static final int TYPES_A_BUCKET = 4;
 
         private int[] heads = new int[256];
-        private int[] nexts = new int[128];
-        private int[] hashes = new int[128];
-        private int[] kinds = new int[128];
-        private int[] depths = new int[128];
-        private long[] firsts = new long[128];
-        private long[] seconds = new long[128];
-        private int size = BUILT_IN;
+        private final int[][] nexts = new int[MOST_PIECES][];
+        private final int[][] hashes = new int[MOST_PIECES][];
+        private final int[][] kinds = new int[MOST_PIECES][];
+        private final long[][] firsts = new long[MOST_PIECES][];
+        private final long[][] seconds = new long[MOST_PIECES][];
+        private int size;
         private int firstFree = -1;
-        private int used = BUILT_IN;
-        private int usedBefore = BUILT_IN;
+        private int used;
+        private int usedBefore;
         final long[] ids = new long[MOST_TYPES];
         int numbered = BUILT_IN;
         long ofLastRun = ANY;
@@ -399,8 +404,9 @@ public final class Worldage {
 
         Types() {
             Arrays.fill(heads, -1);
-            ids[1] = INT;
-            ids[2] = NONE;
+            for (int type = 0; type < BUILT_IN; type++) {
+                ids[type] = put(GIVEN, ANY, type);
+            }
         }
 
         static long one(int n) {
@@ -412,41 +418,40 @@ public final class Worldage {
             long mixed = (first * 31 + kind) * 0x9E3779B97F4A7C15L ^ second * 0xC2B2AE3D27D4EB4FL;
             int hash = (int) (mixed >>> 40);
             int bucket = hash & (heads.length - 1);
-            for (int id = heads[bucket], left = size; id >= 0 && left > 0; id = nexts[id], left--) {
-                if (kinds[id] == kind && firsts[id] == first && seconds[id] == second) {
+            int id = heads[bucket];
+            for (int left = size; id >= 0 && left > 0; left--) {
+                int piece = id >> SHIFT;
+                int place = id & IN_PIECE;
+                if (kinds[piece][place] == kind && firsts[piece][place] == first && seconds[piece][place] == second) {
                     return id;
                 }
+                id = nexts[piece][place];
             }
             if (used >= (isInferring ? MOST_INFERRED : MOST_PLACES)) {
                 return ANY;
             }
-            int id = firstFree;
+            used++;
+            id = firstFree;
             if (id >= 0) {
-                firstFree = nexts[id];
+                firstFree = nexts[id >> SHIFT][id & IN_PIECE];
             } else {
                 id = size;
                 size++;
             }
-            if (size > kinds.length) {
-                int room = 2 * size;
-                nexts = Arrays.copyOf(nexts, room);
-                hashes = Arrays.copyOf(hashes, room);
-                kinds = Arrays.copyOf(kinds, room);
-                depths = Arrays.copyOf(depths, room);
-                firsts = Arrays.copyOf(firsts, room);
-                seconds = Arrays.copyOf(seconds, room);
+            int piece = id >> SHIFT;
+            int place = id & IN_PIECE;
+            if (kinds[piece] == null) {
+                nexts[piece] = new int[PIECE];
+                hashes[piece] = new int[PIECE];
+                kinds[piece] = new int[PIECE];
+                firsts[piece] = new long[PIECE];
+                seconds[piece] = new long[PIECE];
             }
-            used++;
-            kinds[id] = kind;
-            firsts[id] = first;
-            seconds[id] = second;
-            depths[id] = kind == NAMED ? 0 : first >= ONES ? 2 : 1 + depths[(int) first];
-            int depthOfSecond = kind != UNION ? 0 : second >= ONES ? 1 : depths[(int) second];
-            if (depthOfSecond >= depths[id] && kind == UNION) {
-                depths[id] = 1 + depthOfSecond;
-            }
-            hashes[id] = hash;
-            nexts[id] = heads[bucket];
+            kinds[piece][place] = kind;
+            firsts[piece][place] = first;
+            seconds[piece][place] = second;
+            hashes[piece][place] = hash;
+            nexts[piece][place] = heads[bucket];
             heads[bucket] = id;
             return id;
         }
@@ -462,9 +467,9 @@ public final class Worldage {
             for (int index = 0; index < fewer.length; index++) {
                 int id = fewer[index];
                 for (int left = size; id >= 0 && left > 0; left--) {
-                    int next = nexts[id];
-                    int bucket = hashes[id] & (heads.length - 1);
-                    nexts[id] = heads[bucket];
+                    int next = nexts[id >> SHIFT][id & IN_PIECE];
+                    int bucket = hashes[id >> SHIFT][id & IN_PIECE] & (heads.length - 1);
+                    nexts[id >> SHIFT][id & IN_PIECE] = heads[bucket];
                     heads[bucket] = id;
                     id = next;
                 }
@@ -472,11 +477,29 @@ public final class Worldage {
         }
 
         private int kindOf(long type) {
-            return type >= ONES ? ONE : kinds[(int) type];
+            return type >= ONES ? ONE : kinds[(int) type >> SHIFT][(int) type & IN_PIECE];
+        }
+
+        /** Returns the parent, or the first one that a type is made of; not for one of one int. */
+        private long firstOf(long type) {
+            return firsts[(int) type >> SHIFT][(int) type & IN_PIECE];
+        }
+
+        private long secondOf(long type) {
+            return seconds[(int) type >> SHIFT][(int) type & IN_PIECE];
         }
 
         int depthOf(long type) {
-            return type >= ONES ? 1 : depths[(int) type];
+            if (type >= ONES) {
+                return 1;
+            }
+            int kind = kinds[(int) type >> SHIFT][(int) type & IN_PIECE];
+            if (kind < JUST) {
+                return 0;
+            }
+            int depth = depthOf(firsts[(int) type >> SHIFT][(int) type & IN_PIECE]);
+            int other = kind == UNION ? depthOf(seconds[(int) type >> SHIFT][(int) type & IN_PIECE]) : 0;
+            return 1 + Math.max(depth, other);
         }
 
         /** Tells whether many types have been made since the last time that types were let go. */
@@ -493,35 +516,36 @@ public final class Worldage {
         }
 
         void mark(long type) {
-            if (type < BUILT_IN || type >= ONES || kinds[(int) type] >= MARK) {
+            if (type < 0 || type >= ONES || kindOf(type) >= MARK) {
                 return;
             }
-            int id = (int) type;
-            int kind = kinds[id];
-            kinds[id] = kind + MARK;
+            int kind = kindOf(type);
+            kinds[(int) type >> SHIFT][(int) type & IN_PIECE] = kind + MARK;
             if (kind >= JUST) {
-                mark(firsts[id]);
+                mark(firstOf(type));
             }
             if (kind == UNION) {
-                mark(seconds[id]);
+                mark(secondOf(type));
             }
         }
 
         /** Lets go of the types that are not marked: their places can be taken by others. */
         void endSweep() {
-            used = BUILT_IN;
+            used = 0;
             for (int bucket = 0; bucket < heads.length; bucket++) {
                 int id = heads[bucket];
                 heads[bucket] = -1;
                 for (int left = size; id >= 0 && left > 0; left--) {
-                    int next = nexts[id];
-                    if (kinds[id] >= MARK) {
-                        kinds[id] -= MARK;
-                        nexts[id] = heads[bucket];
+                    int piece = id >> SHIFT;
+                    int place = id & IN_PIECE;
+                    int next = nexts[piece][place];
+                    if (kinds[piece][place] >= MARK) {
+                        kinds[piece][place] -= MARK;
+                        nexts[piece][place] = heads[bucket];
                         heads[bucket] = id;
                         used++;
                     } else {
-                        nexts[id] = firstFree;
+                        nexts[piece][place] = firstFree;
                         firstFree = id;
                     }
                     id = next;
@@ -537,11 +561,11 @@ public final class Worldage {
         }
 
         boolean canBeParent(long type) {
-            return type == ANY || (kindOf(type) == NAMED && seconds[(int) type] >= 0);
+            return type == ANY || (kindOf(type) == NAMED && secondOf(type) >= 0);
         }
 
         private boolean isConcrete(long type) {
-            return kindOf(type) == NAMED && seconds[(int) type] < 0;
+            return kindOf(type) == NAMED && secondOf(type) < 0;
         }
 
         /** Returns the place of the type with this number, if it is a concrete named one, otherwise -1. */
@@ -555,7 +579,7 @@ public final class Worldage {
         boolean isOfValues(long type) {
             long inner = type;
             for (int depth = 0; depth < DEEPEST && kindOf(inner) == JUST; depth++) {
-                inner = firsts[(int) inner];
+                inner = firstOf(inner);
             }
             return inner == INT || isConcrete(inner);
         }
@@ -578,7 +602,7 @@ public final class Worldage {
         }
 
         long innerOf(long box) {
-            return isBox(box) ? firsts[(int) box] : ANY;
+            return isBox(box) ? firstOf(box) : ANY;
         }
 
         private int numberOf(long type) {
@@ -604,10 +628,10 @@ public final class Worldage {
                 return true;
             }
             int kind = kindOf(type);
-            if (kind >= JUST && !giveNumber(firsts[(int) type])) {
+            if (kind >= JUST && !giveNumber(firstOf(type))) {
                 return false;
             }
-            if (kind == UNION && !giveNumber(seconds[(int) type])) {
+            if (kind == UNION && !giveNumber(secondOf(type))) {
                 return false;
             }
             if (numbered >= MOST_TYPES) {
@@ -622,28 +646,30 @@ public final class Worldage {
             if (s == t || s == NONE || t == ANY) {
                 return true;
             }
-            int kind = s >= ONES ? ONE : kinds[(int) s];
-            int kindAbove = t >= ONES ? ONE : kinds[(int) t];
+            int kind = s >= ONES ? ONE : kinds[(int) s >> SHIFT][(int) s & IN_PIECE];
+            int kindAbove = t >= ONES ? ONE : kinds[(int) t >> SHIFT][(int) t & IN_PIECE];
+            long first = s >= ONES ? s : firsts[(int) s >> SHIFT][(int) s & IN_PIECE];
+            long firstAbove = t >= ONES ? t : firsts[(int) t >> SHIFT][(int) t & IN_PIECE];
             if (kind == UNION) {
-                return below(firsts[(int) s], t) && below(seconds[(int) s], t);
+                return below(first, t) && below(seconds[(int) s >> SHIFT][(int) s & IN_PIECE], t);
             }
             if (kindAbove == UNION) {
-                return below(s, firsts[(int) t]) || below(s, seconds[(int) t]);
+                return below(s, firstAbove) || below(s, seconds[(int) t >> SHIFT][(int) t & IN_PIECE]);
             }
             if (kind == ONE) {
                 return t == INT;
             }
             if (kind == NAMED) {
-                long above = firsts[(int) s];
+                long above = first;
                 for (int left = MOST_TYPES; left > 0 && above != ANY && above != t; left--) {
-                    above = firsts[(int) above];
+                    above = firsts[(int) above >> SHIFT][(int) above & IN_PIECE];
                 }
                 return above == t;
             }
             if (kind == JUST && kindAbove == JUST) {
-                return below(firsts[(int) s], firsts[(int) t]) && below(firsts[(int) t], firsts[(int) s]);
+                return below(first, firstAbove) && below(firstAbove, first);
             }
-            return (kind == JUST || kind == BELOW) && kindAbove == BELOW && below(firsts[(int) s], firsts[(int) t]);
+            return (kind == JUST || kind == BELOW) && kindAbove == BELOW && below(first, firstAbove);
         }
 
         private boolean meeting(long s, long t) {
@@ -653,21 +679,21 @@ public final class Worldage {
             if (below(s, t) || below(t, s)) {
                 return true;
             }
-            int kind = s >= ONES ? ONE : kinds[(int) s];
-            int other = t >= ONES ? ONE : kinds[(int) t];
+            int kind = kindOf(s);
+            int other = kindOf(t);
             if (kind == UNION) {
-                return meeting(firsts[(int) s], t) || meeting(seconds[(int) s], t);
+                return meeting(firstOf(s), t) || meeting(secondOf(s), t);
             }
             if (other == UNION) {
-                return meeting(s, firsts[(int) t]) || meeting(s, seconds[(int) t]);
+                return meeting(s, firstOf(t)) || meeting(s, secondOf(t));
             }
             if (kind == BELOW && other == BELOW) {
                 return true;
             }
             if (kind == JUST && other == BELOW) {
-                return below(firsts[(int) s], firsts[(int) t]);
+                return below(firstOf(s), firstOf(t));
             }
-            return kind == BELOW && other == JUST && below(firsts[(int) t], firsts[(int) s]);
+            return kind == BELOW && other == JUST && below(firstOf(t), firstOf(s));
         }
 
         /**
@@ -681,8 +707,8 @@ public final class Worldage {
             if (below(type, NONE)) {
                 return type;
             }
-            long part = hollowPart(firsts[(int) type]);
-            return part >= 0 ? part : hollowPart(seconds[(int) type]);
+            long part = hollowPart(firstOf(type));
+            return part >= 0 ? part : hollowPart(secondOf(type));
         }
 
         long join(long s, long t) {
@@ -702,8 +728,7 @@ public final class Worldage {
             if (t >= ONES) {
                 return type == INT && n == intOf(t);
             }
-            int id = (int) t;
-            if (kinds[id] == UNION && (isValueOf(type, n, firsts[id]) || isValueOf(type, n, seconds[id]))) {
+            if (kindOf(t) == UNION && (isValueOf(type, n, firstOf(t)) || isValueOf(type, n, secondOf(t)))) {
                 return true;
             }
             return below(type, t);
@@ -717,8 +742,8 @@ public final class Worldage {
             if (kind != UNION) {
                 return type;
             }
-            long first = firsts[(int) type];
-            long second = seconds[(int) type];
+            long first = firstOf(type);
+            long second = secondOf(type);
             long wideFirst = widened(first);
             long wideSecond = widened(second);
             // Parts are joined only where one has become another: a join can let go of one of them.
@@ -742,7 +767,7 @@ public final class Worldage {
         }
 
         long unboxed(long type) {
-            return type == NONE ? NONE : isBox(type) ? firsts[(int) type] : ANY;
+            return type == NONE ? NONE : isBox(type) ? firstOf(type) : ANY;
         }
 
         long worked(int kind, long s, long t) {
