@@ -1305,6 +1305,8 @@ public final class Worldage {
         private boolean isEnded;
         private boolean isEachCallAny;
 
+        /** What the nodes of the bodies have that are under way, one within the other. */
+        private final long[] known = new long[MOST_WITHIN * MOST_NODES];
         private final int[] metStates = new int[MOST_NODES];
         private final long[] metFirsts = new long[MOST_NODES];
         private final long[] metSeconds = new long[MOST_NODES];
@@ -1416,14 +1418,28 @@ public final class Worldage {
             long type = Types.NONE;
             for (int method = 0; method < book.size; method++) {
                 if ((possible >>> method & 1L) != 0) {
-                    type = types.join(type, nodeType(book.bodies[method], book.narrowedFirst(method, first),
+                    int body = book.bodies[method];
+                    Arrays.fill(known, within * MOST_NODES, within * MOST_NODES + body + 1, MISSING);
+                    type = types.join(type, nodeType(body, book.narrowedFirst(method, first),
                             book.narrowedSecond(method, second), within));
                 }
             }
             return type;
         }
 
+        /**
+         * Returns what a node has. In one body it has the same each time: a call in it is found once, and one that is
+         * being found or lies too deep stays so until the body is done.
+         */
         private long nodeType(int node, long first, long second, int within) {
+            int place = within * MOST_NODES + node;
+            if (known[place] == MISSING) {
+                known[place] = freshType(node, first, second, within);
+            }
+            return known[place];
+        }
+
+        private long freshType(int node, long first, long second, int within) {
             int kind = nodes.kinds[node];
             int a = nodes.as[node];
             int b = nodes.bs[node];
