@@ -60,6 +60,7 @@ public final class IsSameTest {
         CHECK.throwing("1001 steps", IllegalArgumentException.class, () -> x.isSame(0, 1, NO, 1001));
         beginningD();
         stepsAllowed();
+        roundsNotEnded();
         CHECK.end();
     }
 
@@ -107,5 +108,35 @@ public final class IsSameTest {
         CHECK.due("codes", 3, x.codes());
         CHECK.due("no steps of these", 0, x.allSteps());
         CHECK.due("nor of the last run", 0, x.steps());
+    }
+
+    /**
+     * "With code or without, each call does what choosing by its age does", also if the rounds did not end: what they
+     * found for a call till then is less than what it can have.
+     */
+    private static void roundsNotEnded() {
+        Worldage x = new Worldage();
+        int early = x.named(0, false);
+        int[] kinds = new int[5];
+        int a = x.node('a', 0, 0, 0);
+        int one = x.node('n', 1, 0, 0);
+        for (int i = 0; i < 5; i++) {
+            kinds[i] = x.named(i < 4 ? early : 0, true);
+        }
+        for (int i = 0; i < 5; i++) {
+            x.define(x.prepare(1, kinds[i], -1, x.node('o', kinds[Math.min(i + 1, 4)], one, 0)));
+        }
+        int before = x.node('c', 0, x.node('-', a, one, 0), -1);
+        int next = x.node('c', 1, before, -1);
+        x.define(x.prepare(0, 1, -1, x.node('?', a, next, x.node('o', kinds[0], one, 0))));
+        x.define(x.prepare(3, early, -1, one));
+        x.define(x.prepare(3, kinds[4], -1, x.node('n', 2, 0, 0)));
+        x.define(x.prepare(2, 1, -1, x.node('c', 3, x.node('c', 0, a, -1), -1)));
+        for (int steps = 0; steps < 7; steps++) {
+            CHECK.due("after " + steps + " steps", true, x.isSame(2, steps, NO, 1000));
+            CHECK.due("run", 'v', x.run(2, steps, NO, 1000, true));
+            CHECK.due("which it is after " + steps, steps < 4 ? 1 : 2, x.result());
+        }
+        CHECK.due("the call of function 0 alone", 1, x.fixed(0));
     }
 }

@@ -34,11 +34,20 @@ public final class ModelTest {
         for (long seed = from; seed <= to && wrong < 3; seed++) {
             ModelTest test = new ModelTest(seed, check);
             test.go();
+            test.replay();
             wrong += test.isWrong ? 1 : 0;
         }
         System.out.println(answers + " answers; ends of runs: v " + ends['v'] + " n " + ends['n'] + " a " + ends['a']
                 + " t " + ends['t'] + " e " + ends['e'] + " s " + ends['s']);
         check.end();
+    }
+
+    private void replay() {
+        String other = isWrong ? null : Replay.firstOther(told.toString());
+        if (other != null) {
+            isWrong = true;
+            check.tell("seed " + seed + ": " + other);
+        }
     }
 
     private static String told(Answer answer) {
@@ -77,6 +86,14 @@ public final class ModelTest {
     }
 
     private void go() {
+        if (seed % 10 == 0) {
+            goRound();
+        } else {
+            goAnyWay();
+        }
+    }
+
+    private void goAnyWay() {
         int style = upTo(4);
         int typeCalls = 4 + upTo(style == 0 ? 60 : 14);
         for (int i = 0; i < typeCalls; i++) {
@@ -106,6 +123,130 @@ public final class ModelTest {
                 callByChance();
             }
         }
+    }
+
+    /**
+     * Functions 0 to 2 call themselves with less, and what they have goes on through 3 and 4, from one kind of objects
+     * to the next; 5 tells kinds from each other. So what is found for a call can grow for more rounds than there are.
+     */
+    private void goRound() {
+        int[] kinds = makeKinds(4 + upTo(4));
+        node('a', 0, 0, 0);
+        node('n', 1, 0, 0);
+        node('-', 0, 1, 0);
+        int[] objects = new int[kinds.length];
+        for (int i = 0; i < kinds.length; i++) {
+            node('o', kinds[i], 1, 0);
+            objects[i] = last();
+        }
+        for (int i = 0; i < kinds.length; i++) {
+            makeStep(3, kinds[i], objects, i + 1);
+            makeStep(4, kinds[i], objects, i + 1 + upTo(2));
+            if (isChance(30)) {
+                method(5, kinds[i], upTo(3));
+            }
+        }
+        method(5, isChance(80) ? 3 : upTo(y.types.size()), 1);
+        for (int function = 0; function < 3; function++) {
+            makeRound(function, objects);
+        }
+        for (int i = 0; i < 2; i++) {
+            node('c', upTo(3), 0, -1);
+            through(1 + upTo(3), 5);
+            method(upTo(3), 1, last());
+        }
+        for (int i = 0; i < 30 && !isWrong; i++) {
+            askRound();
+        }
+    }
+
+    /** Most of them have the parent 3, the last ones do not. */
+    private int[] makeKinds(int count) {
+        int[] kinds = new int[count];
+        same("named(0,false)", () -> x.named(0, false), () -> y.named(0, false));
+        for (int i = 0; i < count; i++) {
+            int parent = isChance(90) == i < count - 2 ? 3 : 0;
+            kinds[i] = y.types.size();
+            same("named(" + parent + ",true)", () -> x.named(parent, true), () -> y.named(parent, true));
+        }
+        for (int i = upTo(6); i > 0; i--) {
+            makeType();
+        }
+        return kinds;
+    }
+
+    private void makeStep(int function, int kind, int[] objects, int next) {
+        int to = isChance(95) ? objects[Math.min(next, objects.length - 1)] : aNode();
+        if (isChance(5)) {
+            node('x', to, 0, 0);
+            to = last();
+        }
+        if (isChance(95)) {
+            method(function, kind, to);
+        }
+    }
+
+    private void makeRound(int function, int[] objects) {
+        int body = objects[isChance(70) ? 0 : upTo(objects.length)];
+        for (int i = upTo(2); i >= 0; i--) {
+            node('c', isChance(70) ? function : upTo(3), 2, -1);
+            through(1 + upTo(2), 3 + upTo(2));
+            int done = last();
+            if (isChance(30)) {
+                node('y', done, body, 0);
+                done = last();
+            }
+            node('?', isChance(80) ? 0 : upTo(3), done, body);
+            body = last();
+        }
+        method(function, isChance(80) ? 1 : 0, body);
+    }
+
+    private void through(int steps, int function) {
+        for (int i = 0; i < steps; i++) {
+            int n = last();
+            if (isChance(85)) {
+                node('c', function, n, -1);
+            } else {
+                node(isChance(50) ? 'x' : 'u', n, 0, 0);
+            }
+        }
+    }
+
+    private void method(int function, int first, int body) {
+        int m = y.methods.size();
+        same("prepare(" + function + "," + first + ",-1," + body + ")", () -> x.prepare(function, first, -1, body),
+                () -> y.prepare(function, first, -1, body));
+        same("define(" + m + ")", () -> x.define(m), () -> y.define(m));
+    }
+
+    private void askRound() {
+        int function = upTo(3);
+        int n = upTo(8);
+        int type = isChance(50) ? 1 : upTo(y.types.size());
+        int m = aMethod();
+        switch (upTo(6)) {
+            case 0: case 1:
+                isSame(function, n, NO, 1000);
+                break;
+            case 2: case 3:
+                run(function, n, NO, 1000, isChance(70));
+                break;
+            case 4:
+                if (isChance(20)) {
+                    same("takeAway(" + m + ")", () -> x.takeAway(m), () -> y.takeAway(m));
+                } else if (isChance(30)) {
+                    same("define(" + m + ")", () -> x.define(m), () -> y.define(m));
+                }
+                break;
+            default:
+                same("trim(" + function + "," + type + ",-1)", () -> x.trim(function, type, -1),
+                        () -> y.trim(function, type, -1));
+                same("infer(" + function + "," + type + ",-1)", () -> x.infer(function, type, -1),
+                        () -> y.infer(function, type, -1));
+        }
+        askCodes();
+        askCodes();
     }
 
     /** Lets a method come or go, and needs code after that. */
@@ -355,10 +496,10 @@ public final class ModelTest {
     }
 
     private void isSame() {
-        int function = aFunction();
-        int first = anInt();
-        int second = isChance(50) ? NO : anInt();
-        int limit = aLimit();
+        isSame(aFunction(), anInt(), isChance(50) ? NO : anInt(), aLimit());
+    }
+
+    private void isSame(int function, int first, int second, int limit) {
         String is = same("isSame(" + function + "," + first + "," + second + "," + limit + ")",
                 () -> x.isSame(function, first, second, limit) ? 1 : 0,
                 () -> y.isSame(function, first, second, limit) ? 1 : 0);
@@ -369,11 +510,10 @@ public final class ModelTest {
     }
 
     private void run() {
-        int function = aFunction();
-        int first = anInt();
-        int second = isChance(50) ? NO : anInt();
-        int limit = aLimit();
-        boolean isByCode = isChance(65);
+        run(aFunction(), anInt(), isChance(50) ? NO : anInt(), aLimit(), isChance(65));
+    }
+
+    private void run(int function, int first, int second, int limit, boolean isByCode) {
         Model.T type = y.inferred(new Model.Call(function, y.ints, second == NO ? null : y.ints));
         Model.T narrow = y.inferred(new Model.Call(function, one(first), second == NO ? null : one(second)));
         String end = same("run(" + function + "," + first + "," + second + "," + limit + "," + isByCode + ")",
