@@ -10,6 +10,9 @@ public final class RoomTest {
         typesOfTrim(2);
         typesOfTrim(4);
         manyTypesInOneRun();
+        for (int way = 0; way < 4; way++) {
+            valuesOfOneRun(way);
+        }
         sharedNodes();
         manyAges();
         CHECK.end();
@@ -235,6 +238,44 @@ public final class RoomTest {
         CHECK.due("the int is none of those met", 0, x.stale());
         x.define(x.prepare(0, x.ofInt(330000011), 1, a));
         CHECK.due("that is met within the tenth call", 1, x.stale());
+    }
+
+    /**
+     * What a run has at hand stays what it is while code is made that needs many types: an operand, the two arguments of
+     * a call that has no code as its age is not the latest, the argument of a call for which code is made.
+     */
+    private static void valuesOfOneRun(int way) {
+        Worldage x = withManyTypes();
+        int dog = 3;
+        int cat = x.named(0, true);
+        int a = 0;
+        int b = 1;
+        int one = x.node('n', 1, 0, 0);
+        int both = one;
+        for (int function = 3; function < 5; function++) {
+            int many = x.node('c', 5, x.node('n', 1000000 * function, 0, 0), a);
+            int others = x.node('c', 5, x.node('n', 10000000 * function, 0, 0), a);
+            x.define(x.prepare(function, 1, -1, x.node('?', a, one, x.node('+', many, others, 0))));
+            both = x.node('+', both, x.node('l', function, one, -1), 0);
+        }
+        int isDog = way == 3 ? both : a;
+        int pet = x.node('?', isDog, x.node('o', dog, a, 0), x.node('o', cat, a, 0));
+        int box = x.node('x', x.node('x', pet, 0, 0), 0, 0);
+        int late = x.node('d', x.prepare(0, 1, 1, a), 0, 0);
+        int[] calls = {x.node('c', 2, box, both), x.node('c', 2, box, late), x.node('c', 2, late, box),
+            x.node('c', 2, box, -1)};
+        int more = x.node('c', 5, x.node('n', 5000000, 0, 0), both);
+        int[] bodies = {a, x.node('?', both, a, one), x.node('?', both, b, one), x.node('y', a, more, 0)};
+        x.define(x.prepare(1, 1, -1, calls[way]));
+        x.define(x.prepare(2, 0, way == 3 ? -1 : 0, bodies[way]));
+        CHECK.due("run " + way, 'v', x.run(1, 7, NO, 99, true));
+        CHECK.due("codes of 1, 3 and 4, and of 2", way == 1 || way == 2 ? 3 : 4, x.codes());
+        CHECK.due("the int, " + way, 7, x.result());
+        int type = x.resultType();
+        CHECK.due("a box of a box of a dog, " + way, x.box(x.box(dog)), type);
+        int met = x.box(x.box(cat));
+        x.define(x.prepare(2, way == 2 ? 0 : met, way == 3 ? -1 : way == 2 ? met : 0, a));
+        CHECK.due("the edge of 1 has boxes of boxes of both, " + way, 1, x.stale());
     }
 
     /** Nodes that are shared at each depth, so that the body is a great tree. */
