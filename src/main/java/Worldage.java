@@ -1349,6 +1349,11 @@ public final class Worldage {
             return isEnded;
         }
 
+        /** Returns how many calls were found in the rounds, at most 1,000,000. */
+        int countFound() {
+            return found.size;
+        }
+
         /** Appends the calls that the last round found. */
         void appendFound(CallTable others) {
             for (int call = 0; call < found.size; call++) {
@@ -2046,7 +2051,9 @@ public final class Worldage {
     /** Counts the methods that can be reached from a call. */
     private static final class Trimmer {
         private static final int MOST_REACHED = 1000000;
-        private static final int MANY = 256;
+        /** As each call that is reached finds calls of its own, these are counted together too. */
+        private static final int MOST_FOUND = 1 << 24;
+        private static final int MANY = 16;
 
         private final Types types;
         private final Nodes nodes;
@@ -2068,18 +2075,20 @@ public final class Worldage {
         /** Returns the number of methods, -1 if it cannot be told. */
         int countFrom(int function, long first, long second) {
             long methods = 0;
+            int foundInAll = 0;
             reached.clear();
             hollow = NONE_GIVEN;
             if (first != Types.NONE && second != Types.NONE) {
                 addOnce(function, first, second);
             }
-            for (int index = 0; index < reached.size && index < MOST_REACHED; index++) {
+            for (int index = 0; index < reached.size && index < MOST_REACHED && foundInAll < MOST_FOUND; index++) {
                 int method = book.surely(reached.functionOf(index), reached.firstOf(index), reached.secondOf(index));
                 if (method < 0) {
                     return -1;
                 }
                 methods |= 1L << method;
                 inferring.settle(reached.functionOf(index), reached.firstOf(index), reached.secondOf(index));
+                foundInAll += inferring.countFound();
                 if (!addCalls(book.bodies[method])) {
                     return -1;
                 }

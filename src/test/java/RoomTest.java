@@ -44,6 +44,7 @@ public final class RoomTest {
         for (int i = 0; i < 5; i++) {
             CHECK.due("as many each time", 1, y.infer(0, y.ofInt(i), -1));
         }
+        CHECK.due("what is reached by ever new ints", 1, y.trim(0, y.ofInt(3), -1));
         CHECK.due("types", 8, y.named(0, true));
         CHECK.due("one more", 9, y.box(8));
         CHECK.due("run", 's', y.run(0, 1, NO, 1000, true));
