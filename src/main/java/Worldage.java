@@ -800,6 +800,7 @@ public final class Worldage {
         final int[] bs = new int[MOST_NODES];
         final int[] cs = new int[MOST_NODES];
         private final int[] depths = new int[MOST_NODES];
+        private final boolean[] areLate = new boolean[MOST_NODES];
         private final int[] reached = new int[MOST_NODES];
         int size;
 
@@ -892,6 +893,8 @@ public final class Worldage {
             bs[node] = b;
             cs[node] = c;
             depths[node] = depth;
+            areLate[node] = isLate(kind) || hasNodeA(kind) && areLate[a] || hasNodeB(kind) && areLate[b]
+                    || hasNodeC(kind, c) && areLate[c];
             return node;
         }
 
@@ -933,8 +936,13 @@ public final class Worldage {
             return reached[node] != 0 && kinds[node] == 'c';
         }
 
-        boolean isReachedLate(int node) {
-            return reached[node] != 0 && (kinds[node] == 'l' || kinds[node] == 'd');
+        private static boolean isLate(int kind) {
+            return kind == 'l' || kind == 'd';
+        }
+
+        /** Tells whether a body has a node l or d. */
+        boolean hasLate(int body) {
+            return areLate[body];
         }
     }
 
@@ -1289,6 +1297,14 @@ public final class Worldage {
         private static final int PLACES = ROUND + 3;
         private static final long OPEN = -1;
         private static final long MISSING = -2;
+        /** The result of a call that is being found and was asked for meanwhile. */
+        private static final long ASKED = -3;
+
+        /** What each call counts as: what is found for it, or, beside 0, what is not known. */
+        private static final long FOUND = -4;
+        private static final long UNKNOWN = -5;
+        /** The round that is made ahead of the others, and is as the last one if no call in it hangs on itself. */
+        private static final int ROUND_ALONE = 0;
 
         private static final int NOT_MET = 0;
         private static final int MET_ALIKE = 1;
@@ -1301,9 +1317,12 @@ public final class Worldage {
         private int round;
         private int countOfRound;
         private boolean isAsBefore;
+        /** Tells that each call that was asked for while it was being found is what it was taken for. */
+        private boolean isFirm;
         private boolean isFull;
         private boolean isEnded;
-        private boolean isEachCallAny;
+        private long eachCall = FOUND;
+        private boolean isHanging;
 
         /** What the nodes of the bodies have that are under way, one within the other. */
         private final long[] known = new long[MOST_WITHIN * MOST_NODES];
@@ -1317,32 +1336,52 @@ public final class Worldage {
             this.book = book;
         }
 
-        /** Returns what the call can have; what was met and found then can be asked for until the next time. */
+        /**
+         * Returns what the call can have; what was met and found then can be asked for until the next time. Rounds
+         * behind the first one differ by nothing but what a call is taken for that is being found: if none is asked for
+         * then, or each one is what it was taken for, the next round is the same.
+         */
         long settle(int function, long first, long second) {
             long type = Types.ANY;
             types.isInferring = true;
             isFull = false;
             isEnded = false;
-            found.clear();
-            countOfRound = 0;
-            for (int rounds = 1; rounds <= MOST_ROUNDS && !isEnded && !isFull; rounds++) {
+            for (int rounds = ROUND_ALONE; rounds <= MOST_ROUNDS && !isEnded && !isFull; rounds++) {
                 round = rounds;
+                if (rounds <= 1) {
+                    found.clear();
+                    countOfRound = 0;
+                }
                 int countBefore = countOfRound;
                 countOfRound = 0;
                 isAsBefore = true;
+                isFirm = true;
                 Arrays.fill(metStates, NOT_MET);
                 type = callType(function, first, second, 0);
-                isEnded = !isFull && isAsBefore && countOfRound == countBefore;
+                boolean isNextAlike = isFirm && rounds != 1 && rounds < MOST_ROUNDS;
+                isEnded = !isFull && (isNextAlike || isAsBefore && countOfRound == countBefore);
             }
             if (!isEnded) {
                 type = Types.ANY;
                 Arrays.fill(metStates, NOT_MET);
-                isEachCallAny = true;
+                eachCall = Types.ANY;
                 bodiesType(function, first, second, 0);
-                isEachCallAny = false;
+                eachCall = FOUND;
             }
             types.isInferring = false;
             return type;
+        }
+
+        /** Meets the nodes c of the call's own bodies; tells whether this did not hang on what any call has. */
+        boolean meetAlone(int function, long first, long second) {
+            types.isInferring = true;
+            isHanging = false;
+            Arrays.fill(metStates, NOT_MET);
+            eachCall = UNKNOWN;
+            bodiesType(function, first, second, 0);
+            eachCall = FOUND;
+            types.isInferring = false;
+            return !isHanging;
         }
 
         boolean hasEnded() {
@@ -1386,10 +1425,12 @@ public final class Worldage {
         private long callType(int function, long first, long second, int within) {
             int call = found.find(function, first, second);
             if (call >= 0 && found.at(call, ROUND) == round) {
-                long result = found.at(call, RESULT) != OPEN ? found.at(call, RESULT) : found.at(call, BEFORE);
-                return result == MISSING ? Types.NONE : result;
+                return resultOf(call);
             }
             if (within >= MOST_WITHIN) {
+                return Types.ANY;
+            }
+            if (round == ROUND_ALONE && !isFirm) {
                 return Types.ANY;
             }
             if (isFull || (call < 0 && found.isFull())) {
@@ -1403,12 +1444,28 @@ public final class Worldage {
             open(call, before);
             types.spread();
             long type = bodiesType(function, first, second, within);
-            if (round > 1 && types.isOneInt(type)) {
+            if (round != 1 && types.isOneInt(type)) {
                 type = Types.INT;
             }
+            isFirm &= found.at(call, RESULT) == OPEN || (type == taken(before) && round != ROUND_ALONE);
             found.set(call, RESULT, type);
             isAsBefore &= before == type;
             return type;
+        }
+
+        private long resultOf(int call) {
+            long result = found.at(call, RESULT);
+            if (result != OPEN && result != ASKED) {
+                return result;
+            }
+            found.set(call, RESULT, ASKED);
+            isFirm &= round != ROUND_ALONE;
+            return taken(found.at(call, BEFORE));
+        }
+
+        /** Returns what a call is taken for while it is being found. */
+        private static long taken(long before) {
+            return before == MISSING ? Types.NONE : before;
         }
 
         private void open(int call, long before) {
@@ -1425,7 +1482,7 @@ public final class Worldage {
                 if ((possible >>> method & 1L) != 0) {
                     int body = book.bodies[method];
                     Arrays.fill(known, within * MOST_NODES, within * MOST_NODES + body + 1, MISSING);
-                    type = types.join(type, nodeType(body, book.narrowedFirst(method, first),
+                    type = joined(type, nodeType(body, book.narrowedFirst(method, first),
                             book.narrowedSecond(method, second), within));
                 }
             }
@@ -1473,23 +1530,33 @@ public final class Worldage {
                     return Types.INT;
                 case 'x':
                     long content = nodeType(a, first, second, within);
-                    return types.boxed(content, types.widened(content));
+                    return content == UNKNOWN ? UNKNOWN : types.boxed(content, types.widened(content));
                 case 'u':
-                    return types.unboxed(nodeType(a, first, second, within));
+                    long box = nodeType(a, first, second, within);
+                    return box == UNKNOWN ? UNKNOWN : types.unboxed(box);
                 case 't':
                     nodeType(a, first, second, within);
                     return Types.NONE;
                 case 'y':
                     long tried = nodeType(a, first, second, within);
-                    return types.join(tried, nodeType(b, first, second, within));
+                    return joined(tried, nodeType(b, first, second, within));
                 default:
                     long left = nodeType(a, first, second, within);
-                    return types.worked(kind, left, nodeType(b, first, second, within));
+                    long right = nodeType(b, first, second, within);
+                    return left == UNKNOWN || right == UNKNOWN ? UNKNOWN : types.worked(kind, left, right);
             }
+        }
+
+        private long joined(long s, long t) {
+            return s == UNKNOWN || t == UNKNOWN ? UNKNOWN : types.join(s, t);
         }
 
         private long branchType(int node, long first, long second, int within) {
             long condition = nodeType(nodes.as[node], first, second, within);
+            if (condition == UNKNOWN) {
+                isHanging = true;
+                return UNKNOWN;
+            }
             if (types.isOneInt(condition)) {
                 int part = types.intOf(condition) != 0 ? nodes.bs[node] : nodes.cs[node];
                 return nodeType(part, first, second, within);
@@ -1498,7 +1565,7 @@ public final class Worldage {
                 return Types.NONE;
             }
             long type = nodeType(nodes.bs[node], first, second, within);
-            return types.join(type, nodeType(nodes.cs[node], first, second, within));
+            return joined(type, nodeType(nodes.cs[node], first, second, within));
         }
 
         private long calledType(int node, long first, long second, int within) {
@@ -1511,8 +1578,9 @@ public final class Worldage {
             if (callFirst == Types.NONE || callSecond == Types.NONE) {
                 return Types.NONE;
             }
-            if (isEachCallAny) {
-                return Types.ANY;
+            if (eachCall != FOUND) {
+                isHanging |= callFirst == UNKNOWN || callSecond == UNKNOWN;
+                return eachCall;
             }
             return callType(nodes.as[node], callFirst, callSecond, within + 1);
         }
@@ -2061,6 +2129,8 @@ public final class Worldage {
         private final Inferring inferring;
         private final Codes codes;
         private final CallTable reached = new CallTable(MOST_REACHED, CallTable.PLACES);
+        /** The methods that were reached, a bit for each. */
+        private long methods;
         /** A hollow part of a type of an argument, -1 as long as none was reached. */
         private long hollow;
 
@@ -2074,55 +2144,72 @@ public final class Worldage {
 
         /** Returns the number of methods, -1 if it cannot be told. */
         int countFrom(int function, long first, long second) {
-            long methods = 0;
-            int foundInAll = 0;
+            long foundInAll = 0;
+            methods = 0;
             reached.clear();
             hollow = NONE_GIVEN;
-            if (first != Types.NONE && second != Types.NONE) {
-                addOnce(function, first, second);
+            if (first != Types.NONE && second != Types.NONE && !reach(function, first, second)) {
+                return -1;
             }
             for (int index = 0; index < reached.size && index < MOST_REACHED && foundInAll < MOST_FOUND; index++) {
                 int method = book.surely(reached.functionOf(index), reached.firstOf(index), reached.secondOf(index));
-                if (method < 0) {
-                    return -1;
-                }
-                methods |= 1L << method;
-                inferring.settle(reached.functionOf(index), reached.firstOf(index), reached.secondOf(index));
-                foundInAll += inferring.countFound();
-                if (!addCalls(book.bodies[method])) {
+                foundInAll += meetCalls(index);
+                if (method < 0 || !reachCalls(book.bodies[method])) {
                     return -1;
                 }
                 sweepTypes();
                 // Types of one int can make a chain of calls that has no end.
-                if (index >= MANY && (index & (index - 1)) == 0 && isClosed(methods)) {
+                if (index >= MANY && (index & (index - 1)) == 0 && isClosed()) {
                     break;
                 }
             }
             return Long.bitCount(methods);
         }
 
-        /** Adds the calls of a body that has just been settled; tells whether each of its nodes lets it be told. */
-        private boolean addCalls(int body) {
+        /** Meets the nodes c of a call that was reached, and returns how many calls had to be found for that. */
+        private int meetCalls(int index) {
+            int function = reached.functionOf(index);
+            long first = reached.firstOf(index);
+            long second = reached.secondOf(index);
+            if (inferring.meetAlone(function, first, second)) {
+                return 0;
+            }
+            inferring.settle(function, first, second);
+            return inferring.countFound();
+        }
+
+        /** Reaches the calls of a body whose nodes c were just met; tells whether each one has a fixed method. */
+        private boolean reachCalls(int body) {
             nodes.reach(body);
             for (int node = 0; node <= body; node++) {
-                if (nodes.isReachedLate(node)) {
-                    return false;
-                }
                 if (nodes.isReachedCall(node) && inferring.isMetWithValues(node)) {
-                    if (!inferring.isMetAlike(node)) {
+                    if (!inferring.isMetAlike(node)
+                            || !reach(nodes.as[node], inferring.metFirst(node), inferring.metSecond(node))) {
                         return false;
                     }
-                    addOnce(nodes.as[node], inferring.metFirst(node), inferring.metSecond(node));
                 }
             }
             return true;
         }
 
-        private void addOnce(int function, long first, long second) {
-            if (reached.find(function, first, second) < 0 && !reached.isFull()) {
-                reached.add(function, first, second);
-                hollow = Math.max(hollow, Math.max(types.hollowPart(first), types.hollowPart(second)));
+        /**
+         * Reaches a call, also if there is no more room to go on from it; tells whether it has a fixed method, and one
+         * whose body lets it be told what can be reached.
+         */
+        private boolean reach(int function, long first, long second) {
+            if (reached.find(function, first, second) >= 0) {
+                return true;
             }
+            int method = book.surely(function, first, second);
+            if (method < 0 || nodes.hasLate(book.bodies[method])) {
+                return false;
+            }
+            methods |= 1L << method;
+            hollow = Math.max(hollow, Math.max(types.hollowPart(first), types.hollowPart(second)));
+            if (!reached.isFull()) {
+                reached.add(function, first, second);
+            }
+            return true;
         }
 
         private void sweepTypes() {
@@ -2135,12 +2222,12 @@ public final class Worldage {
         }
 
         /** Tells whether all calls of these methods' bodies choose one of them, whichever calls these were made for. */
-        private boolean isClosed(long methods) {
+        private boolean isClosed() {
             for (int method = 0; method < book.size; method++) {
                 int body = (methods >>> method & 1L) != 0 ? book.bodies[method] : -1;
                 nodes.reach(body);
                 for (int node = 0; node <= body; node++) {
-                    if (nodes.isReachedCall(node) && !isClosedCall(node, method, methods)) {
+                    if (nodes.isReachedCall(node) && !isClosedCall(node, method)) {
                         return false;
                     }
                 }
@@ -2152,7 +2239,7 @@ public final class Worldage {
          * What meets a type meets each one above it too, if it has no hollow part: with one it can be below a type and
          * meet others than this. So each call is also looked at with hollow types as what its arguments can have.
          */
-        private boolean isClosedCall(int node, int method, long methods) {
+        private boolean isClosedCall(int node, int method) {
             int function = nodes.as[node];
             int c = nodes.cs[node];
             for (int way = 0; way < 4; way++) {
