@@ -802,6 +802,7 @@ public final class Worldage {
         private final int[] depths = new int[MOST_NODES];
         private final boolean[] areLate = new boolean[MOST_NODES];
         private final int[] reached = new int[MOST_NODES];
+        private int reachedBody = -1;
         int size;
 
         boolean isKind(int kind) {
@@ -913,6 +914,10 @@ public final class Worldage {
 
         /** Marks all nodes of a body; operands are always told ahead of the node that has them. */
         void reach(int body) {
+            if (body == reachedBody) {
+                return;
+            }
+            reachedBody = body;
             Arrays.fill(reached, 0);
             if (body >= 0) {
                 reached[body] = 1;
@@ -1127,13 +1132,8 @@ public final class Worldage {
             return -1;
         }
 
-        long firstOf(int method) {
-            return firsts[method];
-        }
-
-        /** Returns the type of the second parameter, or -1. */
-        long secondOf(int method) {
-            return seconds[method];
+        long parameterOf(int method, int place) {
+            return place == 0 ? firsts[method] : seconds[method];
         }
 
         long narrowedFirst(int method, long first) {
@@ -1375,6 +1375,7 @@ public final class Worldage {
         /** Meets the nodes c of the call's own bodies; tells whether this did not hang on what any call has. */
         boolean meetAlone(int function, long first, long second) {
             types.isInferring = true;
+            types.spread();
             isHanging = false;
             Arrays.fill(metStates, NOT_MET);
             eachCall = UNKNOWN;
@@ -1407,7 +1408,11 @@ public final class Worldage {
         }
 
         boolean isMetWithValues(int node) {
-            return isMet(node) && metFirsts[node] != Types.NONE && metSeconds[node] != Types.NONE;
+            return isMet(node) && isOfValues(metFirsts[node]) && isOfValues(metSeconds[node]);
+        }
+
+        private static boolean isOfValues(long type) {
+            return type != Types.NONE && type != UNKNOWN;
         }
 
         boolean isMetAlike(int node) {
@@ -1447,7 +1452,7 @@ public final class Worldage {
             if (round != 1 && types.isOneInt(type)) {
                 type = Types.INT;
             }
-            isFirm &= found.at(call, RESULT) == OPEN || (type == taken(before) && round != ROUND_ALONE);
+            isFirm &= found.at(call, RESULT) == OPEN || type == taken(before);
             found.set(call, RESULT, type);
             isAsBefore &= before == type;
             return type;
@@ -2119,9 +2124,13 @@ public final class Worldage {
     /** Counts the methods that can be reached from a call. */
     private static final class Trimmer {
         private static final int MOST_REACHED = 1000000;
-        /** As each call that is reached finds calls of its own, these are counted together too. */
-        private static final int MOST_FOUND = 1 << 24;
+        /** How much may be found for calls while there are others for which nothing needs to be found. */
+        private static final int FOUND_AT_FIRST = 1 << 16;
+        private static final int FOUND_A_CALL = 16;
         private static final int MANY = 16;
+        /** Types are joined in so many passes; then those of the parameters are taken, once for each at most. */
+        private static final int JOINING_PASSES = 4;
+        private static final int MOST_PASSES = JOINING_PASSES + 2 * MOST_METHODS + 1;
 
         private final Types types;
         private final Nodes nodes;
@@ -2134,6 +2143,12 @@ public final class Worldage {
         /** A hollow part of a type of an argument, -1 as long as none was reached. */
         private long hollow;
 
+        /** Methods, a bit for each, with types above all that their arguments can have, and how deep these can be. */
+        private long methodsAbove;
+        private final long[] above = new long[2 * MOST_METHODS];
+        private final int[] depthsAbove = new int[2 * MOST_METHODS];
+        private boolean isWider;
+
         Trimmer(Types types, Nodes nodes, Book book, Inferring inferring, Codes codes) {
             this.types = types;
             this.nodes = nodes;
@@ -2142,35 +2157,56 @@ public final class Worldage {
             this.codes = codes;
         }
 
-        /** Returns the number of methods, -1 if it cannot be told. */
+        /**
+         * Returns the number of methods, -1 if it cannot be told. What is met of a body without what any call has is
+         * met first, for all calls; what hangs on that can need much, and waits as long as there are others.
+         */
         int countFrom(int function, long first, long second) {
-            long foundInAll = 0;
             methods = 0;
-            reached.clear();
             hollow = NONE_GIVEN;
+            reached.clear();
             if (first != Types.NONE && second != Types.NONE && !reach(function, first, second)) {
                 return -1;
             }
-            for (int index = 0; index < reached.size && index < MOST_REACHED && foundInAll < MOST_FOUND; index++) {
-                int method = book.surely(reached.functionOf(index), reached.firstOf(index), reached.secondOf(index));
-                foundInAll += meetCalls(index);
-                if (method < 0 || !reachCalls(book.bodies[method])) {
-                    return -1;
-                }
-                sweepTypes();
-                // Types of one int can make a chain of calls that has no end.
-                if (index >= MANY && (index & (index - 1)) == 0 && isClosed()) {
+            int met = 0;
+            int settled = 0;
+            long found = 0;
+            for (int turn = 0; turn < 2 * MOST_REACHED && settled < reached.size; turn++) {
+                boolean isPatient = found <= FOUND_AT_FIRST + (long) FOUND_A_CALL * met;
+                if (settled < met && (isPatient || (met == reached.size && !reached.isFull()))) {
+                    found += settle(settled);
+                    if (!reachCalls(settled)) {
+                        return -1;
+                    }
+                    settled++;
+                } else if (met < reached.size) {
+                    boolean isWhole = meetAlone(met);
+                    if (!reachCalls(met)) {
+                        return -1;
+                    }
+                    settled += isWhole && settled == met ? 1 : 0;
+                    met++;
+                    // Types of one int can make a chain of calls that has no end.
+                    if (met >= MANY && (met & (met - 1)) == 0 && isClosed()) {
+                        break;
+                    }
+                } else {
                     break;
                 }
+                sweepTypes();
             }
             return Long.bitCount(methods);
         }
 
-        /** Meets the nodes c of a call that was reached, and returns how many calls had to be found for that. */
-        private int meetCalls(int index) {
-            int function = reached.functionOf(index);
-            long first = reached.firstOf(index);
-            long second = reached.secondOf(index);
+        private boolean meetAlone(int call) {
+            return inferring.meetAlone(reached.functionOf(call), reached.firstOf(call), reached.secondOf(call));
+        }
+
+        /** Settles a call if what is met in it hangs on what calls have; returns how many were found for that. */
+        private int settle(int call) {
+            int function = reached.functionOf(call);
+            long first = reached.firstOf(call);
+            long second = reached.secondOf(call);
             if (inferring.meetAlone(function, first, second)) {
                 return 0;
             }
@@ -2178,8 +2214,10 @@ public final class Worldage {
             return inferring.countFound();
         }
 
-        /** Reaches the calls of a body whose nodes c were just met; tells whether each one has a fixed method. */
-        private boolean reachCalls(int body) {
+        /** Reaches the calls whose nodes c were just met; tells whether each one has a fixed method. */
+        private boolean reachCalls(int call) {
+            int method = book.surely(reached.functionOf(call), reached.firstOf(call), reached.secondOf(call));
+            int body = method < 0 ? -1 : book.bodies[method];
             nodes.reach(body);
             for (int node = 0; node <= body; node++) {
                 if (nodes.isReachedCall(node) && inferring.isMetWithValues(node)) {
@@ -2221,37 +2259,95 @@ public final class Worldage {
             }
         }
 
-        /** Tells whether all calls of these methods' bodies choose one of them, whichever calls these were made for. */
+        /**
+         * Tells whether no method but those that were reached can be, by types that are above all that arguments can
+         * have, with 1 for each type of one int: beginning with the first call, each call in the bodies has to choose
+         * one of those methods with such types.
+         */
         private boolean isClosed() {
-            for (int method = 0; method < book.size; method++) {
-                int body = (methods >>> method & 1L) != 0 ? book.bodies[method] : -1;
-                nodes.reach(body);
-                for (int node = 0; node <= body; node++) {
-                    if (nodes.isReachedCall(node) && !isClosedCall(node, method)) {
-                        return false;
+            methodsAbove = 0;
+            isWider = true;
+            openFirst();
+            for (int pass = 0; pass < MOST_PASSES && isWider; pass++) {
+                isWider = false;
+                for (int method = 0; method < book.size; method++) {
+                    int body = (methodsAbove >>> method & 1L) != 0 ? book.bodies[method] : -1;
+                    nodes.reach(body);
+                    for (int node = 0; node <= body; node++) {
+                        if (nodes.isReachedCall(node) && !isClosedCall(node, method, pass)) {
+                            return false;
+                        }
                     }
                 }
             }
-            return true;
+            return methodsAbove != 0 && !isWider;
+        }
+
+        private void openFirst() {
+            long first = reached.firstOf(0);
+            long second = reached.secondOf(0);
+            int method = book.surely(reached.functionOf(0), first, second);
+            if (method >= 0) {
+                open(method);
+                widen(method, 0, first, types.depthOf(first), 0);
+                if (second >= 0) {
+                    widen(method, 1, second, types.depthOf(second), 0);
+                }
+            }
         }
 
         /**
          * What meets a type meets each one above it too, if it has no hollow part: with one it can be below a type and
          * meet others than this. So each call is also looked at with hollow types as what its arguments can have.
          */
-        private boolean isClosedCall(int node, int method) {
+        private boolean isClosedCall(int node, int method, int pass) {
             int function = nodes.as[node];
+            int b = nodes.bs[node];
             int c = nodes.cs[node];
             for (int way = 0; way < 4; way++) {
-                long first = typeAbove(nodes.bs[node], method, (way & 1) != 0);
+                long first = typeAbove(b, method, (way & 1) != 0);
                 long second = c < 0 ? NONE_GIVEN : typeAbove(c, method, (way & 2) != 0);
-                int called = book.surely(function, first, second);
-                if (called < 0 || (methods >>> called & 1L) == 0
-                        || book.possible(function, first, second) != 1L << called) {
-                    return false;
+                if (first != Types.NONE && second != Types.NONE) {
+                    int called = book.surely(function, first, second);
+                    if (called < 0 || (methods >>> called & 1L) == 0
+                            || book.possible(function, first, second) != 1L << called) {
+                        return false;
+                    }
+                    open(called);
+                    widen(called, 0, first, depthAbove(b, method), pass);
+                    if (c >= 0) {
+                        widen(called, 1, second, depthAbove(c, method), pass);
+                    }
                 }
             }
             return true;
+        }
+
+        private void open(int method) {
+            if ((methodsAbove >>> method & 1L) == 0) {
+                methodsAbove |= 1L << method;
+                for (int place = 2 * method; place < 2 * method + 2; place++) {
+                    above[place] = Types.NONE;
+                    depthsAbove[place] = 0;
+                }
+                isWider = true;
+            }
+        }
+
+        /** Has the type above an argument of a method be above this one, too. */
+        private void widen(int method, int argument, long type, int depth, int pass) {
+            int place = 2 * method + argument;
+            if (types.below(type, above[place]) && depth <= depthsAbove[place]) {
+                return;
+            }
+            if (pass < JOINING_PASSES) {
+                above[place] = types.join(above[place], types.widened(type));
+                depthsAbove[place] = Math.max(depth, depthsAbove[place]);
+            } else {
+                above[place] = book.parameterOf(method, argument);
+                depthsAbove[place] = Types.DEEPEST;
+            }
+            isWider = true;
         }
 
         /**
@@ -2259,6 +2355,7 @@ public final class Worldage {
          * asked for: only arguments hand it on, as other nodes have none or count as having all values.
          */
         private long typeAbove(int node, int method, boolean isAskedHollow) {
+            int a = nodes.as[node];
             switch (nodes.kinds[node]) {
                 case 'n':
                 case '+':
@@ -2268,16 +2365,55 @@ public final class Worldage {
                 case 'f':
                     return Types.INT;
                 case 'o':
-                    return nodes.as[node];
+                    return a;
                 case 'a':
-                    if (isAskedHollow && hollow >= 0) {
-                        return hollow;
-                    }
-                    long second = book.secondOf(method);
-                    return nodes.as[node] == 0 ? book.firstOf(method) : second < 0 ? Types.ANY : second;
+                    return isAskedHollow && hollow >= 0 ? hollow : above[2 * method + a];
+                case '?':
+                    return joinAbove(nodes.bs[node], nodes.cs[node], method);
+                case 'y':
+                    return joinAbove(a, nodes.bs[node], method);
+                case 't':
+                    return Types.NONE;
                 default:
                     return Types.ANY;
             }
+        }
+
+        /** A join is 0 if it would be too deep; and what hands a hollow part on is not looked for behind it. */
+        private long joinAbove(int node, int other, int method) {
+            if (hollow >= 0 || Math.max(depthAbove(node, method), depthAbove(other, method)) >= Types.DEEPEST) {
+                return Types.ANY;
+            }
+            return types.join(typeAbove(node, method, false), typeAbove(other, method, false));
+        }
+
+        /** Returns how deep what a node can have in the body of a method can be at most. */
+        private int depthAbove(int node, int method) {
+            int a = nodes.as[node];
+            switch (nodes.kinds[node]) {
+                case 'n':
+                case '+':
+                case '-':
+                case '*':
+                case '<':
+                case 'f':
+                    return 1;
+                case 'o':
+                case 't':
+                    return 0;
+                case 'a':
+                    return depthsAbove[2 * method + a];
+                case '?':
+                    return depthJoined(nodes.bs[node], nodes.cs[node], method);
+                case 'y':
+                    return depthJoined(a, nodes.bs[node], method);
+                default:
+                    return Types.DEEPEST;
+            }
+        }
+
+        private int depthJoined(int node, int other, int method) {
+            return Math.min(Types.DEEPEST, 1 + Math.max(depthAbove(node, method), depthAbove(other, method)));
         }
     }
 }
