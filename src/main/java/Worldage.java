@@ -1452,7 +1452,7 @@ public final class Worldage {
             if (round != 1 && types.isOneInt(type)) {
                 type = Types.INT;
             }
-            isFirm &= found.at(call, RESULT) == OPEN || type == taken(before);
+            isFirm &= found.at(call, RESULT) == OPEN || type == takenFor(before);
             found.set(call, RESULT, type);
             isAsBefore &= before == type;
             return type;
@@ -1465,11 +1465,11 @@ public final class Worldage {
             }
             found.set(call, RESULT, ASKED);
             isFirm &= round != ROUND_ALONE;
-            return taken(found.at(call, BEFORE));
+            return takenFor(found.at(call, BEFORE));
         }
 
         /** Returns what a call is taken for while it is being found. */
-        private static long taken(long before) {
+        private static long takenFor(long before) {
             return before == MISSING ? Types.NONE : before;
         }
 

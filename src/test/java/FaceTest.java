@@ -61,7 +61,13 @@ public final class FaceTest {
         for (Class<?> within : face.getDeclaredClasses()) {
             CHECK.due(within.getSimpleName() + " is private and static", Modifier.PRIVATE | Modifier.STATIC,
                     within.getModifiers() & (Modifier.PRIVATE | Modifier.STATIC));
+            for (Method method : within.getDeclaredMethods()) {
+                CHECK.due(within.getSimpleName() + "." + method.getName() + " has a name of its own", false,
+                        names.contains(method.getName()));
+                CHECK.due(method.getName() + " has at most seven parameters", true, method.getParameterCount() <= 7);
+            }
         }
+        CHECK.due("classes", true, face.getDeclaredClasses().length <= 12);
         CHECK.end();
     }
 
