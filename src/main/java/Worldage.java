@@ -401,6 +401,8 @@ public final class Worldage {
         long ofLastRun = ANY;
         /** Inferring leaves room for the types that calls and runs make. */
         boolean isInferring;
+        /** Tells that a type had no room; who wants to know sets it back before. */
+        boolean hasRunOut;
 
         Types() {
             Arrays.fill(heads, -1);
@@ -428,6 +430,7 @@ public final class Worldage {
                 id = nexts[piece][place];
             }
             if (used >= (isInferring ? MOST_INFERRED : MOST_PLACES)) {
+                hasRunOut = true;
                 return ANY;
             }
             used++;
@@ -502,9 +505,10 @@ public final class Worldage {
             return 1 + Math.max(depth, other);
         }
 
-        /** Tells whether many types have been made since the last time that types were let go. */
+        /** Tells whether many types have been made since the last time that types were let go, for the room left. */
         boolean isCrowded() {
-            return used > 2 * usedBefore + MANY_MORE;
+            int many = Math.min(usedBefore + MANY_MORE, (MOST_INFERRED - usedBefore) / 2);
+            return used > usedBefore + Math.max(many, MANY_MORE);
         }
 
         /** After this each type that is needed is to be marked; those with numbers are already. */
@@ -2171,46 +2175,52 @@ public final class Worldage {
             int met = 0;
             int settled = 0;
             long found = 0;
-            for (int turn = 0; turn < 2 * MOST_REACHED && settled < reached.size; turn++) {
+            boolean isAgain = false;
+            for (int turn = 0; turn < 4 * MOST_REACHED && settled < reached.size; turn++) {
                 boolean isPatient = found <= FOUND_AT_FIRST + (long) FOUND_A_CALL * met;
-                if (settled < met && (isPatient || (met == reached.size && !reached.isFull()))) {
-                    found += settle(settled);
-                    if (!reachCalls(settled)) {
-                        return -1;
-                    }
-                    settled++;
-                } else if (met < reached.size) {
-                    boolean isWhole = meetAlone(met);
-                    if (!reachCalls(met)) {
-                        return -1;
-                    }
-                    settled += isWhole && settled == met ? 1 : 0;
-                    met++;
-                    // Types of one int can make a chain of calls that has no end.
-                    if (met >= MANY && (met & (met - 1)) == 0 && isClosed()) {
-                        break;
-                    }
-                } else {
+                boolean isSettling = settled < met && (isPatient || (met == reached.size && !reached.isFull()));
+                if (!isSettling && met == reached.size) {
                     break;
                 }
-                sweepTypes();
+                int call = isSettling ? settled : met;
+                types.hasRunOut = false;
+                boolean isWhole = meetAlone(call);
+                if (isSettling && !isWhole) {
+                    found += settle(call);
+                }
+                if (types.hasRunOut) {
+                    if (isAgain) {
+                        break;
+                    }
+                    isAgain = true;
+                    sweepTypes();
+                    continue;
+                }
+                isAgain = false;
+                if (!reachCalls(call)) {
+                    return -1;
+                }
+                met += isSettling ? 0 : 1;
+                settled += isSettling || (isWhole && settled == call) ? 1 : 0;
+                // Types of one int can make a chain of calls that has no end.
+                if (!isSettling && met >= MANY && (met & (met - 1)) == 0 && isClosed()) {
+                    break;
+                }
+                if (types.isCrowded()) {
+                    sweepTypes();
+                }
             }
             return Long.bitCount(methods);
         }
 
+        /** Meets what hangs on no call; tells whether this is all of it. */
         private boolean meetAlone(int call) {
             return inferring.meetAlone(reached.functionOf(call), reached.firstOf(call), reached.secondOf(call));
         }
 
-        /** Settles a call if what is met in it hangs on what calls have; returns how many were found for that. */
+        /** Settles a call; returns how many calls were found for that. */
         private int settle(int call) {
-            int function = reached.functionOf(call);
-            long first = reached.firstOf(call);
-            long second = reached.secondOf(call);
-            if (inferring.meetAlone(function, first, second)) {
-                return 0;
-            }
-            inferring.settle(function, first, second);
+            inferring.settle(reached.functionOf(call), reached.firstOf(call), reached.secondOf(call));
             return inferring.countFound();
         }
 
@@ -2251,12 +2261,11 @@ public final class Worldage {
         }
 
         private void sweepTypes() {
-            if (types.isCrowded()) {
-                types.beginSweep();
-                codes.markTypes();
-                reached.markTypes(types);
-                types.endSweep();
-            }
+            types.beginSweep();
+            codes.markTypes();
+            reached.markTypes(types);
+            types.mark(hollow);
+            types.endSweep();
         }
 
         /**

@@ -15,6 +15,7 @@ public final class RoomTest {
         }
         sharedNodes();
         manyAges();
+        unionsOfTrim();
         CHECK.end();
     }
 
@@ -122,6 +123,40 @@ public final class RoomTest {
         x.define(x.prepare(5, 0, 0, sum(x, calls, 5)));
         x.ofInt(1000);
         return x;
+    }
+
+    /** Function 0 goes through ints, each with a call of function 1 with unions of it: four types that last. */
+    private static Worldage withUnions(int step, int limit, boolean isHanging) {
+        Worldage x = new Worldage();
+        int a = x.node('a', 0, 0, 0);
+        int[] ints = new int[4];
+        for (int i = 0; i < 4; i++) {
+            ints[i] = x.node('n', -1 - i, 0, 0);
+        }
+        int first = x.node('y', x.node('y', a, ints[0], 0), ints[1], 0);
+        int second = x.node('y', x.node('y', a, ints[2], 0), ints[3], 0);
+        int unions = x.node('c', 1, first, second);
+        int on = x.node('c', 0, x.node('+', a, x.node('n', step, 0, 0), 0), -1);
+        int both = x.node('y', unions, on, 0);
+        int body = isHanging ? x.node('y', both, x.node('c', 2, unions, -1), 0) : both;
+        int isLess = x.node('<', a, x.node('n', limit, 0, 0), 0);
+        x.define(x.prepare(0, 1, -1, x.node('?', isLess, body, a)));
+        x.define(x.prepare(1, 1, 1, a));
+        x.define(x.prepare(2, 0, -1, a));
+        x.ofInt(0);
+        return x;
+    }
+
+    private static void unionsOfTrim() {
+        CHECK.due("two", 2, withUnions(1, 150000, false).trim(0, 3, -1));
+        CHECK.due("three", 3, withUnions(1, 20000, true).trim(0, 3, -1));
+        Worldage x = withUnions(2, 2000000000, false);
+        int odd = x.ofInt(7);
+        x.define(x.prepare(0, odd, -1, 0));
+        CHECK.due("more types than there is room for", 2, x.trim(0, 3, -1));
+        CHECK.throwing("one that is met", UnsupportedOperationException.class, () -> x.trim(0, odd, -1));
+        int union = x.union(3, odd);
+        CHECK.due("there is room for types again", union, x.infer(2, union, -1));
     }
 
     /** The types of codes, of their edges and of the last value stay what they are while others are let go. */
