@@ -1158,18 +1158,22 @@ public final class Worldage {
      * in pieces that are made when they are needed and kept, so that they are not copied as they become more.
      */
     private static final class CallTable {
-        private static final int FUNCTION_SHIFT = 40;
+        private static final int FUNCTION_SHIFT = 33;
+        private static final int NEXT_SHIFT = 36;
+        private static final long KEY_BITS = (1L << NEXT_SHIFT) - 1;
         private static final int PIECE_SHIFT = 8;
         private static final int PIECE = 1 << PIECE_SHIFT;
         private static final int FEWEST_BUCKETS = 64;
         private static final int CALLS_A_BUCKET = 4;
 
-        /** The places of a call: those behind NEXT are free for who has the table; NEXT is for find() alone. */
+        /**
+         * The places of a call: first the function with the type of the first argument, and, above these, 1 more than
+         * the next call of the same bucket; then the type of the second one. Those from PLACES on are free for who has
+         * the table.
+         */
         private static final int KEY = 0;
         private static final int SECOND = 1;
-        private static final int NEXT = 2;
-        static final int PLACES_UNFOUND = 2;
-        static final int PLACES = 3;
+        static final int PLACES = 2;
 
         private final int mostCalls;
         private final int places;
@@ -1203,7 +1207,7 @@ public final class Worldage {
         }
 
         int functionOf(int call) {
-            return (int) (at(call, KEY) >>> FUNCTION_SHIFT);
+            return (int) ((at(call, KEY) & KEY_BITS) >>> FUNCTION_SHIFT);
         }
 
         long firstOf(int call) {
@@ -1235,16 +1239,16 @@ public final class Worldage {
             long key = keyOf(function, first);
             int call = heads[bucketOf(key, second)];
             for (int left = size; call >= 0 && left > 0; left--) {
-                if (at(call, KEY) == key && at(call, SECOND) == second) {
+                long keyAndNext = at(call, KEY);
+                if ((keyAndNext & KEY_BITS) == key && at(call, SECOND) == second) {
                     return call;
                 }
-                call = (int) at(call, NEXT);
+                call = (int) (keyAndNext >>> NEXT_SHIFT) - 1;
             }
             return -1;
         }
 
-        /** Appends a call that is not to be found later. */
-        int append(int function, long first, long second) {
+        int add(int function, long first, long second) {
             int call = size;
             int piece = call >> PIECE_SHIFT;
             if (piece >= pieces.length) {
@@ -1258,33 +1262,45 @@ public final class Worldage {
                 pieces[piece] = new long[PIECE * places];
             }
             size++;
-            set(call, KEY, keyOf(function, first));
+            long key = keyOf(function, first);
+            int bucket = bucketOf(key, second);
+            set(call, KEY, (heads[bucket] + 1L) << NEXT_SHIFT | key);
             set(call, SECOND, second);
-            return call;
-        }
-
-        int add(int function, long first, long second) {
-            int call = append(function, first, second);
-            int bucket = bucketOf(at(call, KEY), second);
-            set(call, NEXT, heads[bucket]);
             heads[bucket] = call;
             if (size > CALLS_A_BUCKET * buckets) {
-                spread();
+                buckets *= CALLS_A_BUCKET;
+                link();
             }
             return call;
         }
 
-        private void spread() {
-            buckets *= CALLS_A_BUCKET;
+        /** Puts all calls into the buckets anew. */
+        private void link() {
             if (heads.length < buckets) {
                 heads = new int[buckets];
             }
             Arrays.fill(heads, 0, buckets, -1);
             for (int call = 0; call < size; call++) {
-                int bucket = bucketOf(at(call, KEY), at(call, SECOND));
-                set(call, NEXT, heads[bucket]);
+                long key = at(call, KEY) & KEY_BITS;
+                int bucket = bucketOf(key, at(call, SECOND));
+                set(call, KEY, (heads[bucket] + 1L) << NEXT_SHIFT | key);
                 heads[bucket] = call;
             }
+        }
+
+        /** Lets go of the calls that have none of these bits at a place. */
+        void letGo(int place, long bits) {
+            int kept = 0;
+            for (int call = 0; call < size; call++) {
+                if ((at(call, place) & bits) != 0) {
+                    for (int index = 0; index < places; index++) {
+                        set(kept, index, at(call, index));
+                    }
+                    kept++;
+                }
+            }
+            size = kept;
+            link();
         }
     }
 
@@ -1398,13 +1414,20 @@ public final class Worldage {
             return found.size;
         }
 
-        /** Appends the calls that the last round found. */
-        void appendFound(CallTable others) {
-            for (int call = 0; call < found.size; call++) {
-                if (found.at(call, ROUND) == round && !others.isFull()) {
-                    others.append(found.functionOf(call), found.firstOf(call), found.secondOf(call));
-                }
-            }
+        boolean isOfLastRound(int call) {
+            return found.at(call, ROUND) == round;
+        }
+
+        int foundFunction(int call) {
+            return found.functionOf(call);
+        }
+
+        long foundFirst(int call) {
+            return found.firstOf(call);
+        }
+
+        long foundSecond(int call) {
+            return found.secondOf(call);
         }
 
         boolean isMet(int node) {
@@ -1607,6 +1630,9 @@ public final class Worldage {
     private static final class Codes {
         private static final int NEVER = 2147483647;
         private static final int MOST_EDGES = 1 << 22;
+        private static final int MANY_MORE_EDGES = 4096;
+        /** The place of an edge with a bit for each code that has it. */
+        private static final int OWNERS = CallTable.PLACES;
 
         private final Types types;
         private final Nodes nodes;
@@ -1621,8 +1647,11 @@ public final class Worldage {
         final int[] fixedCounts = new int[MOST_CODES];
         final int[] callCounts = new int[MOST_CODES];
         final int[] edgeCounts = new int[MOST_CODES];
-        private final int[] edgeStarts = new int[MOST_CODES];
-        private final CallTable edges = new CallTable(MOST_EDGES, CallTable.PLACES_UNFOUND);
+        /** The edges of the codes that are not stale: each call once, as codes can have many edges in common. */
+        private final CallTable edges = new CallTable(MOST_EDGES, CallTable.PLACES + 1);
+        private int edgesBefore;
+        /** The codes that are not stale, a bit for each. */
+        private long fresh;
         int size;
 
         Codes(Types types, Nodes nodes, Book book) {
@@ -1646,10 +1675,17 @@ public final class Worldage {
         int keep(int function, long first, long second) {
             if (size >= MOST_CODES) {
                 size = 0;
+                fresh = 0;
                 edges.clear();
+                edgesBefore = 0;
+            }
+            if (edges.size > 2 * edgesBefore + MANY_MORE_EDGES) {
+                edges.letGo(OWNERS, fresh);
+                edgesBefore = edges.size;
             }
             int code = size;
             size++;
+            fresh |= 1L << code;
             functions[code] = function;
             firsts[code] = first;
             seconds[code] = second;
@@ -1658,7 +1694,6 @@ public final class Worldage {
             methods[code] = book.surely(function, first, second);
             fixedCounts[code] = 0;
             callCounts[code] = 0;
-            edgeStarts[code] = edges.size;
             edgeCounts[code] = 0;
             Arrays.fill(fixedRows, code * MOST_NODES, (code + 1) * MOST_NODES, -1);
             return code;
@@ -1683,64 +1718,69 @@ public final class Worldage {
             }
         }
 
-        /** Draws the edges of the code that was kept last, for which its call has just been settled. */
-        void drawEdges(int code, Inferring inferring) {
-            if (inferring.hasEnded()) {
-                // The call that was asked for, the code's own, is one of those that were found.
-                inferring.appendFound(edges);
-            } else {
-                addEdgeOnce(code, functions[code], firsts[code], seconds[code]);
-                addMet(code, inferring);
+        /** Draws the edges of the code that was kept last, for which the rounds have just ended. */
+        void drawFound(int code, Inferring inferring) {
+            // The call that was asked for, the code's own, is one of those that were found.
+            int count = inferring.countFound();
+            for (int call = 0; call < count; call++) {
+                if (inferring.isOfLastRound(call)) {
+                    addEdge(code, inferring.foundFunction(call), inferring.foundFirst(call),
+                            inferring.foundSecond(call));
+                }
             }
-            edgeCounts[code] = edges.size - edgeStarts[code];
         }
 
-        /** As each call counts as having all values, code depends on nothing but the choices of its own calls. */
-        private void addMet(int code, Inferring inferring) {
+        /**
+         * Draws them if the rounds did not end: as each call counts as having all values, the code depends on nothing
+         * but the choices of its own calls.
+         */
+        void drawMet(int code, Inferring inferring) {
+            addEdge(code, functions[code], firsts[code], seconds[code]);
             int body = methods[code] < 0 ? -1 : book.bodies[methods[code]];
             nodes.reach(body);
             for (int node = 0; node <= body; node++) {
                 if (nodes.isReachedCall(node) && inferring.isMet(node)) {
-                    addEdgeOnce(code, nodes.as[node], inferring.metFirst(node), inferring.metSecond(node));
+                    addEdge(code, nodes.as[node], inferring.metFirst(node), inferring.metSecond(node));
                 }
             }
         }
 
-        private void addEdgeOnce(int code, int function, long first, long second) {
-            for (int edge = edgeStarts[code]; edge < edges.size; edge++) {
-                if (edges.functionOf(edge) == function && edges.firstOf(edge) == first
-                        && edges.secondOf(edge) == second) {
-                    return;
-                }
+        private void addEdge(int code, int function, long first, long second) {
+            int edge = edges.find(function, first, second);
+            if (edge < 0 && !edges.isFull()) {
+                edge = edges.add(function, first, second);
+                edges.set(edge, OWNERS, 0);
             }
-            if (!edges.isFull()) {
-                edges.append(function, first, second);
+            long owners = edge < 0 ? 0 : edges.at(edge, OWNERS);
+            edgeCounts[code] += (owners >>> code & 1L) == 0 ? 1 : 0;
+            if (edge >= 0) {
+                edges.set(edge, OWNERS, owners | 1L << code);
             }
         }
 
         /** Makes code stale that a method touches which has just come or gone. */
         void spoil(int method) {
+            long touched = 0;
+            for (int edge = 0; edge < edges.size && (fresh & ~touched) != 0; edge++) {
+                long owners = edges.at(edge, OWNERS) & fresh & ~touched;
+                long second = edges.secondOf(edge);
+                if (owners != 0 && book.isForCall(method, edges.functionOf(edge), second)
+                        && book.isMetBy(method, edges.firstOf(edge), second)) {
+                    touched |= owners;
+                }
+            }
             for (int code = 0; code < size; code++) {
-                if (staleAges[code] == NEVER && hasEdgeTo(code, method)) {
+                if ((touched >>> code & 1L) != 0) {
                     staleAges[code] = book.now;
                 }
             }
+            fresh &= ~touched;
         }
 
-        private boolean hasEdgeTo(int code, int method) {
-            int end = edgeStarts[code] + edgeCounts[code];
-            for (int edge = edgeStarts[code]; edge < end; edge++) {
-                long second = edges.secondOf(edge);
-                if (book.isForCall(method, edges.functionOf(edge), second)
-                        && book.isMetBy(method, edges.firstOf(edge), second)) {
-                    return true;
-                }
-            }
-            return false;
-        }
-
-        /** Marks the types that the codes and their edges have. */
+        /** Marks the types that the codes and their edges have; edges of stale ones are of no use any more. */
         void markTypes() {
+            edges.letGo(OWNERS, fresh);
+            edgesBefore = edges.size;
             for (int code = 0; code < size; code++) {
                 types.mark(firsts[code]);
                 types.mark(seconds[code]);
@@ -1954,7 +1994,11 @@ public final class Worldage {
                 inferring.settle(function, first, second);
                 code = codes.keep(function, first, second);
                 codes.fixCalls(code, inferring);
-                codes.drawEdges(code, inferring);
+                if (inferring.hasEnded()) {
+                    codes.drawFound(code, inferring);
+                } else {
+                    codes.drawMet(code, inferring);
+                }
             }
             takenCount += code < 0 ? 0 : 1;
             int method = code < 0 ? -1 : fixedMethod >= 0 ? fixedMethod : codes.methods[code];

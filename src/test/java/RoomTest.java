@@ -16,6 +16,9 @@ public final class RoomTest {
         sharedNodes();
         manyAges();
         unionsOfTrim();
+        edgesOfManyCodes(13, 12);
+        edgesOfManyCodes(4, 59);
+        commonEdges();
         CHECK.end();
     }
 
@@ -157,6 +160,84 @@ public final class RoomTest {
         CHECK.throwing("one that is met", UnsupportedOperationException.class, () -> x.trim(0, odd, -1));
         int union = x.union(3, odd);
         CHECK.due("there is room for types again", union, x.infer(2, union, -1));
+    }
+
+    /**
+     * Function 0 calls itself with so many ints, which begin with those of the methods of the functions from 1 on: the
+     * edges of one code are the code's own call and as many others as it returns.
+     */
+    private static int wideEdges(Worldage x, int wide) {
+        int a = x.node('a', 0, 0, 0);
+        int times = x.node('*', a, x.node('n', wide, 0, 0), 0);
+        int[] calls = new int[wide];
+        for (int i = 0; i < wide; i++) {
+            calls[i] = x.node('c', 0, x.node('+', times, x.node('n', i, 0, 0), 0), -1);
+        }
+        x.define(x.prepare(0, 1, -1, sum(x, calls, wide)));
+        int[] first = new int[wide - 1];
+        for (int i = 0; i < wide - 1; i++) {
+            first[i] = x.node('c', 0, x.node('n', i + 1, 0, 0), -1);
+        }
+        int body = sum(x, first, wide - 1);
+        for (int function = 1; function < 6; function++) {
+            x.define(x.prepare(function, 1, -1, body));
+            x.define(x.prepare(function, 1, 1, body));
+        }
+        int count = wide - 1;
+        for (int depth = 1; depth < 5; depth++) {
+            count = count * wide + wide - 1;
+        }
+        return count;
+    }
+
+    /** Code that becomes stale each time: its edges count, also if those of all codes are some millions together. */
+    private static void edgesOfManyCodes(int wide, int count) {
+        Worldage x = new Worldage();
+        int edges = 1 + wideEdges(x, wide);
+        for (int code = 0; code < count; code++) {
+            x.run(1, 1, NO, 1, true);
+            CHECK.due("codes", code + 1, x.codes());
+            CHECK.due("stale", code, x.stale());
+            CHECK.due("edges", edges, x.edges(code));
+            x.takeAway(1);
+            x.define(1);
+            CHECK.due("stale", code + 1, x.stale());
+        }
+        CHECK.due("edges of the first one", edges, x.edges(0));
+        CHECK.dueDouble("mean", edges, x.meanEdges());
+        x.run(1, 1, NO, 1, true);
+        CHECK.due("one is not stale", count, x.stale());
+        x.define(x.prepare(0, x.ofInt(wide * wide * wide + 2), -1, 0));
+        CHECK.due("an edge far on", count + 1, x.stale());
+    }
+
+    /** Codes of ten calls have all edges but one in common. */
+    private static void commonEdges() {
+        Worldage x = new Worldage();
+        int edges = 1 + wideEdges(x, 7);
+        for (int turn = 0; turn < 6; turn++) {
+            for (int i = 0; i < 10; i++) {
+                x.run(1 + i / 2, 1, i % 2 == 0 ? NO : 1, 1, true);
+                CHECK.due("edges", edges, x.edges(10 * turn + i));
+            }
+            CHECK.due("codes", 10 * turn + 10, x.codes());
+            CHECK.due("stale", 10 * turn, x.stale());
+            x.takeAway(1 + turn);
+            CHECK.due("one is stale", 10 * turn + 1, x.stale());
+            x.define(1 + turn);
+            CHECK.due("no other one", 10 * turn + 1, x.stale());
+            x.define(x.prepare(0, x.ofInt(343 + turn), -1, 0));
+            CHECK.due("all are stale", 10 * turn + 10, x.stale());
+            x.takeAway(11 + turn);
+        }
+        x.run(1, 1, NO, 1, true);
+        CHECK.due("all others are gone", 1, x.codes());
+        CHECK.due("edges", edges, x.edges(0));
+        CHECK.due("stale", 0, x.stale());
+        x.define(x.prepare(0, x.ofInt(7 * 7 * 7 * 7 * 7), -1, 0));
+        CHECK.due("not met", 0, x.stale());
+        x.define(x.prepare(0, x.ofInt(7 * 7 * 7 * 7 * 7 - 1), -1, 0));
+        CHECK.due("met", 1, x.stale());
     }
 
     /** The types of codes, of their edges and of the last value stay what they are while others are let go. */
