@@ -1164,7 +1164,8 @@ public final class Worldage {
         private static final int PIECE_SHIFT = 8;
         private static final int PIECE = 1 << PIECE_SHIFT;
         private static final int FEWEST_BUCKETS = 64;
-        private static final int CALLS_A_BUCKET = 4;
+        private static final int MOST_BUCKETS = 1 << 19;
+        private static final int CALLS_A_BUCKET = 2;
 
         /**
          * The places of a call: first the function with the type of the first argument, and, above these, 1 more than
@@ -1267,8 +1268,8 @@ public final class Worldage {
             set(call, KEY, (heads[bucket] + 1L) << NEXT_SHIFT | key);
             set(call, SECOND, second);
             heads[bucket] = call;
-            if (size > CALLS_A_BUCKET * buckets) {
-                buckets *= CALLS_A_BUCKET;
+            if (size > CALLS_A_BUCKET * buckets && buckets < MOST_BUCKETS) {
+                buckets *= 2;
                 link();
             }
             return call;
@@ -1308,7 +1309,7 @@ public final class Worldage {
     private static final class Inferring {
         private static final int MOST_ROUNDS = 4;
         private static final int MOST_WITHIN = 6;
-        private static final int MOST_CALLS_FOUND = 1000000;
+        private static final int MOST_CALLS_FOUND = 1200000;
 
         /** The places of a call: the round that found it last, what that and the round before found for it. */
         private static final int ROUND = CallTable.PLACES;
@@ -1409,7 +1410,7 @@ public final class Worldage {
             return isEnded;
         }
 
-        /** Returns how many calls were found in the rounds, at most 1,000,000. */
+        /** Returns how many calls were found in the rounds. */
         int countFound() {
             return found.size;
         }
